@@ -428,7 +428,7 @@ public final class MeetingHouse {
             int lineFrom = 0;
             boolean bare = true;
             at = 0;
-            while (at < length) {
+            for (int turn = 0; turn <= MOST_BYTES && at < length; turn++) {
                 int b = here(0);
                 if (b == 10) {
                     endLine(bare);
@@ -581,9 +581,7 @@ public final class MeetingHouse {
         }
 
         private void forgetNames() {
-            for (int i = 0; i < BUCKETS; i++) {
-                bucket[i] = -1;
-            }
+            Arrays.fill(bucket, -1);
             names = 0;
             nameFrom[0] = 0;
             learn(WORDS_TO_INT);
@@ -1625,10 +1623,8 @@ public final class MeetingHouse {
         }
 
         void resolve() {
-            for (int i = 0; i < latest.length; i++) {
-                latest[i] = 0;
-                stamps[i] = 0;
-            }
+            Arrays.fill(latest, 0);
+            Arrays.fill(stamps, 0);
             stamp = 0;
             seen = 0;
             symbols = 1;
@@ -2011,9 +2007,7 @@ public final class MeetingHouse {
             told = 0;
             cells = 0;
             mark = 0;
-            for (int i = 0; i < MOST_SYMBOLS; i++) {
-                marks[i] = 0;
-            }
+            Arrays.fill(marks, 0);
             block(tree.root);
         }
 
@@ -3182,9 +3176,7 @@ public final class MeetingHouse {
         /** The elements of a place with an index (0: as a whole); true if they hang on the PAR's own REPLICATOR. */
         private boolean elements(int place, int index, int[] set) {
             int most = limit(place);
-            for (int i = 0; i < set.length; i++) {
-                set[i] = 0;
-            }
+            Arrays.fill(set, 0);
             if (index == 0 || !collect(index)) {
                 for (int i = 0; i < most; i++) {
                     include(set, i);
