@@ -234,6 +234,8 @@ public final class MeetingHouse {
     private static final int STANDS = 3;
     private static final int WAITS_FOR_KEY = 4;
 
+    private static final int MOST = 2147483647;
+    private static final int LEAST = -2147483648;
     private static final int MOST_BYTES = 6000;
     private static final int MOST_NODES = 6200;
     private static final int MOST_SYMBOLS = 3100;
@@ -285,18 +287,8 @@ public final class MeetingHouse {
         text.length = 0;
         tree.grow();
         if (tree.fault == 0) {
-            lookAtRules();
+            names.resolve();
         }
-        hasProgram = tree.fault == 0;
-        if (hasProgram) {
-            coder.translate();
-        }
-        machine.forget();
-        return tree.fault;
-    }
-
-    private void lookAtRules() {
-        names.resolve();
         if (tree.fault == 0) {
             types.check();
         }
@@ -306,6 +298,12 @@ public final class MeetingHouse {
         if (tree.fault == 0) {
             sides.compare(uses);
         }
+        hasProgram = tree.fault == 0;
+        if (hasProgram) {
+            coder.translate();
+        }
+        machine.begun = false;
+        return tree.fault;
     }
 
     public int count(int what) {
@@ -610,7 +608,7 @@ public final class MeetingHouse {
                 v = v * 10 + here(n) - '0';
                 n++;
             }
-            return number(n, n <= 10 && v <= Integer.MAX_VALUE, (int) v);
+            return number(n, n <= 10 && v <= MOST, (int) v);
         }
 
         private int sixteen() {
@@ -751,7 +749,8 @@ public final class MeetingHouse {
 
         private int make(int k) {
             if (nodes >= MOST_NODES) {
-                return refuse();
+                fault = fault == 0 ? text.line[at] * 16 + 2 : fault;
+                return 0;
             }
             int n = nodes;
             nodes++;
@@ -789,7 +788,7 @@ public final class MeetingHouse {
         }
 
         private boolean is(int k) {
-            return look() == k;
+            return fault == 0 && text.kind[at] == k;
         }
 
         private int refuse() {
@@ -1251,24 +1250,24 @@ public final class MeetingHouse {
 
         /** TYPE, or (where there may be channels) CHAN OF KIND; a KIND that is a name is left in kindNode. */
         private int plainSpec(boolean channels) {
+            int chan = channels && is(W_CHAN) ? CHAN : 0;
             kindNode = 0;
-            if (isType(look())) {
-                int t = typeOf(look());
+            if (chan != 0) {
                 pass();
-                return t;
+                expect(W_OF);
             }
-            if (!channels) {
+            int k = look();
+            if (isType(k)) {
+                pass();
+                return chan | typeOf(k);
+            }
+            if (chan == 0 || k != NAME) {
                 return refuse();
             }
-            expect(W_CHAN);
-            expect(W_OF);
-            if (is(NAME)) {
-                kindNode = make(KIND);
-                a[kindNode] = text.value[at];
-                pass();
-                return CHAN;
-            }
-            return isType(look()) ? CHAN | plainSpec(false) : refuse();
+            kindNode = make(KIND);
+            a[kindNode] = text.value[at];
+            pass();
+            return chan;
         }
 
         private int openSpec(boolean channels) {
@@ -1322,8 +1321,7 @@ public final class MeetingHouse {
             a[node] = told();
             if (is(W_IS)) {
                 pass();
-                b[node] = part();
-                moreParts(b[node], 1);
+                b[node] = parts();
                 endDeclaration();
                 return node;
             }
@@ -1367,30 +1365,33 @@ public final class MeetingHouse {
             pass();
             if (is(SEMICOLON)) {
                 pass();
-                b[node] = part();
-                moreParts(b[node], 1);
+                b[node] = parts();
             }
             expect(LINE_END);
             return node;
         }
 
-        private void moreParts(int first, int had) {
-            int tail = first;
-            for (int n = had; n < MOST_NODES && is(SEMICOLON); n++) {
-                pass();
-                tail = behind(tail, n < 16 ? part() : refuse());
+        private int parts() {
+            int head = 0;
+            int tail = 0;
+            for (int n = 0; n < MOST_NODES && (n == 0 || is(SEMICOLON)); n++) {
+                if (n > 0) {
+                    pass();
+                }
+                if (n >= 16) {
+                    return refuse();
+                }
+                int node = make(PART);
+                if (is(OPEN)) {
+                    passOpening(OPEN);
+                    a[node] = expression();
+                    passClosing(CLOSE);
+                }
+                val[node] = plainSpec(false);
+                tail = behind(tail, node);
+                head = head == 0 ? tail : head;
             }
-        }
-
-        private int part() {
-            int node = make(PART);
-            if (is(OPEN)) {
-                passOpening(OPEN);
-                a[node] = expression();
-                passClosing(CLOSE);
-            }
-            val[node] = plainSpec(false);
-            return node;
+            return head;
         }
 
         private int procedure(int d) {
@@ -1537,9 +1538,9 @@ public final class MeetingHouse {
                 case W_FALSE:
                     return literal(TRUTH, 0);
                 case W_MOSTPOS:
-                    return extreme(Integer.MAX_VALUE);
+                    return extreme(MOST);
                 case W_MOSTNEG:
-                    return extreme(Integer.MIN_VALUE);
+                    return extreme(LEAST);
                 case LEFT:
                     return inner();
                 case OPEN:
@@ -1550,13 +1551,16 @@ public final class MeetingHouse {
         }
 
         private int literal(int k, int v) {
-            int node = makeAndPass(k);
+            int node = make(k);
             val[node] = v;
+            pass();
             return node;
         }
 
         private int extreme(int v) {
-            int node = literal(NUMBER, v);
+            int node = make(NUMBER);
+            val[node] = v;
+            pass();
             expect(W_INT);
             return node;
         }
@@ -2605,7 +2609,7 @@ public final class MeetingHouse {
         static long ofOne(int op, int x) {
             switch (op) {
                 case SUBTRACT:
-                    return x == Integer.MIN_VALUE ? faulty(1) : sound(-x);
+                    return x == LEAST ? faulty(1) : sound(-x);
                 case W_MINUS:
                     return sound(-x);
                 case BIT_NOT:
@@ -2649,7 +2653,7 @@ public final class MeetingHouse {
         }
 
         private static long narrowed(long v) {
-            return v < Integer.MIN_VALUE || v > Integer.MAX_VALUE ? faulty(1) : sound(v);
+            return v < LEAST || v > MOST ? 1L << 32 : v & 0xFFFFFFFFL;
         }
 
         private static boolean compared(int op, int x, int y) {
@@ -3037,38 +3041,34 @@ public final class MeetingHouse {
             }
         }
 
+        /** Whether a parameter without VAL has a place in common with a later one, or with what the PROC uses. */
         private boolean hasCommonPlaces(int n) {
             int s = tree.sym[n];
             int f = tree.b[names.node[s]];
             for (int e = tree.b[n]; e != 0 && f != 0; e = tree.next[e]) {
-                int formal = tree.sym[f];
-                if ((names.spec[formal] & VAL) == 0
-                        && (meetsLater(e, f) || meetsOutside(e, s, names.flags[formal] & ANY_USE))) {
-                    return true;
+                if ((names.spec[tree.sym[f]] & VAL) == 0) {
+                    int place = tree.sym[madeOf(e)];
+                    int g = tree.next[f];
+                    for (int other = tree.next[e]; other != 0 && g != 0; other = tree.next[other]) {
+                        if ((names.spec[tree.sym[g]] & VAL) == 0 && tree.sym[madeOf(other)] == place
+                                && sides.haveCommon(place, indexOf(e), indexOf(other))) {
+                            return true;
+                        }
+                        g = tree.next[g];
+                    }
+                    if (isUsedBadly(s, place, names.flags[tree.sym[f]]) && sides.haveCommon(place, indexOf(e), 0)) {
+                        return true;
+                    }
                 }
                 f = tree.next[f];
             }
             return false;
         }
 
-        private boolean meetsLater(int e, int f) {
-            int place = tree.sym[madeOf(e)];
-            int g = tree.next[f];
-            for (int other = tree.next[e]; other != 0 && g != 0; other = tree.next[other]) {
-                if ((names.spec[tree.sym[g]] & VAL) == 0 && tree.sym[madeOf(other)] == place
-                        && sides.haveCommon(place, indexOf(e), indexOf(other))) {
-                    return true;
-                }
-                g = tree.next[g];
-            }
-            return false;
-        }
-
-        private boolean meetsOutside(int e, int s, int asFormal) {
-            int place = tree.sym[madeOf(e)];
+        /** Whether a PROC uses a place from outside that goes badly with what it does with a FORMAL. */
+        private boolean isUsedBadly(int s, int place, int asFormal) {
             for (int i = outsideFrom[s]; i < outsideTo[s]; i++) {
-                int both = (outside[i] | asFormal) & (CHANGED | READ | WRITTEN);
-                if (outside[i] >> 4 == place && both != 0 && sides.haveCommon(place, indexOf(e), 0)) {
+                if (outside[i] >> 4 == place && ((outside[i] | asFormal) & (CHANGED | READ | WRITTEN)) != 0) {
                     return true;
                 }
             }
@@ -3131,8 +3131,7 @@ public final class MeetingHouse {
         private int replicatorCount;
         private final int[] values = new int[MOST_SYMBOLS];
         private int valueCount;
-        private final int[] one = new int[SET];
-        private final int[] other = new int[SET];
+        private final int[] pair = new int[2 * SET];
         private final int[] kept = new int[MOST_USES * SET];
         private final int[] ahead = new int[MOST_PLACES * AHEAD];
         private final int[] rowOf = new int[MOST_SYMBOLS];
@@ -3149,10 +3148,10 @@ public final class MeetingHouse {
 
         boolean haveCommon(int place, int index, int otherIndex) {
             own = 0;
-            elements(place, index, one);
-            elements(place, otherIndex, other);
+            elements(place, index, pair, 0);
+            elements(place, otherIndex, pair, SET);
             for (int i = 0; i < SET; i++) {
-                if ((one[i] & other[i]) != 0) {
+                if ((pair[i] & pair[SET + i]) != 0) {
                     return true;
                 }
             }
@@ -3167,33 +3166,45 @@ public final class MeetingHouse {
             return n >= 0 ? Math.min(n, MOST_ELEMENTS) : MOST_ELEMENTS;
         }
 
-        private static void include(int[] set, int i) {
-            if (i >= 0 && i < MOST_ELEMENTS && i >> 5 < set.length) {
-                set[i >> 5] |= 1 << (i & 31);
+        private static void include(int[] sets, int from, int i) {
+            if (i >= 0 && i < MOST_ELEMENTS && from >= 0 && from + (i >> 5) < sets.length) {
+                sets[from + (i >> 5)] |= 1 << (i & 31);
             }
         }
 
-        /** The elements of a place with an index (0: as a whole); true if they hang on the PAR's own REPLICATOR. */
-        private boolean elements(int place, int index, int[] set) {
+        private void elementsAsWhole(int place, int[] sets, int from) {
             int most = limit(place);
-            Arrays.fill(set, 0);
-            if (index == 0 || !collect(index)) {
-                for (int i = 0; i < most; i++) {
-                    include(set, i);
-                }
-                return false;
+            for (int k = from; k < from + SET && k < sets.length; k++) {
+                sets[k] = 0;
             }
-            boolean hangs = bindFirst();
+            for (int i = 0; i < most; i++) {
+                include(sets, from, i);
+            }
+        }
+
+        /** The elements of a place with an index (0: as a whole) become the set that begins at from. */
+        private void elements(int place, int index, int[] sets, int from) {
+            if (index == 0 || !collect(index)) {
+                elementsAsWhole(place, sets, from);
+                return;
+            }
+            int most = limit(place);
+            for (int k = from; k < from + SET && k < sets.length; k++) {
+                sets[k] = 0;
+            }
+            bindFirst();
             for (int n = 0; n < MOST_COMBINATIONS; n++) {
+                for (int i = 0; i < valueCount; i++) {
+                    bound[values[i]] = workOut(tree.b[names.node[values[i]]]);
+                }
                 long v = workOut(index);
                 if (v >> 32 == 0 && (int) v >= 0 && (int) v < most) {
-                    include(set, (int) v);
+                    include(sets, from, (int) v);
                 }
                 if (!bindNext()) {
                     break;
                 }
             }
-            return hangs;
         }
 
         /** The REPLICATORS and VALs that an index is made of; false if it is not KNOWN. */
@@ -3284,17 +3295,13 @@ public final class MeetingHouse {
             return v & 0xFFFFFFFFL;
         }
 
-        private boolean bindFirst() {
-            boolean hangs = false;
+        /** All but the PAR's own REPLICATOR, which has the branch's value, begin with their bases. */
+        private void bindFirst() {
             for (int i = 0; i < replicatorCount; i++) {
-                if (replicators[i] == own) {
-                    hangs = true;
-                } else {
+                if (replicators[i] != own) {
                     bound[replicators[i]] = plain(base(replicators[i]));
                 }
             }
-            bindValues();
-            return hangs;
         }
 
         private boolean bindNext() {
@@ -3304,19 +3311,12 @@ public final class MeetingHouse {
                     int v = (int) bound[r] + 1;
                     if (v - base(r) != times(r)) {
                         bound[r] = plain(v);
-                        bindValues();
                         return true;
                     }
                     bound[r] = plain(base(r));
                 }
             }
             return false;
-        }
-
-        private void bindValues() {
-            for (int i = 0; i < valueCount; i++) {
-                bound[values[i]] = workOut(tree.b[names.node[values[i]]]);
-            }
         }
 
         private long workOut(int e) {
@@ -3361,23 +3361,17 @@ public final class MeetingHouse {
                 int par = uses.pars[i];
                 parMark++;
                 rows = 0;
-                if (tree.b[par] == 0) {
-                    own = 0;
+                own = tree.sym[tree.b[par]];
+                if (own == 0) {
                     for (int p = tree.a[par]; p != 0; p = tree.next[p]) {
                         branch(uses, par, p, true);
                     }
-                } else {
-                    branches(uses, par);
                 }
-            }
-        }
-
-        private void branches(Uses uses, int par) {
-            own = tree.sym[tree.b[par]];
-            int n = Math.min(times(own), 64);
-            for (int i = 0; i < n; i++) {
-                bound[own] = plain(base(own) + i);
-                branch(uses, par, tree.a[par], i == 0);
+                int n = own == 0 ? 0 : Math.min(times(own), 64);
+                for (int k = 0; k < n; k++) {
+                    bound[own] = plain(base(own) + k);
+                    branch(uses, par, tree.a[par], k == 0);
+                }
             }
         }
 
@@ -3391,7 +3385,9 @@ public final class MeetingHouse {
                 } else if (uses.flags[i] == Uses.CALLED) {
                     lookAtCalled(uses, i, tree.c[par]);
                 } else if (uses.root[i] < tree.c[par]) {
-                    elementsOfUse(uses, i, isFirst);
+                    if (isFirst || hangsOnOwn(uses.index[i])) {
+                        elements(uses.root[i], uses.index[i], kept, i * SET);
+                    }
                     lookAt(uses.root[i], uses.flags[i], uses.line[i], i * SET);
                 }
             }
@@ -3406,23 +3402,9 @@ public final class MeetingHouse {
             }
         }
 
-        /** Keeps the elements of a use; those that do not hang on the branch are worked out for the first one alone. */
-        private void elementsOfUse(Uses uses, int i, boolean isFirst) {
-            boolean isFixed = uses.index[i] == 0 || (tree.type[uses.index[i]] & CONSTANT) != 0;
-            if (!isFirst && (isFixed || own == 0)) {
-                return;
-            }
-            if (!isFirst && !hangsOnOwn(uses.index[i])) {
-                return;
-            }
-            elements(uses.root[i], uses.index[i], one);
-            for (int k = 0; k < SET; k++) {
-                kept[i * SET + k] = one[k];
-            }
-        }
-
+        /** Elements that do not hang on the branch are worked out for the first one alone. */
         private boolean hangsOnOwn(int index) {
-            if (!collect(index)) {
+            if (index == 0 || (tree.type[index] & CONSTANT) != 0 || !collect(index)) {
                 return false;
             }
             for (int i = 0; i < replicatorCount; i++) {
@@ -3438,7 +3420,7 @@ public final class MeetingHouse {
             for (int i = uses.outsideFrom[s]; i < uses.outsideTo[s]; i++) {
                 int place = uses.outside[i] >> 4;
                 if (place < first) {
-                    elementsAsWhole(place, call);
+                    elementsAsWhole(place, kept, call * SET);
                     lookAt(place, uses.outside[i] & ANY_USE, uses.line[call], call * SET);
                 }
             }
@@ -3449,16 +3431,9 @@ public final class MeetingHouse {
             for (int i = uses.outsideFrom[s]; i < uses.outsideTo[s]; i++) {
                 int place = uses.outside[i] >> 4;
                 if (place < first) {
-                    elementsAsWhole(place, call);
+                    elementsAsWhole(place, kept, call * SET);
                     merge(place, uses.outside[i] & ANY_USE, call * SET);
                 }
-            }
-        }
-
-        private void elementsAsWhole(int place, int at) {
-            elements(place, 0, one);
-            for (int k = 0; k < SET; k++) {
-                kept[at * SET + k] = one[k];
             }
         }
 
@@ -4329,13 +4304,9 @@ public final class MeetingHouse {
             }
         }
 
-        private boolean isHandle(int h) {
-            return h >= 0 && h < handles && h < start.length;
-        }
-
         void free(int place) {
             int h = place / OFFSETS;
-            if (!isHandle(h) || h == 0) {
+            if (h <= 0 || h >= handles) {
                 return;
             }
             taken -= length[h];
@@ -4354,32 +4325,28 @@ public final class MeetingHouse {
             unused = h;
         }
 
-        private int at(int place) {
-            int h = place / OFFSETS;
-            int i = isHandle(h) ? start[h] + place % OFFSETS : -1;
-            return i >= 0 && i < cells.length ? i : -1;
-        }
-
         int get(int place) {
-            int i = at(place);
-            return i < 0 ? 0 : cells[i];
+            int h = place / OFFSETS;
+            int i = h >= 0 && h < handles ? start[h] + place % OFFSETS : -1;
+            return i >= 0 && i < cells.length ? cells[i] : 0;
         }
 
         void put(int place, int v) {
-            int i = at(place);
-            if (i >= 0) {
+            int h = place / OFFSETS;
+            int i = h >= 0 && h < handles ? start[h] + place % OFFSETS : -1;
+            if (i >= 0 && i < cells.length) {
                 cells[i] = v;
             }
         }
 
         int lineOf(int place) {
             int h = place / OFFSETS;
-            return isHandle(h) ? line[h] : 0;
+            return h >= 0 && h < handles ? line[h] : 0;
         }
 
         int indexOf(int place) {
             int h = place / OFFSETS;
-            return isHandle(h) && each[h] > 0 ? place % OFFSETS % each[h] : 0;
+            return h >= 0 && h < handles && each[h] > 0 ? place % OFFSETS % each[h] : 0;
         }
     }
 
@@ -4434,8 +4401,8 @@ public final class MeetingHouse {
         }
 
         boolean hasGuard(int kind, int value) {
-            for (int k = 0; k < guards(); k++) {
-                if (guardKind(k) == kind && guardValue(k) == value) {
+            for (int k = 0; k + 1 < heldCount && k + 1 < held.length; k += 2) {
+                if (held[k] == kind && held[k + 1] == value) {
                     return true;
                 }
             }
@@ -4447,6 +4414,7 @@ public final class MeetingHouse {
     private static final class Hall {
         static final int SCREEN_PLACE = 0;
         static final int KEYBOARD_PLACE = 1;
+        private static final long FARTHEST = 1L << 33;
         private static final int MOST_OUTPUT = 2000;
         private static final int MOST_INPUT = 500;
         private static final int KEPT = 64;
@@ -4633,7 +4601,7 @@ public final class MeetingHouse {
             if (!hasTimed()) {
                 return false;
             }
-            long nearest = Long.MAX_VALUE;
+            long nearest = FARTHEST;
             for (int i = 0; i < live; i++) {
                 Proc p = procs[order[i]];
                 if (p.state == SLEEPS) {
@@ -4653,7 +4621,7 @@ public final class MeetingHouse {
         }
 
         private long nearestGuard(Proc p) {
-            long nearest = Long.MAX_VALUE;
+            long nearest = FARTHEST;
             for (int k = 0; k < p.guards(); k++) {
                 if (p.guardKind(k) == GUARD_AFTER) {
                     nearest = Math.min(nearest, distance(p.guardValue(k)));
@@ -4756,10 +4724,6 @@ public final class MeetingHouse {
             this.current = hall.procs[0];
         }
 
-        void forget() {
-            begun = false;
-        }
-
         void start(int seed) {
             heap.clear();
             hall.clear(seed);
@@ -4829,8 +4793,13 @@ public final class MeetingHouse {
             int newest = hall.made;
             partner = null;
             goOn(p, act);
-            if (handing) {
-                handOver();
+            if (handing && partner != null) {
+                settle(partner);
+                pickVariant();
+                if (partner.state == READY) {
+                    goOn(partner, false);
+                }
+                handing = false;
                 goOn(p, false);
             }
             for (int i = newest; i < hall.made; i++) {
@@ -4844,16 +4813,6 @@ public final class MeetingHouse {
             }
         }
 
-        private void handOver() {
-            if (partner != null) {
-                settle(partner);
-                going = true;
-                pickVariant();
-                perform();
-            }
-            handing = false;
-        }
-
         private void settle(Proc p) {
             current = p;
             p.state = READY;
@@ -4861,16 +4820,12 @@ public final class MeetingHouse {
             functions = 0;
             doing = p.line;
             mayAct = false;
+            going = true;
         }
 
         private void goOn(Proc p, boolean act) {
             settle(p);
             mayAct = act;
-            going = true;
-            perform();
-        }
-
-        private void perform() {
             for (int i = 0; going && i < MOST_WORDS; i++) {
                 int op = word();
                 if (op <= DO_END) {
@@ -5072,7 +5027,6 @@ public final class MeetingHouse {
             parent.pending--;
             if (parent.pending == 0) {
                 settle(parent);
-                going = true;
             }
         }
 
@@ -5116,15 +5070,6 @@ public final class MeetingHouse {
             }
         }
 
-        /** Cell i of an array: of one on the stack (whose ref is below 0), or of one that has cells. */
-        private int cellOf(int ref, int i) {
-            if (ref >= 0) {
-                return heap.get(ref + i);
-            }
-            int at = ~ref + i;
-            return at < stack.length ? stack[at] : 0;
-        }
-
         private void copyArray() {
             int size = pop();
             int ref = pop();
@@ -5137,13 +5082,16 @@ public final class MeetingHouse {
                 return;
             }
             for (int i = 0; i < size; i++) {
-                heap.put(place + i, cellOf(ref, i));
+                heap.put(place + i, ref >= 0 ? heap.get(ref + i) : ~ref + i < stack.length ? stack[~ref + i] : 0);
             }
             push(place);
             push(size);
         }
 
-        /** The last n values of the stack, of which some are arrays, come into a row; answers how many cells. */
+        /**
+         * The last n values of the stack, of which some are arrays, come into a row; answers how many cells. An array is
+         * told by its place, or (below 0) by where it lies on the stack.
+         */
         private int gather(int n, int arrays, int[] into) {
             for (int i = Math.min(n, refs.length) - 1; i >= 0; i--) {
                 if ((arrays >> i & 1) != 0) {
@@ -5159,7 +5107,8 @@ public final class MeetingHouse {
             int at = 0;
             for (int i = 0; i < n && i < refs.length; i++) {
                 for (int k = 0; k < sizes[i] && at < into.length; k++) {
-                    into[at] = cellOf(refs[i], k);
+                    int ref = refs[i];
+                    into[at] = ref >= 0 ? heap.get(ref + k) : ~ref + k < stack.length ? stack[~ref + k] : 0;
                     at++;
                 }
             }
@@ -5317,8 +5266,8 @@ public final class MeetingHouse {
 
         /** The present process is at the table of its VARIANTs, and the message is there. */
         private void pickVariant() {
-            int n = word();
-            int table = current.pc;
+            int n = coder.at(current.pc);
+            int table = current.pc + 1;
             for (int i = 0; i < n; i++) {
                 if (coder.at(table + 2 * i) == hall.message[0]) {
                     current.pc = coder.at(table + 2 * i + 1);
