@@ -16,7 +16,8 @@ public final class ActsTest {
 
     /** A FUNCTION whose only ACT stands in line 8. */
     private static void function(int fault, String... act) {
-        String[] ahead = {"CHAN OF INT c:", "TIMER t:", "INT x:", "[3] INT v:", "INT FUNCTION f(VAL INT a)", "  INT y:"};
+        String[] ahead = {"CHAN OF INT c:", "TIMER t:", "INT x:", "[3] INT v:", "INT FUNCTION f(VAL INT a)",
+                "  INT y:"};
         String[] text = with(ahead, "  VALOF");
         text = with(text, act);
         reads(fault, 8, with(text, "    RESULT y", ":", "SKIP"));
@@ -35,20 +36,24 @@ public final class ActsTest {
         function(11, "    PAR", "      SKIP");
         function(11, "    ALT", "      SKIP", "        SKIP");
         function(0, "    IF", "      a = 1", "        y := 2", "      TRUE", "        SKIP");
-        reads(11, 5, "INT x:", "INT FUNCTION f()", "  VALOF", "    PROC p()", "      x := 1", "    :", "    SKIP", "    RESULT 1", ":",
+        reads(11, 5, "INT x:", "INT FUNCTION f()", "  VALOF", "    PROC p()", "      x := 1", "    :", "    SKIP",
+                "    RESULT 1", ":",
                 "SKIP");
-        reads(0, 0, "INT FUNCTION f()", "  INT y:", "  VALOF", "    PROC p(INT z)", "      z, y := 1, 2", "    :", "    INT w:",
+        reads(0, 0, "INT FUNCTION f()", "  INT y:", "  VALOF", "    PROC p(INT z)", "      z, y := 1, 2", "    :",
+                "    INT w:",
                 "    p(w)", "    RESULT y", ":", "SKIP");
         // The innermost FUNCTION counts.
         reads(11, 7, "INT FUNCTION f()", "  INT y:", "  VALOF", "    INT FUNCTION g()", "      INT z:", "      VALOF",
                 "        y := 1", "        RESULT z", "    :", "    y := g()", "    RESULT y", ":", "SKIP");
         // An abbreviation is the place that it was made of.
-        reads(11, 5, "INT x:", "INT FUNCTION f()", "  INT y IS x:", "  VALOF", "    y := 1", "    RESULT y", ":", "SKIP");
+        reads(11, 5, "INT x:", "INT FUNCTION f()", "  INT y IS x:", "  VALOF", "    y := 1", "    RESULT y", ":",
+                "SKIP");
     }
 
     private static void calledByFunctions() {
         String[] ahead = {"CHAN OF INT c:", "INT x:", "PROC acts()", "  c ! 1", ":", "PROC changes()", "  x := 1", ":",
-            "PROC sets(INT a)", "  a := 1", ":", "PROC uses(INT a)", "  INT b:", "  b := a", ":", "PROC through()", "  changes()", ":",
+            "PROC sets(INT a)", "  a := 1", ":", "PROC uses(INT a)", "  INT b:", "  b := a", ":", "PROC through()",
+            "  changes()", ":",
             "INT FUNCTION f()", "  INT y:", "  VALOF"};
         String[] behind = {"    RESULT y", ":", "SKIP"};
         reads(11, 22, with(with(ahead, "    acts()"), behind));
@@ -89,8 +94,10 @@ public final class ActsTest {
     }
 
     private static void outside() {
-        String[] ahead = {"INT x, y:", "[3] INT v:", "PROC sets(INT a)", "  a := x", ":", "PROC uses(INT a)", "  INT b:", "  b := a + x",
-            ":", "PROC idle(INT a)", "  x := 1", ":", "PROC array(INT a)", "  v[0] := 1", ":", "PROC through(INT a)", "  sets(a)", ":"};
+        String[] ahead = {"INT x, y:", "[3] INT v:", "PROC sets(INT a)", "  a := x", ":", "PROC uses(INT a)",
+                "  INT b:", "  b := a + x",
+            ":", "PROC idle(INT a)", "  x := 1", ":", "PROC array(INT a)", "  v[0] := 1", ":", "PROC through(INT a)",
+            "  sets(a)", ":"};
         reads(12, 19, with(ahead, "sets(x)"));
         reads(0, 0, with(ahead, "sets(y)"));
         reads(0, 0, with(ahead, "uses(x)"));

@@ -54,9 +54,11 @@ public final class CountTest {
         Trial.due("no meeting", stands.count(8), 0);
         MeetingHouse keyed = Trial.ran(1, "INT x:", "keyboard ? x");
         Trial.due("WAITS FOR A KEY", keyed.count(4), 4);
-        MeetingHouse inAlt = Trial.ran(1, "INT x:", "CHAN OF INT c:", "ALT", "  c ? x", "    SKIP", "  keyboard ? x", "    SKIP");
+        MeetingHouse inAlt = Trial.ran(1, "INT x:", "CHAN OF INT c:", "ALT", "  c ? x", "    SKIP", "  keyboard ? x",
+                "    SKIP");
         Trial.due("WAITS FOR A KEY in an ALT", inAlt.count(4), 4);
-        MeetingHouse off = Trial.ran(1, "INT x:", "CHAN OF INT c:", "ALT", "  c ? x", "    SKIP", "  FALSE & keyboard ? x",
+        MeetingHouse off = Trial.ran(1, "INT x:", "CHAN OF INT c:", "ALT", "  c ? x", "    SKIP",
+                "  FALSE & keyboard ? x",
                 "    SKIP");
         Trial.due("STANDS in an ALT", off.count(4), 3);
         MeetingHouse timed = Trial.begun(1, "TIMER t:", "t ? AFTER 100");
@@ -71,8 +73,10 @@ public final class CountTest {
     }
 
     private static void cells() {
-        MeetingHouse house = Trial.begun(1, "[10] INT v:", "PROC p(VAL [] INT a)", "  INT b:", "  SEQ", "    SKIP", "    SKIP", ":",
-                "SEQ", "  p(v)", "  SEQ", "    VAL [] BYTE s IS \"abc\":", "    [2] CHAN OF INT c, d:", "    SKIP", "  SKIP");
+        MeetingHouse house = Trial.begun(1, "[10] INT v:", "PROC p(VAL [] INT a)", "  INT b:", "  SEQ", "    SKIP",
+                "    SKIP", ":",
+                "SEQ", "  p(v)", "  SEQ", "    VAL [] BYTE s IS \"abc\":", "    [2] CHAN OF INT c, d:", "    SKIP",
+                "  SKIP");
         int[] taken = {10, 21, 21, 17, 10};
         for (int i = 0; i < taken.length; i++) {
             Trial.due("cells taken behind " + i + " steps", house.count(12), taken[i]);

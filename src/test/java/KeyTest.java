@@ -44,7 +44,8 @@ public final class KeyTest {
     }
 
     private static void queue() {
-        MeetingHouse house = Trial.begun(1, "INT s:", "SEQ i = 0 FOR 3", "  INT k:", "  SEQ", "    keyboard ? k", "    s := (s * 1000) + k");
+        MeetingHouse house = Trial.begun(1, "INT s:", "SEQ i = 0 FOR 3", "  INT k:", "  SEQ", "    keyboard ? k",
+                "    s := (s * 1000) + k");
         for (int i = 0; i < 500; i++) {
             if (!house.key(i)) {
                 Trial.due("key " + i, 0, 1);
@@ -62,7 +63,8 @@ public final class KeyTest {
     }
 
     private static void inAlt() {
-        MeetingHouse house = Trial.ran(1, "INT x:", "CHAN OF INT c:", "ALT", "  c ? x", "    STOP", "  keyboard ? x", "    x := x + 1");
+        MeetingHouse house = Trial.ran(1, "INT x:", "CHAN OF INT c:", "ALT", "  c ? x", "    STOP", "  keyboard ? x",
+                "    x := x + 1");
         Trial.due("in an ALT", house.process(0, 0), 3);
         Trial.due("key", house.key(65), true);
         Trial.due("READY", house.process(0, 0), 0);
@@ -70,7 +72,8 @@ public final class KeyTest {
         Trial.due("the ALT looks again", Trial.run(house, 1), 1);
         Trial.due("x", house.cell(0), 65);
         Trial.due("line", house.process(0, 1), 7);
-        MeetingHouse off = Trial.ran(1, "INT x:", "CHAN OF INT c:", "ALT", "  c ? x", "    STOP", "  x = 1 & keyboard ? x", "    x := x + 1");
+        MeetingHouse off = Trial.ran(1, "INT x:", "CHAN OF INT c:", "ALT", "  c ? x", "    STOP",
+                "  x = 1 & keyboard ? x", "    x := x + 1");
         Trial.due("key", off.key(65), true);
         Trial.due("it does not wait for it", off.process(0, 0), 3);
         Trial.due("STANDS", off.count(4), 3);
@@ -89,7 +92,8 @@ public final class KeyTest {
         Trial.due("through a FORMAL", through.process(0, 0), 6);
         through.key(77);
         Trial.due("x", through.cell(0), 77);
-        MeetingHouse work = Trial.ran(1, "INT x:", "INT FUNCTION f(VAL INT n)", "  VALOF", "    SEQ i = 0 FOR n", "      SKIP", "    RESULT n", ":",
+        MeetingHouse work = Trial.ran(1, "INT x:", "INT FUNCTION f(VAL INT n)", "  VALOF", "    SEQ i = 0 FOR n",
+                "      SKIP", "    RESULT n", ":",
                 "SEQ", "  x := f(40)", "  keyboard ? x", "  VAL INT y IS f(x):", "  x := y");
         Trial.due("key", work.key(49), true);
         Trial.due("FUNCTIONs count anew in key()", work.process(0, 0), 0);

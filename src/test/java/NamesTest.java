@@ -100,7 +100,8 @@ public final class NamesTest {
         reads(6, 5, "PROC p()", "  SKIP", ":", "INT x:", "x := p");
         reads(6, 3, "INT FUNCTION f() IS 1:", "INT x:", "x := f");
         reads(6, 3, "PROTOCOL p IS INT:", "INT x:", "x := p");
-        reads(0, 0, "PROC p(CHAN OF INT c)", "  SKIP", ":", "[2] CHAN OF INT d:", "CHAN OF INT e:", "SEQ", "  p(d[0])", "  p(e)");
+        reads(0, 0, "PROC p(CHAN OF INT c)", "  SKIP", ":", "[2] CHAN OF INT d:", "CHAN OF INT e:", "SEQ",
+                "  p(d[0])", "  p(e)");
         reads(6, 5, "PROC p(CHAN OF INT c)", "  SKIP", ":", "CHAN OF INT e:", "p((e))");
         reads(6, 5, "PROC p(VAL INT c)", "  SKIP", ":", "CHAN OF INT e:", "p(e + 1)");
         reads(6, 4, "INT FUNCTION f(VAL INT c) IS c:", "CHAN OF INT e:", "INT x:", "x := f(e)");

@@ -17,7 +17,8 @@ public final class SidesTest {
 
     /** Two branches in lines 7 and 8. */
     private static void two(int fault, int line, String first, String second) {
-        reads(fault, line, "INT x, y, z:", "[8] INT v:", "[4] CHAN OF INT c:", "VAL INT n IS 3:", "TIMER t:", "PAR", "  " + first,
+        reads(fault, line, "INT x, y, z:", "[8] INT v:", "[4] CHAN OF INT c:", "VAL INT n IS 3:", "TIMER t:", "PAR",
+                "  " + first,
                 "  " + second);
     }
 
@@ -62,11 +63,13 @@ public final class SidesTest {
         two(14, 8, "screen ! 'a'", "screen ! 'b'");
         two(15, 8, "keyboard ? x", "keyboard ? y");
         two(13, 8, "c[1] ? x", "c[1] ? x");
-        reads(15, 7, "CHAN OF INT c:", "INT x, y:", "PAR", "  c ? x", "  SEQ", "    ALT", "      c ? y", "        SKIP");
+        reads(15, 7, "CHAN OF INT c:", "INT x, y:", "PAR", "  c ? x", "  SEQ", "    ALT", "      c ? y",
+                "        SKIP");
     }
 
     private static void calls() {
-        String[] ahead = {"INT x, y:", "[4] INT v:", "PROC sets(INT a)", "  a := 1", ":", "PROC idle(INT a)", "  SKIP", ":",
+        String[] ahead = {"INT x, y:", "[4] INT v:", "PROC sets(INT a)", "  a := 1", ":", "PROC idle(INT a)",
+                "  SKIP", ":",
             "PROC global()", "  v[0] := x", ":", "INT FUNCTION f(VAL INT a) IS v[1] + a:", "PAR"};
         reads(0, 0, with(ahead, "  sets(x)", "  sets(y)"));
         reads(13, 15, with(ahead, "  sets(x)", "  sets(x)"));

@@ -46,7 +46,8 @@ public final class StepsTest {
     /** Three processes write down their numbers; the same is done here with the seed. */
     private static void order() {
         for (int seed : new int[] {0, 1, -1, 77, 123456789, Integer.MIN_VALUE}) {
-            MeetingHouse house = Trial.begun(seed, "[3] INT v:", "PAR i = 0 FOR 3", "  SEQ j = 0 FOR 5", "    v[i] := v[i] + 1");
+            MeetingHouse house = Trial.begun(seed, "[3] INT v:", "PAR i = 0 FOR 3", "  SEQ j = 0 FOR 5",
+                    "    v[i] := v[i] + 1");
             int s = seed * 1103515245 + 12345;
             // Eleven ACTs each: the SEQ is looked at six times.
             int[] left = {11, 11, 11};
@@ -105,7 +106,8 @@ public final class StepsTest {
     /** The value of an E, with some variables at hand. */
     private static void value(long want, String e) {
         MeetingHouse house = Trial.ran(1, "INT r, zero, one, most, least:", "[3] INT v:", "BOOL t:",
-                "SEQ", "  zero, one, most, least := 0, 1, MOSTPOS INT, MOSTNEG INT", "  v := [10, 20, 30]", "  t := TRUE", "  r := " + e);
+                "SEQ", "  zero, one, most, least := 0, 1, MOSTPOS INT, MOSTNEG INT", "  v := [10, 20, 30]",
+                "  t := TRUE", "  r := " + e);
         Trial.due(e, house.cell(0), want);
         Trial.due(e + " is no FAULT", house.count(13), 0);
     }
@@ -113,7 +115,8 @@ public final class StepsTest {
     /** The FAULT of an E. */
     private static void fault(int want, String e) {
         MeetingHouse house = Trial.ran(1, "INT r, zero, one, most, least:", "[3] INT v:", "BOOL t:",
-                "SEQ", "  zero, one, most, least := 0, 1, MOSTPOS INT, MOSTNEG INT", "  v := [10, 20, 30]", "  t := TRUE", "  r := " + e);
+                "SEQ", "  zero, one, most, least := 0, 1, MOSTPOS INT, MOSTNEG INT", "  v := [10, 20, 30]",
+                "  t := TRUE", "  r := " + e);
         Trial.due(e, Trial.stopped(house, 0), 800 + want);
         Trial.due(e + " stands", house.count(4), 3);
     }
@@ -183,7 +186,8 @@ public final class StepsTest {
     }
 
     private static void assignments() {
-        MeetingHouse house = Trial.ran(1, "INT a, b:", "[2] INT v, w:", "SEQ", "  a, b := 1, 2", "  a, b := b, a", "  v, w := [3, 4], [5, 6]",
+        MeetingHouse house = Trial.ran(1, "INT a, b:", "[2] INT v, w:", "SEQ", "  a, b := 1, 2", "  a, b := b, a",
+                "  v, w := [3, 4], [5, 6]",
                 "  v, w := w, v", "  v[v[0] - 5], v[1] := 8, 9");
         long[] want = {2, 1, 8, 9, 3, 4};
         for (int i = 0; i < want.length; i++) {
@@ -196,7 +200,8 @@ public final class StepsTest {
         MeetingHouse none = Trial.ran(1, "INT i:", "[3] INT v:", "i, v[i - 1] := 1, 7");
         Trial.due("FAULT 3", Trial.stopped(none, 0), 303);
         Trial.due("i is as it was", none.cell(0), 0);
-        MeetingHouse longer = Trial.ran(1, "INT i:", "[2] INT v:", "[3] INT w:", "PROC p([] INT a, VAL [] INT b)", "  i, a, i := 1, b, 2", ":",
+        MeetingHouse longer = Trial.ran(1, "INT i:", "[2] INT v:", "[3] INT w:", "PROC p([] INT a, VAL [] INT b)",
+                "  i, a, i := 1, b, 2", ":",
                 "p(v, w)");
         Trial.due("FAULT 9", Trial.stopped(longer, 0), 509);
         Trial.due("targets ahead have theirs", longer.cell(0), 1);
@@ -225,10 +230,12 @@ public final class StepsTest {
         stops(5, 2, "INT x:", "ALT", "  FALSE & SKIP", "    SKIP", "  x = (1 / x) & SKIP", "    SKIP");
         // 200, three times 1,600 for parameters, and 4,000 for each PROC: the last DECLARATION has no room.
         String twenty = "  [200] INT a, b, c, d, e, f, g, h, i, j, k, l, m, n, o, q, r, s, t, u:";
-        String[] text = {"PROC p1()", twenty, "  STOP", ":", "PROC p2()", twenty, "  p1()", ":", "PROC p3()", twenty, "  p2()", ":",
+        String[] text = {"PROC p1()", twenty, "  STOP", ":", "PROC p2()", twenty, "  p1()", ":", "PROC p3()", twenty,
+                "  p2()", ":",
             "PROC p4()", twenty, "  p3()", ":", "PROC t1(VAL [] INT a, b, c, d, e, f, g, h)", "  p4()", ":",
             "PROC t2(VAL [] INT a, b, c, d, e, f, g, h)", "  t1(a, a, a, a, a, a, a, a)", ":",
-            "PROC t3(VAL [] INT a, b, c, d, e, f, g, h)", "  t2(a, a, a, a, a, a, a, a)", ":", "[200] INT v:", "t3(v, v, v, v, v, v, v, v)"};
+            "PROC t3(VAL [] INT a, b, c, d, e, f, g, h)", "  t2(a, a, a, a, a, a, a, a)", ":", "[200] INT v:",
+            "t3(v, v, v, v, v, v, v, v)"};
         stops(2, 10, text);
         Trial.due("what was taken stays taken", Trial.ran(5, text).count(12), 17000);
     }
@@ -239,30 +246,37 @@ public final class StepsTest {
         Trial.due("m", house.cell(1), 3 + 4 + 5);
         MeetingHouse wraps = Trial.ran(1, "INT m:", "SEQ i = MOSTPOS INT FOR 2", "  m := i");
         Trial.due("m", wraps.cell(0), Integer.MIN_VALUE);
-        MeetingHouse fresh = Trial.ran(1, "[3] INT v:", "SEQ i = 0 FOR 3", "  INT x:", "  SEQ", "    v[i] := x", "    x := 5");
+        MeetingHouse fresh = Trial.ran(1, "[3] INT v:", "SEQ i = 0 FOR 3", "  INT x:", "  SEQ", "    v[i] := x",
+                "    x := 5");
         Trial.due("declared variables become 0", fresh.cell(0) + fresh.cell(1) + fresh.cell(2), 0);
-        MeetingHouse cases = Trial.ran(1, "[4] INT v:", "SEQ i = 0 FOR 4", "  CASE i", "    0, 2", "      v[i] := 1", "    1", "      v[i] := 2",
+        MeetingHouse cases = Trial.ran(1, "[4] INT v:", "SEQ i = 0 FOR 4", "  CASE i", "    0, 2", "      v[i] := 1",
+                "    1", "      v[i] := 2",
                 "    ELSE", "      v[i] := 3");
         Trial.due("CASE", cases.cell(0) * 1000 + cases.cell(1) * 100 + cases.cell(2) * 10 + cases.cell(3), 1213);
-        MeetingHouse bytes = Trial.ran(1, "INT r:", "BYTE b:", "SEQ", "  b := 'x'", "  CASE b", "    'y'", "      r := 1", "    'x'",
+        MeetingHouse bytes = Trial.ran(1, "INT r:", "BYTE b:", "SEQ", "  b := 'x'", "  CASE b", "    'y'",
+                "      r := 1", "    'x'",
                 "      r := 2");
         Trial.due("CASE of a BYTE", bytes.cell(0), 2);
-        MeetingHouse params = Trial.ran(1, "INT r:", "[3] INT v:", "PROC p(INT a, VAL INT b, [] INT c, VAL [] INT d)", "  SEQ", "    c[0] := 9",
+        MeetingHouse params = Trial.ran(1, "INT r:", "[3] INT v:", "PROC p(INT a, VAL INT b, [] INT c, VAL [] INT d)",
+                "  SEQ", "    c[0] := 9",
                 "    a := (b + d[0]) + (SIZE c)", ":", "SEQ", "  v[0] := 4", "  p(r, r + 1, v, v)");
         Trial.due("r", params.cell(0), 1 + 4 + 3);
         Trial.due("v[0]", params.cell(1), 9);
         // A PROC has its own names, wherever it is called.
-        MeetingHouse scope = Trial.ran(1, "INT x:", "PROC p()", "  x := x + 1", ":", "SEQ", "  INT x:", "  SEQ", "    x := 5", "    p()",
+        MeetingHouse scope = Trial.ran(1, "INT x:", "PROC p()", "  x := x + 1", ":", "SEQ", "  INT x:", "  SEQ",
+                "    x := 5", "    p()",
                 "  p()");
         Trial.due("x", scope.cell(0), 2);
     }
 
     private static void rooms() {
         // 80 processes may be there; the PAR that would make one more makes none.
-        MeetingHouse house = Trial.ran(1, "CHAN OF INT c:", "PAR", "  PAR i = 0 FOR 64", "    STOP", "  PAR i = 0 FOR 13", "    STOP");
+        MeetingHouse house = Trial.ran(1, "CHAN OF INT c:", "PAR", "  PAR i = 0 FOR 64", "    STOP",
+                "  PAR i = 0 FOR 13", "    STOP");
         Trial.due("80 processes", house.count(6), 80);
         Trial.due("STOPPED", house.count(13), 77);
-        MeetingHouse many = Trial.ran(1, "CHAN OF INT c:", "PAR", "  PAR i = 0 FOR 14", "    STOP", "  PAR i = 0 FOR 64", "    STOP");
+        MeetingHouse many = Trial.ran(1, "CHAN OF INT c:", "PAR", "  PAR i = 0 FOR 14", "    STOP",
+                "  PAR i = 0 FOR 64", "    STOP");
         int first = Trial.stopped(many, 1);
         int second = Trial.stopped(many, 2);
         Trial.due("one has FAULT 10", first == 310 && second == -1 || first == -1 && second == 510, true);
@@ -283,7 +297,8 @@ public final class StepsTest {
 
     private static void cells() {
         // Each branch takes 200 * 30 cells: the fourth one has no room.
-        MeetingHouse house = Trial.ran(1, "PROC p()", "  [200] INT a, b, c, d, e, f, g, h, i, j:", "  [200] INT k, l, m, n, o, q, r, s, t, u:",
+        MeetingHouse house = Trial.ran(1, "PROC p()", "  [200] INT a, b, c, d, e, f, g, h, i, j:",
+                "  [200] INT k, l, m, n, o, q, r, s, t, u:",
                 "  STOP", ":", "PAR i = 0 FOR 6", "  p()");
         Trial.due("cells taken", house.count(12), 20000);
         int tens = 0;
@@ -292,24 +307,31 @@ public final class StepsTest {
         }
         Trial.due("processes without room", tens, 1);
         Trial.due("STOPPED", house.count(13), 6);
-        MeetingHouse copies = Trial.ran(1, "[200] INT v:", "PROC p(VAL [] INT a)", "  PROC q(VAL [] INT b)", "    STOP", "  :", "  q(a)", ":",
+        MeetingHouse copies = Trial.ran(1, "[200] INT v:", "PROC p(VAL [] INT a)", "  PROC q(VAL [] INT b)",
+                "    STOP", "  :", "  q(a)", ":",
                 "p(v)");
         Trial.due("copies are counted", copies.count(12), 600);
     }
 
     private static void functions() {
-        MeetingHouse house = Trial.ran(1, "INT r, g:", "INT FUNCTION twice(VAL INT a) IS a + a:", "INT FUNCTION sum(VAL [] INT a)", "  INT s:",
-                "  VALOF", "    SEQ i = 0 FOR SIZE a", "      s := s + a[i]", "    RESULT s + g", ":", "BOOL FUNCTION even(VAL INT a) IS (a \\ 2) = 0:",
-                "SEQ", "  g := 100", "  r := twice(twice(3)) + sum([1, twice(1), 3])", "  IF", "    even(r)", "      r := r * 10", "    TRUE",
+        MeetingHouse house = Trial.ran(1, "INT r, g:", "INT FUNCTION twice(VAL INT a) IS a + a:",
+                "INT FUNCTION sum(VAL [] INT a)", "  INT s:",
+                "  VALOF", "    SEQ i = 0 FOR SIZE a", "      s := s + a[i]", "    RESULT s + g", ":",
+                "BOOL FUNCTION even(VAL INT a) IS (a \\ 2) = 0:",
+                "SEQ", "  g := 100", "  r := twice(twice(3)) + sum([1, twice(1), 3])", "  IF", "    even(r)",
+                "      r := r * 10", "    TRUE",
                 "      SKIP");
         Trial.due("r", house.cell(0), 1180);
         Trial.due("steps", house.count(5), 4);
-        MeetingHouse line = Trial.ran(1, "INT x:", "INT FUNCTION f(VAL INT a)", "  INT b:", "  VALOF", "    b := 1 / a", "    RESULT b", ":", "SEQ",
+        MeetingHouse line = Trial.ran(1, "INT x:", "INT FUNCTION f(VAL INT a)", "  INT b:", "  VALOF",
+                "    b := 1 / a", "    RESULT b", ":", "SEQ",
                 "  SKIP", "  x := f(x)");
         Trial.due("the line of what calls it", Trial.stopped(line, 0), 1002);
-        MeetingHouse stop = Trial.ran(1, "INT FUNCTION f()", "  VALOF", "    STOP", "    RESULT 1", ":", "VAL INT v IS f():", "SKIP");
+        MeetingHouse stop = Trial.ran(1, "INT FUNCTION f()", "  VALOF", "    STOP", "    RESULT 1", ":",
+                "VAL INT v IS f():", "SKIP");
         Trial.due("STOP in a FUNCTION", Trial.stopped(stop, 0), 600);
-        MeetingHouse procs = Trial.ran(1, "INT x:", "INT FUNCTION f(VAL INT a)", "  INT b:", "  VALOF", "    PROC add(VAL INT n)", "      b := b + n",
+        MeetingHouse procs = Trial.ran(1, "INT x:", "INT FUNCTION f(VAL INT a)", "  INT b:", "  VALOF",
+                "    PROC add(VAL INT n)", "      b := b + n",
                 "    :", "    SEQ", "      add(a)", "      add(a)", "    RESULT b", ":", "x := f(4) + f(5)");
         Trial.due("PROCs in a FUNCTION", procs.cell(0), 18);
         MeetingHouse size = Trial.ran(1, "INT x:", "INT FUNCTION f(VAL INT a) IS 1 / a:", "x := SIZE [f(x), f(x)]");
@@ -317,7 +339,8 @@ public final class StepsTest {
     }
 
     private static void functionLimits() {
-        String[] text = {"INT x:", "INT FUNCTION f(VAL INT n)", "  VALOF", "    SEQ i = 0 FOR n", "      SKIP", "    RESULT n", ":", ""};
+        String[] text = {"INT x:", "INT FUNCTION f(VAL INT n)", "  VALOF", "    SEQ i = 0 FOR n", "      SKIP",
+                "    RESULT n", ":", ""};
         // The call, and 2 * n + 1 ACTS within it.
         text[7] = "x := f(49)";
         Trial.due("100", Trial.ran(1, text).cell(0), 49);
@@ -325,7 +348,8 @@ public final class StepsTest {
         Trial.due("102", Trial.stopped(Trial.ran(1, text), 0), 811);
         text[7] = "x := f(49) + f(0)";
         Trial.due("more than 100", Trial.stopped(Trial.ran(1, text), 0), 811);
-        MeetingHouse forever = Trial.ran(1, "INT x:", "INT FUNCTION f()", "  VALOF", "    WHILE TRUE", "      SKIP", "    RESULT 1", ":", "x := f()");
+        MeetingHouse forever = Trial.ran(1, "INT x:", "INT FUNCTION f()", "  VALOF", "    WHILE TRUE", "      SKIP",
+                "    RESULT 1", ":", "x := f()");
         Trial.due("for ever", Trial.stopped(forever, 0), 811);
         String[] deep = new String[24];
         deep[0] = "INT x:";

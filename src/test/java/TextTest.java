@@ -76,7 +76,8 @@ public final class TextTest {
         value(0, "INT '-'--note");
         value(1, "INT '\u007f'");
         value(0, "INT '~'");
-        MeetingHouse house = Trial.ran(1, "SEQ", "  screen ! '*n'", "  screen ! '*t'", "  screen ! '*s'", "  screen ! '*''",
+        MeetingHouse house = Trial.ran(1, "SEQ", "  screen ! '*n'", "  screen ! '*t'", "  screen ! '*s'",
+                "  screen ! '*''",
                 "  screen ! '*\"'", "  screen ! '**'");
         Trial.dueText("escapes", Trial.shown(house), "\n\t '\"*");
     }
@@ -149,13 +150,15 @@ public final class TextTest {
         reads(2, 3, "CHAN OF INT c:", "ALT", "  (c) ? x", "    SKIP");
         reads(2, 3, "CHAN OF INT c:", "ALT", "  TRUE", "    SKIP");
         reads(2, 3, "CHAN OF INT c:", "ALT", "  TRUE & 3", "    SKIP");
-        reads(0, 0, "CHAN OF INT c:", "INT x:", "ALT", "  TRUE & c ? x", "    SKIP", "  c ? x", "    SKIP", "  1 = 2 & SKIP",
+        reads(0, 0, "CHAN OF INT c:", "INT x:", "ALT", "  TRUE & c ? x", "    SKIP", "  c ? x", "    SKIP",
+                "  1 = 2 & SKIP",
                 "    SKIP");
     }
 
     private static void declarations() {
         reads(0, 0, "INT a, b, c:", "[3] BYTE d:", "CHAN OF INT e, f:", "[2] CHAN OF BOOL g:", "TIMER t, u:", "SKIP");
-        reads(0, 0, "INT a:", "INT b IS a:", "[3] INT c:", "[] INT d IS c:", "CHAN OF INT e:", "CHAN OF INT f IS e:", "SKIP");
+        reads(0, 0, "INT a:", "INT b IS a:", "[3] INT c:", "[] INT d IS c:", "CHAN OF INT e:", "CHAN OF INT f IS e:",
+                "SKIP");
         reads(2, 2, "INT a:", "INT b, c IS a:", "SKIP");
         reads(2, 2, "[3] INT a:", "[3] INT b IS a:", "SKIP");
         reads(2, 1, "[] INT a:", "SKIP");
@@ -197,7 +200,8 @@ public final class TextTest {
         reads(2, 3, "CHAN OF INT c:", "INT a:", "c ! " + sixteen + "; a");
         reads(2, 3, "CHAN OF INT c:", "INT a:", "c ? " + sixteen + "; a");
         reads(2, 3, "PROTOCOL p", "  CASE", "    t; " + parts + "; INT", ":", "SKIP");
-        reads(0, 0, "PROTOCOL p", "  CASE", "    t; " + parts, ":", "CHAN OF p c:", "INT a:", "c ? CASE", "  t; " + sixteen,
+        reads(0, 0, "PROTOCOL p", "  CASE", "    t; " + parts, ":", "CHAN OF p c:", "INT a:", "c ? CASE",
+                "  t; " + sixteen,
                 "    SKIP");
         reads(2, 8, "PROTOCOL p", "  CASE", "    t; " + parts, ":", "CHAN OF p c:", "INT a:", "c ? CASE",
                 "  t; " + sixteen + "; a", "    SKIP");

@@ -25,12 +25,14 @@ public final class TypesTest {
 
     /** An E of a TYPE with some names in it. */
     private static void value(int fault, String type, String e) {
-        reads(fault, 8, "INT i, j:", "BYTE b:", "BOOL t:", "[3] INT v:", "[3] BYTE s:", "INT FUNCTION f(VAL INT a) IS a:",
+        reads(fault, 8, "INT i, j:", "BYTE b:", "BOOL t:", "[3] INT v:", "[3] BYTE s:",
+                "INT FUNCTION f(VAL INT a) IS a:",
                 type + " r:", "r := " + e);
     }
 
     private static void operations() {
-        for (String op : new String[] {"+", "-", "*", "/", "\\", "PLUS", "MINUS", "TIMES", "/\\", "\\/", "><", "<<", ">>"}) {
+        for (String op : new String[] {"+", "-", "*", "/", "\\", "PLUS", "MINUS", "TIMES", "/\\", "\\/", "><", "<<",
+                ">>"}) {
             value(0, "INT", "i " + op + " j");
             value(7, "BOOL", "i " + op + " j");
             value(7, "INT", "i " + op + " b");
@@ -175,7 +177,8 @@ public final class TypesTest {
         reads(7, 8, with(ahead, "VAL INT v IS 3:", "p(v, y)"));
         reads(7, 8, with(ahead, "SEQ i = 0 FOR 3", "  p(i, y)"));
         reads(9, 7, with(ahead, "p(z[3], y)"));
-        String[] channels = {"PROTOCOL k IS INT:", "PROTOCOL l IS INT:", "PROC p(CHAN OF k a, [] CHAN OF INT b)", "  SKIP", ":",
+        String[] channels = {"PROTOCOL k IS INT:", "PROTOCOL l IS INT:", "PROC p(CHAN OF k a, [] CHAN OF INT b)",
+                "  SKIP", ":",
             "CHAN OF k e:", "CHAN OF l f:", "[3] CHAN OF INT g:", "[3] CHAN OF BYTE h:", "INT x:"};
         reads(0, 0, with(channels, "p(e, g)"));
         reads(7, 11, with(channels, "p(f, g)"));
@@ -248,7 +251,8 @@ public final class TypesTest {
             "(MOSTNEG INT) / (-1)", "- (MOSTNEG INT)", "1 << 33", "1 >> (-1)", "INT (BYTE 256)", "INT (BOOL 2)"}) {
             value(9, "INT", e);
         }
-        for (String e : new String[] {"(MOSTPOS INT) PLUS 1", "(MOSTNEG INT) MINUS 1", "65536 TIMES 65536", "(MOSTNEG INT) \\ (-1)",
+        for (String e : new String[] {"(MOSTPOS INT) PLUS 1", "(MOSTNEG INT) MINUS 1", "65536 TIMES 65536",
+                "(MOSTNEG INT) \\ (-1)",
             "MINUS (MOSTNEG INT)", "1 << 32", "1 >> 0", "INT (BYTE 255)", "INT (BOOL 1)", "i / 0", "(i / 0) + 1"}) {
             value(0, "INT", e);
         }
@@ -317,8 +321,10 @@ public final class TypesTest {
         // 1,000 cells of a message.
         reads(0, 0, "PROTOCOL p IS [200] INT; [200] INT; [200] INT; [200] INT; [200] INT:", "SKIP");
         reads(9, 1, "PROTOCOL p IS [200] INT; [200] INT; [200] INT; [200] INT; [200] INT; INT:", "SKIP");
-        reads(0, 0, "PROTOCOL p", "  CASE", "    a; [200] INT; [200] INT; [200] INT; [200] INT; [199] INT", ":", "SKIP");
-        reads(9, 4, "PROTOCOL p", "  CASE", "    b", "    a; [200] INT; [200] INT; [200] INT; [200] INT; [200] INT", ":", "SKIP");
+        reads(0, 0, "PROTOCOL p", "  CASE", "    a; [200] INT; [200] INT; [200] INT; [200] INT; [199] INT", ":",
+                "SKIP");
+        reads(9, 4, "PROTOCOL p", "  CASE", "    b", "    a; [200] INT; [200] INT; [200] INT; [200] INT; [200] INT",
+                ":", "SKIP");
     }
 
     private static void options() {
