@@ -454,7 +454,7 @@ public final class CallBoundsTest {
         }
         Trial.due("cells taken", house.count(12), 1);
         // What an earlier program, or run, left there is not told.
-        MeetingHouse twice = Trial.ran(1, "INT a, b:", "a, b := 5, 6");
+        MeetingHouse twice = Trial.ran(1, "INT a, b, c, d, e, f, g, h:", "a, b, c, d, e, f, g, h := 5, 6, 7, 8, 9, 10, 11, 12");
         Trial.due("cell(1)", twice.cell(1), 6);
         Trial.feed(twice, "INT a:\nVAL INT v IS 1 / a:\nINT b:\nSKIP\n");
         twice.read();

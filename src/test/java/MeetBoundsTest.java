@@ -28,6 +28,11 @@ public final class MeetBoundsTest {
         readyBehindEachStep();
         screenAndKeyboard();
         linesOfChannels();
+        messagesThatWait();
+        oneVariantAlone();
+        waysBehindVariants();
+        altsOneBehindTheOther();
+        timesInCommon();
         Trial.finish("MeetBoundsTest");
     }
 
@@ -486,5 +491,97 @@ public final class MeetBoundsTest {
         states(house, 2, 2, 8, 0, 1, 0, -1);
         states(house, 3, 1, 15, 0, 14, 0, -1);
         states(house, 0, 5, 10, -1, 0, 0, -1);
+    }
+
+    /** Messages of several writers wait side by side, each as it was worked out. */
+    private static void messagesThatWait() {
+        String[] text = {"[6] INT r:", "PROTOCOL m IS INT; [2] INT:", "PROTOCOL k", "  CASE", "    g", "    h; INT", ":", "CHAN OF m c, d:",
+            "CHAN OF k e, f:", "CHAN OF INT a, b:", "TIMER t:", "INT x:", "[2] INT v:", "PAR", "  c ! 1; [2, 3]", "  d ! 4; [5, 6]", "  e ! h; 7",
+            "  f ! g", "  a ! 8", "  b ! 9", "  SEQ", "    t ? AFTER 100", "    a ? r[0]", "    c ? x; v", "    r[1] := (x * 100) + ((v[0] * 10) + v[1])",
+            "    e ? CASE", "      g", "        STOP", "      h; r[2]", "        SKIP", "    d ? x; v", "    r[3] := (x * 100) + ((v[0] * 10) + v[1])",
+            "    f ? CASE", "      h; x", "        STOP", "      g", "        r[4] := 1", "    b ? r[5]"};
+        for (int seed = 0; seed < 5; seed++) {
+            MeetingHouse house = Trial.ran(seed, text);
+            Trial.due("ENDED", house.count(4), 2);
+            int[] due = {8, 123, 7, 456, 1, 9};
+            for (int i = 0; i < due.length; i++) {
+                Trial.due("r[" + i + "]", house.cell(i), due[i]);
+            }
+            facts(house, 0, 10, 0, 6, 7, 1, 9);
+            facts(house, 1, 9, 0, 4, 7, 1, 0);
+            facts(house, 2, 8, 0, 2, 7, 3, 4);
+            facts(house, 3, 9, 0, 3, 7, 2, 1);
+        }
+    }
+
+    /** Of the VARIANTs only the one of the tag is done, wherever it stands. */
+    private static void oneVariantAlone() {
+        String[] ahead = {"PROTOCOL k", "  CASE", "    a; INT", "    b; INT", "    c; INT", ":", "CHAN OF k ch:", "[3] INT r:", "PAR"};
+        String[] tags = {"a", "b", "c"};
+        for (int tag = 0; tag < 3; tag++) {
+            for (int first = 1; first <= 2; first++) {
+                String[] reader = {"  ch ! " + tags[tag] + "; 5", "  ch ? CASE", "    c; r[2]", "      r[2] := r[2] + 1", "    a; r[0]",
+                    "      r[0] := r[0] + 1", "    b; r[1]", "      r[1] := r[1] + 1"};
+                MeetingHouse house = Trial.ran(seed(first), with(ahead, reader));
+                Trial.due("ENDED", house.count(4), 2);
+                for (int i = 0; i < 3; i++) {
+                    Trial.due("r[" + i + "] for " + tags[tag], house.cell(i), i == tag ? 6 : 0);
+                }
+                String[] chosen = {"  ch ! " + tags[tag] + "; 5", "  ALT", "    ch ? CASE", "      c; r[2]", "        r[2] := r[2] + 1", "      a; r[0]",
+                    "        r[0] := r[0] + 1", "      b; r[1]", "        r[1] := r[1] + 1", "    FALSE & SKIP", "      STOP"};
+                MeetingHouse alt = Trial.ran(seed(first), with(ahead, chosen));
+                Trial.due("ENDED", alt.count(4), 2);
+                for (int i = 0; i < 3; i++) {
+                    Trial.due("r[" + i + "] for " + tags[tag] + " in an ALT", alt.cell(i), i == tag ? 6 : 0);
+                }
+            }
+        }
+    }
+
+    /** Places of a VARIANT, then the way of the one that does the STEP, then the other's. */
+    private static void waysBehindVariants() {
+        String[] text = {"PROTOCOL p", "  CASE", "    b; INT", ":", "CHAN OF p c:", "[2] INT v:", "INT FUNCTION f()", "  VALOF",
+            "    SEQ i = 0 FOR 40", "      SEQ", "    RESULT 0", ":", "PAR", "  SEQ", "    c ! b; 3", "    VAL INT a IS f():", "    STOP", "  c ? CASE",
+            "    b; v[f()]", "      VAL INT a IS f():", "      STOP"};
+        MeetingHouse reader = Trial.ran(seed(1), text);
+        Trial.due("the reader does the STEP", Trial.stopped(reader, 2), 2100);
+        Trial.due("the writer goes later", Trial.stopped(reader, 1), 1611);
+        MeetingHouse writer = Trial.ran(seed(2), text);
+        Trial.due("the writer does the STEP", Trial.stopped(writer, 1), 1700);
+        Trial.due("the reader goes later", Trial.stopped(writer, 2), 2011);
+    }
+
+    /** A process waits with the GUARDs of its present ALT alone. */
+    private static void altsOneBehindTheOther() {
+        MeetingHouse house = Trial.ran(1, "INT x:", "TIMER t:", "CHAN OF INT c:", "SEQ", "  ALT", "    t ? AFTER 20", "      SKIP", "    keyboard ? x",
+                "      STOP", "  ALT", "    c ? x", "      SKIP");
+        states(house, 0, 3, 10);
+        Trial.due("it waits for no time, and for no key", house.count(4), 3);
+        Trial.due("key", house.key(1), true);
+        states(house, 0, 3, 10);
+        MeetingHouse back = Trial.ran(1, "INT x:", "TIMER t:", "CHAN OF INT c, d:", "PAR", "  SEQ", "    ALT", "      c ? x", "        SKIP", "      d ? x",
+                "        SKIP", "    ALT", "      d ? x", "        SKIP", "      keyboard ? x", "        SKIP", "  SEQ", "    t ? AFTER 9", "    c ! 1", "    c ! 2");
+        states(back, 1, 3, 11);
+        states(back, 2, 1, 19);
+        Trial.due("KEY", back.count(4), 4);
+    }
+
+    /** Of several that become READY at one time the seed chooses, by their numbers. */
+    private static void timesInCommon() {
+        for (int seed = 0; seed < 30; seed++) {
+            MeetingHouse house = Trial.begun(seed, "TIMER t:", "PAR i = 0 FOR 3", "  SEQ", "    t ? AFTER 100", "    STOP");
+            Trial.run(house, 4);
+            Trial.due("all wait", house.process(1, 0) + house.process(2, 0) + house.process(3, 0), 12);
+            Trial.run(house, 1);
+            int s = seed;
+            for (int i = 0; i < 5; i++) {
+                s = next(s);
+            }
+            int who = (s >>> 16) % 3;
+            for (int p = 0; p < 3; p++) {
+                Trial.due("seed " + seed + ", process " + (p + 1), house.process(p + 1, 1), p == who ? 5 : 4);
+                Trial.due("READY", house.process(p + 1, 0), 0);
+            }
+        }
     }
 }

@@ -30,6 +30,11 @@ public final class RuleBoundsTest {
         namesInAll();
         cellsOfMessages();
         optionsTwice();
+        namesOfDeclarations();
+        kindsOfFormals();
+        tagsOfArrays();
+        partsBesideFaults();
+        constantValues();
         Trial.finish("RuleBoundsTest");
     }
 
@@ -552,5 +557,169 @@ public final class RuleBoundsTest {
         reads(0, 0, with(ahead, "c ? CASE", "  a", "    c ? CASE", "      a", "        SKIP"));
         reads(10, 11, with(ahead, "ALT", "  c ? CASE", "    a", "      SKIP", "    a", "      SKIP"));
         reads(0, 0, with(ahead, "ALT", "  c ? CASE", "    a", "      SKIP", "  c ? CASE", "    a", "      SKIP"));
+    }
+
+    /** Names in every E of a DECLARATION are looked for. */
+    private static void namesOfDeclarations() {
+        for (String line : new String[] {"[n] INT a:", "[n] CHAN OF INT a:", "VAL INT a IS n:", "VAL [] INT a IS [1, n]:", "INT a IS n:",
+            "CHAN OF INT a IS n:", "CHAN OF n a:", "[2] CHAN OF n a:", "PROTOCOL a IS [n] INT:", "PROTOCOL a IS INT; [n] INT:",
+            "INT FUNCTION a() IS n:", "INT FUNCTION a(VAL INT b) IS n:"}) {
+            reads(5, 1, line, "SKIP");
+        }
+        reads(5, 1, "PROC a(CHAN OF n b)", "  SKIP", ":", "SKIP");
+        reads(5, 4, "PROTOCOL a", "  CASE", "    b; INT", "    c; [n] INT", ":", "SKIP");
+        reads(5, 2, "[3] INT v:", "INT a IS v[n]:", "SKIP");
+    }
+
+    /** "or NAME (like the one ahead ..": its KIND, too. */
+    private static void kindsOfFormals() {
+        String[] ahead = {"PROTOCOL k IS INT:", "PROC p(CHAN OF k a, b, [] CHAN OF k c, d)", "  SKIP", ":", "CHAN OF k x, y:",
+            "[2] CHAN OF k v, w:", "CHAN OF INT z:", "[2] CHAN OF INT u:"};
+        reads(0, 0, with(ahead, "p(x, y, v, w)"));
+        reads(7, 9, with(ahead, "p(x, z, v, w)"));
+        reads(7, 9, with(ahead, "p(x, y, v, u)"));
+        reads(7, 9, with(ahead, "p(z, y, v, w)"));
+        reads(7, 9, with(ahead, "p(x, y, u, w)"));
+        reads(0, 0, "PROTOCOL k", "  CASE", "    g", ":", "PROC p(CHAN OF k a, b)", "  b ! g", ":", "SKIP");
+    }
+
+    private static void tagsOfArrays() {
+        String[] ahead = {"PROTOCOL k", "  CASE", "    g", "    h; INT", ":", "[2] CHAN OF k c:", "INT x:"};
+        reads(0, 0, with(ahead, "c[0] ! g"));
+        reads(7, 8, with(ahead, "c ! g"));
+        reads(7, 8, with(ahead, "c ? CASE", "  g", "    SKIP"));
+        reads(0, 0, with(ahead, "c[1] ? CASE", "  g", "    SKIP"));
+        reads(7, 8, with(ahead, "c[0] ? x"));
+        reads(6, 9, with(ahead, "c[0] ? CASE", "  h; c[0]", "    SKIP"));
+        reads(7, 9, with(ahead, "c[0] ? CASE", "  h; x[0]", "    SKIP"));
+    }
+
+    /** What stands beside a fault is looked at for its own. */
+    private static void partsBesideFaults() {
+        String[] ahead = {"PROTOCOL k", "  CASE", "    g", "    h; INT", ":", "[2] CHAN OF INT c:", "[2] CHAN OF k d:", "INT x:", "[2] INT v:",
+            "PROTOCOL l", "  CASE", "    i; INT", ":"};
+        reads(9, 14, with(ahead, "c[2] ! TRUE"));
+        reads(7, 14, with(ahead, "c[2] ! 1 + TRUE"));
+        reads(9, 14, with(ahead, "c[2] ? x"));
+        reads(7, 14, with(ahead, "c[2] ? v[TRUE]"));
+        reads(7, 14, with(ahead, "c[0] ! 1; 1 + TRUE"));
+        reads(8, 14, with(ahead, "c[0] ! 1; 1 / 0"));
+        reads(9, 14, with(ahead, "d[2] ! g"));
+        reads(7, 14, with(ahead, "d[0] ! i; 1"));
+        reads(7, 15, with(ahead, "d[0] ? CASE", "  i; x", "    SKIP"));
+        reads(9, 14, with(ahead, "d[2] ? CASE", "  h; x", "    SKIP"));
+    }
+
+    private static String number(int v) {
+        return v == Integer.MIN_VALUE ? "(MOSTNEG INT)" : v < 0 ? "(" + v + ")" : "" + v;
+    }
+
+    /** A CONSTANT has the value that the run would have: both are told by SIZE and by cells. */
+    private static void constantValues() {
+        int[] values = {0, 1, 2, 3, -1, -7, 31, 32, 100, Integer.MAX_VALUE, Integer.MIN_VALUE};
+        String[] ops = {"+", "-", "*", "/", "\\", "PLUS", "MINUS", "TIMES", "/\\", "\\/", "><", "<<", ">>", "=", "<>", "<", "<=", ">", ">=", "AFTER"};
+        for (String op : ops) {
+            for (int a : values) {
+                for (int b : values) {
+                    Long want = worked(op, a, b);
+                    String e = number(a) + " " + op + " " + number(b);
+                    boolean isTruth = "= <> < <= > >= AFTER".contains(op) && !op.equals("<<") && !op.equals(">>");
+                    String whole = isTruth ? "INT (" + e + ")" : e;
+                    if (want == null) {
+                        reads(9, 2, "INT r:", "r := " + whole);
+                    } else {
+                        Trial.due(e, Trial.ran(1, "INT r:", "r := " + whole).cell(0), want);
+                        MeetingHouse run = Trial.ran(1, "INT r, a, b:", "SEQ", "  a, b := " + number(a) + ", " + number(b),
+                                "  r := " + whole.replace(e, "a " + op + " b"));
+                        Trial.due(e + " in the run", run.cell(0), want);
+                    }
+                }
+            }
+        }
+        String[][] truths = {{"TRUE AND TRUE", "1"}, {"TRUE AND FALSE", "0"}, {"FALSE AND TRUE", "0"}, {"TRUE AND TRUE AND FALSE", "0"},
+            {"TRUE AND TRUE AND TRUE", "1"}, {"FALSE OR FALSE", "0"}, {"FALSE OR TRUE", "1"}, {"TRUE OR FALSE", "1"},
+            {"FALSE OR FALSE OR TRUE", "1"}, {"FALSE OR FALSE OR FALSE", "0"}, {"NOT TRUE", "0"}, {"NOT FALSE", "1"}, {"TRUE = FALSE", "0"},
+            {"TRUE <> FALSE", "1"}, {"'a' = 'a'", "1"}, {"'a' <= 'a'", "1"}, {"'a' < 'b'", "1"}, {"'b' >= 'c'", "0"}};
+        for (String[] truth : truths) {
+            Trial.due(truth[0], Trial.ran(1, "INT r:", "r := INT (" + truth[0] + ")").cell(0), Long.parseLong(truth[1]));
+            reads(truth[1].equals("1") ? 0 : 9, 1, "[INT (" + truth[0] + ")] INT a:", "SKIP");
+            MeetingHouse run = Trial.ran(1, "INT r:", "BOOL t, f:", "BYTE a, b, c:", "SEQ", "  t, a, b, c := TRUE, 'a', 'b', 'c'",
+                    "  r := INT (" + truth[0].replace("TRUE", "t").replace("FALSE", "f").replace("'", "") + ")");
+            Trial.due(truth[0] + " in the run", run.cell(0), Long.parseLong(truth[1]));
+        }
+    }
+
+    /** What an operation comes to; null for a FAULT. */
+    private static Long worked(String op, int a, int b) {
+        long v;
+        switch (op) {
+            case "+":
+                v = (long) a + b;
+                break;
+            case "-":
+                v = (long) a - b;
+                break;
+            case "*":
+                v = (long) a * b;
+                break;
+            case "/":
+                if (b == 0) {
+                    return null;
+                }
+                v = (long) a / b;
+                break;
+            case "\\":
+                if (b == 0) {
+                    return null;
+                }
+                v = (long) a % b;
+                break;
+            case "<<":
+                if (b < 0 || b > 32) {
+                    return null;
+                }
+                v = b == 32 ? 0 : a << b;
+                break;
+            case ">>":
+                if (b < 0 || b > 32) {
+                    return null;
+                }
+                v = b == 32 ? 0 : a >>> b;
+                break;
+            default:
+                return (long) plain(op, a, b);
+        }
+        return v < Integer.MIN_VALUE || v > Integer.MAX_VALUE ? null : v;
+    }
+
+    private static int plain(String op, int a, int b) {
+        switch (op) {
+            case "PLUS":
+                return a + b;
+            case "MINUS":
+                return a - b;
+            case "TIMES":
+                return a * b;
+            case "/\\":
+                return a & b;
+            case "\\/":
+                return a | b;
+            case "><":
+                return a ^ b;
+            case "=":
+                return a == b ? 1 : 0;
+            case "<>":
+                return a != b ? 1 : 0;
+            case "<":
+                return a < b ? 1 : 0;
+            case "<=":
+                return a <= b ? 1 : 0;
+            case ">":
+                return a > b ? 1 : 0;
+            case ">=":
+                return a >= b ? 1 : 0;
+            default:
+                return a - b > 0 ? 1 : 0;
+        }
     }
 }

@@ -34,6 +34,8 @@ public final class RunBoundsTest {
         hundredInOneStep();
         twentyFunctions();
         howARunIs();
+        sizesOfFormals();
+        workBeforeBeginAndKey();
         Trial.finish("RunBoundsTest");
     }
 
@@ -606,5 +608,42 @@ public final class RunBoundsTest {
         MeetingHouse off = Trial.ran(1, "INT x:", "TIMER t:", "CHAN OF INT c:", "ALT", "  c ? x", "    SKIP", "  x = 1 & t ? AFTER 100",
                 "    SKIP");
         Trial.due("a time in a GUARD that is FALSE", off.count(4), 3);
+    }
+
+    /** SIZE of arrays without a number is that of what they were made of. */
+    private static void sizesOfFormals() {
+        MeetingHouse house = Trial.ran(1, "[6] INT r:", "PROC p([] INT a, VAL [] BYTE b, [] INT c)", "  [] INT d IS c:", "  VAL [] INT e IS d:", "  SEQ",
+                "    a[0], a[1] := SIZE a, SIZE (b)", "    a[2], a[3] := SIZE ((c)), SIZE d", "    a[4] := SIZE e", ":", "[1] INT one:",
+                "p(r, \"abcd\", one)");
+        int[] due = {6, 4, 1, 1, 1, 0};
+        for (int i = 0; i < due.length; i++) {
+            Trial.due("r[" + i + "]", house.cell(i), due[i]);
+        }
+    }
+
+    /** The 100 of FUNCTIONs begin anew in begin() and key(), whatever the STEP ahead has taken. */
+    private static void workBeforeBeginAndKey() {
+        String[] ahead = {"INT x, y:", "INT FUNCTION f(VAL INT a)", "  VALOF", "    SEQ i = 0 FOR a", "      SEQ", "    RESULT a", ":"};
+        MeetingHouse house = Trial.ran(1, with(ahead, "VAL INT v IS f(90):", "SEQ", "  x := f(90)", "  STOP"));
+        Trial.due("STOP", Trial.stopped(house, 0), 1100);
+        house.begin(1);
+        Trial.due("READY", house.process(0, 0), 0);
+        MeetingHouse last = Trial.begun(1, with(ahead, "VAL INT v IS f(90):", "SEQ", "  x := f(90)", "  STOP"));
+        Trial.run(last, 1);
+        last.begin(1);
+        Trial.due("READY", last.process(0, 0), 0);
+        MeetingHouse key = Trial.ran(1, with(ahead, "PAR", "  SEQ", "    keyboard ? x", "    VAL INT v IS f(90):", "    x := v", "  TIMER t:", "  SEQ",
+                "    t ? AFTER 50", "    y := f(90)", "    STOP"));
+        Trial.due("KEY", key.count(4), 4);
+        key.key(1);
+        Trial.due("READY", key.process(1, 0), 0);
+        MeetingHouse beside = Trial.begun(1, with(ahead, "PAR", "  SEQ", "    keyboard ? x", "    VAL INT v IS f(90):", "    x := v", "  TIMER t:",
+                "  SEQ", "    t ? AFTER 50", "    y := f(90)", "    WHILE TRUE", "      y := f(90)"));
+        Trial.run(beside, 5);
+        for (int i = 0; i < 4; i++) {
+            Trial.run(beside, 1);
+        }
+        beside.key(1);
+        Trial.due("READY", beside.process(1, 0), 0);
     }
 }

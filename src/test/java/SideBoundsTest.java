@@ -28,6 +28,14 @@ public final class SideBoundsTest {
         valuesThatAreNoIndex();
         wrappingValues();
         eachByItself();
+        everyUse();
+        usesWithinBodies();
+        usesThroughProcs();
+        severalParameters();
+        knownForms();
+        manyKnown();
+        procsThatStandAhead();
+        manyPlaces();
         Trial.finish("SideBoundsTest");
     }
 
@@ -467,5 +475,172 @@ public final class SideBoundsTest {
                 "    v[b] := 1");
         reads(13, 6, "[8] INT v:", "PAR i = 0 FOR 4", "  VAL INT a IS i * 2:", "  VAL INT b IS a + 2:", "  SEQ", "    v[a] := 1",
                 "    v[b] := 1");
+    }
+
+    /** "All else is USING": wherever an E stands, what is in it is used. */
+    private static void everyUse() {
+        String[] ahead = {"INT x, y, z:", "[4] INT v:", "[4] CHAN OF INT c:", "PROTOCOL m IS INT; [2] INT:", "CHAN OF m d:", "TIMER t:",
+            "BOOL b:", "INT FUNCTION f(VAL INT a) IS a:", "PROC p(VAL INT a, VAL [] INT e)", "  SKIP", ":", "PROC q(INT a)", "  SKIP", ":",
+            "PAR", "  x := 1"};
+        for (String e : new String[] {"x", "(x)", "- x", "~ x", "MINUS x", "x + 1", "1 + x", "INT x", "f(x)", "f(1 + x)", "v[x]", "v[f(x)]",
+            "INT (x = 1)", "INT (1 < x)", "INT ((1 = 1) AND (x = 1))", "INT ((x = 1) OR (1 = 1))", "INT (NOT (x = 1))", "x AFTER 1"}) {
+            boolean isTruth = e.contains("AFTER");
+            reads(13, 17, with(ahead, "  " + (isTruth ? "b" : "y") + " := " + e));
+        }
+        String[] acts = {"v[x] := 1", "v := [1, 2, x, 4]", "y, z := 1, x", "c[x] ! 1", "c[x] ? y", "c[0] ! x", "c[0] ? v[x]", "d ! 1; [2, x]",
+            "d ! x; [1, 2]", "t ? AFTER x", "t ? v[x]", "p(x, [1])", "p(1, [x])", "p(1, [1, x])", "q(v[x])", "WHILE x = 1", "CASE x",
+            "SEQ i = x FOR 1", "SEQ i = 0 FOR x", "VAL INT a IS x:", "VAL [] INT a IS [1, x]:", "INT a IS v[x]:", "CHAN OF INT a IS c[x]:"};
+        for (String act : acts) {
+            boolean isLoop = act.startsWith("WHILE") || act.startsWith("SEQ");
+            String behind = isLoop ? "    SKIP" : act.endsWith(":") ? "  SKIP" : "";
+            reads(13, 17, with(ahead, "  " + act, behind));
+        }
+        reads(13, 18, with(ahead, "  IF", "    x = 1", "      SKIP"));
+        reads(13, 20, with(ahead, "  IF", "    FALSE", "      SKIP", "    x = 1", "      SKIP"));
+        reads(13, 18, with(ahead, "  ALT", "    x = 1 & SKIP", "      SKIP"));
+        reads(13, 18, with(ahead, "  ALT", "    c[x] ? y", "      SKIP"));
+        reads(13, 18, with(ahead, "  ALT", "    c[0] ? v[x]", "      SKIP"));
+        reads(13, 18, with(ahead, "  ALT", "    c[0] ? x", "      SKIP"));
+        reads(13, 18, with(ahead, "  ALT", "    t ? AFTER x", "      SKIP"));
+        reads(13, 18, with(ahead, "  ALT", "    t ? x", "      SKIP"));
+    }
+
+    /** The same in every PROCESS that stands within another one. */
+    private static void usesWithinBodies() {
+        String[] ahead = {"INT x, y:", "CHAN OF INT c:", "PROTOCOL m", "  CASE", "    g; INT", "    h", ":", "CHAN OF m d:", "PAR", "  x := 1"};
+        reads(13, 12, with(ahead, "  SEQ", "    y := x"));
+        reads(13, 12, with(ahead, "  SEQ i = 0 FOR 2", "    y := x"));
+        reads(13, 12, with(ahead, "  WHILE y = 0", "    y := x"));
+        reads(13, 13, with(ahead, "  IF", "    y = 0", "      y := x"));
+        reads(13, 13, with(ahead, "  CASE y", "    0", "      y := x"));
+        reads(13, 15, with(ahead, "  CASE y", "    0", "      SKIP", "    ELSE", "      y := x"));
+        reads(13, 13, with(ahead, "  ALT", "    SKIP", "      y := x"));
+        reads(13, 13, with(ahead, "  ALT i = 0 FOR 2", "    SKIP", "      y := x"));
+        reads(13, 12, with(ahead, "  PAR", "    y := x"));
+        reads(13, 12, with(ahead, "  PAR i = 0 FOR 1", "    y := x"));
+        reads(13, 13, with(ahead, "  d ? CASE", "    g; y", "      y := x"));
+        reads(13, 12, with(ahead, "  d ? CASE", "    g; x", "      SKIP"));
+        reads(13, 14, with(ahead, "  d ? CASE", "    h", "      SKIP", "    g; x", "      SKIP"));
+        reads(13, 14, with(ahead, "  ALT", "    d ? CASE", "      g; y", "        y := x"));
+        reads(13, 13, with(ahead, "  ALT", "    d ? CASE", "      g; x", "        SKIP"));
+        reads(15, 14, with(ahead, "  d ? CASE", "    h", "      SKIP", "  d ? CASE", "    h", "      SKIP"));
+        reads(14, 12, with(ahead, "  d ! h", "  d ! h"));
+    }
+
+    /** What a PROC does with a FORMAL, or with what is outside, also through PROCs that it calls. */
+    private static void usesThroughProcs() {
+        String[] ahead = {"INT x, y:", "PROC p(INT a)", "  PROC q()", "    a := 1", "  :", "  q()", ":", "PROC r(INT a)", "  p(a)", ":",
+            "PROC s(INT a)", "  PROC q(INT b)", "    b := a", "  :", "  q(y)", ":", "PROC u(INT a)", "  PROC q()", "    a := 1", "  :", "  SKIP", ":",
+            "PAR"};
+        reads(13, 25, with(ahead, "  x := 1", "  p(x)"));
+        reads(13, 25, with(ahead, "  x := 1", "  r(x)"));
+        reads(13, 25, with(ahead, "  r(x)", "  x := 1"));
+        reads(13, 25, with(ahead, "  x := 1", "  s(x)"));
+        reads(13, 25, with(ahead, "  s(x)", "  y := 1"));
+        reads(0, 0, with(ahead, "  x := 1", "  u(x)"));
+        // Two PROCs in one, of which the first has an ACT: a FUNCTION that calls it has it, too.
+        reads(11, 15, "CHAN OF INT c:", "PROC p()", "  PROC a()", "    c ! 1", "  :", "  PROC b()", "    SKIP", "  :", "  a()", ":",
+                "INT FUNCTION f()", "  VALOF", "    SEQ", "      SKIP", "      p()", "    RESULT 1", ":", "SKIP");
+        // Several places of one PROC: each array as a whole, each variable as one.
+        String[] several = {"INT x, y:", "[9] INT v:", "[5] INT w:", "PROC p()", "  v[0], x, w[0], y := 1, 2, 3, 4", ":", "PAR", "  p()"};
+        for (String act : new String[] {"v[8] := 1", "x := 1", "w[4] := 1", "y := 1"}) {
+            reads(13, 9, with(several, "  " + act));
+        }
+    }
+
+    /** Any two of eight parameters, with VALs between them. */
+    private static void severalParameters() {
+        String[] ahead = {"PROC p(VAL INT a, INT b, VAL INT c, INT d, e, VAL INT f, g, INT h)", "  SKIP", ":", "INT s, t, u, v, w:"};
+        reads(0, 0, with(ahead, "p(s, s, s, t, u, s, t, v)"));
+        reads(12, 5, with(ahead, "p(w, s, w, s, u, w, w, v)"));
+        reads(12, 5, with(ahead, "p(w, s, w, t, s, w, w, v)"));
+        reads(12, 5, with(ahead, "p(w, s, w, t, u, w, w, s)"));
+        reads(12, 5, with(ahead, "p(w, s, w, t, t, w, w, v)"));
+        reads(12, 5, with(ahead, "p(w, s, w, t, u, w, w, t)"));
+        reads(12, 5, with(ahead, "p(w, s, w, t, u, w, w, u)"));
+        String[] outside = {"INT s, t, u, v, w:", "PROC p(VAL INT a, INT b, VAL INT c, INT d)", "  w := 1", ":"};
+        reads(0, 0, with(outside, "p(w, s, w, t)"));
+        reads(12, 5, with(outside, "p(w, w, w, t)"));
+        reads(12, 5, with(outside, "p(w, s, w, w)"));
+    }
+
+    /** "KNOWN: CONSTANT but that names of REPLICATORS may be in it": all operations. */
+    private static void knownForms() {
+        // i is 0, 1, 2; the index has the values that stand behind it, of 0 .. 8.
+        String[][] forms = {{"i", "012"}, {"(i)", "012"}, {"i + 3", "345"}, {"3 - i", "123"}, {"i * 2", "024"}, {"i / 2", "01"}, {"i \\ 2", "01"},
+            {"- (i - 2)", "012"}, {"MINUS (i - 2)", "012"}, {"~ (i - 4)", "123"}, {"INT (BYTE i)", "012"}, {"INT (i = 1)", "01"},
+            {"INT ((i = 1) OR (i = 2))", "01"}, {"INT ((i = 1) OR (i = 3) OR (i = 4))", "01"}, {"INT ((i = 1) OR (i < 3))", "1"},
+            {"INT ((i = 1) AND (i = 2))", "0"}, {"INT ((i = 1) AND (i < 2) AND (i > 0))", "01"}, {"INT ((i < 3) AND (i > (-1)))", "1"},
+            {"INT (NOT (i = 1))", "01"}, {"i << 1", "024"}, {"i /\\ 1", "01"}, {"i \\/ 4", "456"}, {"i >< 1", "013"}, {"(SIZE v) - (i + 1)", "678"},
+            {"INT (i AFTER 1)", "01"}, {"4 / i", "24"}, {"- (i PLUS (MOSTPOS INT))", ""}, {"i TIMES i", "014"},
+            {"INT (BYTE (i * 255))", "0"}, {"INT (BOOL (BYTE i))", "01"}, {"(n * 2) + i", "678"}};
+        for (String[] form : forms) {
+            for (int k = 0; k <= 8; k++) {
+                boolean isCommon = form[1].indexOf('0' + k) >= 0;
+                reads(isCommon ? 13 : 0, 6, "[9] INT v:", "VAL INT n IS 3:", "SEQ i = 0 FOR 3", "  PAR", "    v[" + form[0] + "] := 1",
+                        "    v[" + k + "] := 1");
+            }
+        }
+        // A FAULT within an operation is one of the whole: its value is none.
+        String[] faults = {"- (i + 1)", "~ ((i + 1) - 1)", "INT (BYTE (i + 1))", "(i + 1) TIMES 0", "0 TIMES (i + 1)",
+            "INT ((i = 1) AND ((i + 1) = 1))", "INT (((i + 1) = 1) AND (i = 1))"};
+        for (String e : faults) {
+            reads(0, 0, "[9] INT v:", "SEQ i = MOSTPOS INT FOR 1", "  PAR", "    v[" + e + "] := 1", "    v[0] := 1");
+        }
+        // Two names: all pairs of their values.
+        for (int k = 0; k <= 8; k++) {
+            reads(k % 3 == 2 ? 0 : 13, 6, "[9] INT v:", "SEQ i = 0 FOR 3", "  SEQ j = 0 FOR 2", "    PAR", "      v[(i * 3) + j] := 1",
+                    "      v[" + k + "] := 1");
+            reads(k % 3 == 2 ? 0 : 13, 6, "[9] INT v:", "SEQ j = 0 FOR 2", "  SEQ i = 0 FOR 3", "    PAR", "      v[j + (i * 3)] := 1",
+                    "      v[" + k + "] := 1");
+        }
+        // VALs of VALs, in any order in which they are met.
+        String[] vals = {"[16] INT v:", "PAR i = 0 FOR 4", "  VAL INT a IS i * 2:", "  VAL INT b IS a + 1:", "  VAL INT c IS b + a:"};
+        reads(0, 0, with(vals, "  v[b] := 1"));
+        reads(0, 0, with(vals, "  v[c] := 1"));
+        reads(0, 0, with(vals, "  v[c - b] := 1"));
+        reads(0, 0, with(vals, "  v[b + (a / 2)] := 1"));
+        reads(13, 6, with(vals, "  v[c - (b + a)] := 1"));
+        reads(13, 6, with(vals, "  v[b / 4] := 1"));
+    }
+
+    /** Many names of REPLICATORS beside one another: each index has its own. */
+    private static void manyKnown() {
+        String[] ahead = {"[200] INT v, w:", "SEQ", "  SEQ i = 0 FOR 100", "    PAR", "      v[i] := 1", "      v[i + 100] := 1",
+            "  SEQ j = 0 FOR 100", "    PAR", "      w[j] := 1", "      w[j + 100] := 1", "  SEQ k = 0 FOR 100", "    PAR", "      v[k] := 1"};
+        reads(0, 0, with(ahead, "      v[100] := 1"));
+        reads(13, 14, with(ahead, "      v[99] := 1"));
+        // The thousandth value counts, too.
+        reads(13, 5, "[4] INT v:", "SEQ i = 0 FOR 1000", "  PAR", "    v[i / 999] := 1", "    v[1] := 1");
+        reads(0, 0, "[4] INT v:", "SEQ i = 0 FOR 1000", "  PAR", "    v[i / 1000] := 1", "    v[1] := 1");
+        // An index that is none in both branches is none in common.
+        reads(0, 0, "[3] INT v:", "PAR", "  SEQ i = 3 FOR 1", "    v[i] := 1", "  SEQ i = 3 FOR 1", "    v[i] := 1");
+        // WEIGHTS of what stands ahead are over.
+        reads(0, 0, "[64] INT v:", "SEQ", "  ALT j = 0 FOR 64", "    SKIP", "      SKIP", "  PAR i = 0 FOR 64", "    v[i] := 1");
+        reads(0, 0, "[64] INT v:", "SEQ", "  PAR j = 0 FOR 64", "    SKIP", "  SEQ j = 0 FOR 64", "    SKIP", "  PAR i = 0 FOR 64", "    v[i] := 1");
+    }
+
+    /** The text of a PROC that stands in a branch is passed over, also in a branch ahead. */
+    private static void procsThatStandAhead() {
+        reads(0, 0, "INT x, y:", "PAR", "  PROC p()", "    x := 1", "  :", "  y := 1", "  x := 2");
+        reads(13, 7, "INT x, y:", "PAR", "  PROC p()", "    x := 1", "  :", "  p()", "  x := 2");
+        reads(13, 7, "INT x, y:", "PAR", "  PROC p()", "    SKIP", "  :", "  x := 1", "  x := 2");
+        reads(0, 0, "INT x, y:", "PAR", "  INT FUNCTION f() IS x:", "  y := 1", "  x := 2");
+        reads(13, 5, "INT x, y:", "PAR", "  INT FUNCTION f() IS x:", "  y := f()", "  x := 2");
+    }
+
+    /** Many PARs with many places each. */
+    private static void manyPlaces() {
+        StringBuilder names = new StringBuilder("a");
+        for (char c = 'b'; c <= 'z'; c++) {
+            names.append(",").append(c);
+        }
+        String[] text = {"INT " + names + ":", "SEQ"};
+        for (int k = 0; k < 26; k++) {
+            text = with(text, "  PAR", "    VAL []INT v IS [" + names + "]:", "    SKIP");
+        }
+        int line = text.length + 3;
+        reads(0, 0, with(text, "  PAR", "    y:=1", "    z:=1"));
+        reads(13, line, with(text, "  PAR", "    z:=1", "    z:=1"));
     }
 }

@@ -28,6 +28,9 @@ public final class TextBoundsTest {
         depthOfTwenty();
         depthOfVariants();
         twentyOpen();
+        firstTokens();
+        kindsAndTypes();
+        depthsOfFunctions();
         Trial.finish("TextBoundsTest");
     }
 
@@ -557,5 +560,57 @@ public final class TextBoundsTest {
         reads(0, 0, "[" + "(".repeat(19) + "1" + ")".repeat(19) + "] INT v:", "SKIP");
         reads(3, 1, "[" + "(".repeat(20) + "1" + ")".repeat(20) + "] INT v:", "SKIP");
         reads(3, 1, "PROTOCOL p IS [" + "(".repeat(20) + "1" + ")".repeat(20) + "] INT:", "SKIP");
+    }
+
+    /** A line of an IF, CASE or ALT begins with any token that an E begins with. */
+    private static void firstTokens() {
+        for (String e : new String[] {"1", "#1", "'a'", "\"a\"", "TRUE", "FALSE", "MOSTPOS INT", "MOSTNEG INT", "INT 1", "BYTE 1", "BOOL 1", "(1)",
+            "[1]", "x", "f(1)", "- 1", "~ 1", "NOT TRUE", "MINUS 1", "SIZE x"}) {
+            read(3, 22, within(20) + depth(20, "IF") + depth(21, e));
+            read(3, 22, within(20) + depth(20, "CASE 1") + depth(21, e));
+            read(3, 22, within(20) + depth(20, "ALT") + depth(21, e + " & SKIP"));
+        }
+        for (String token : new String[] {")", "]", "+", "*", ":=", "?", "!", "&", ":", ";", ",", "AFTER", "AND", "OR", "PLUS", "TIMES", "OF", "IS",
+            "FOR", "CASE", "IF", "PAR", "SEQ", "VAL", "CHAN", "PROC", "RESULT", "VALOF", "STOP"}) {
+            read(2, 22, within(20) + depth(20, "IF") + depth(21, token));
+            read(2, 22, within(20) + depth(20, "CASE 1") + depth(21, token));
+            read(2, 22, within(20) + depth(20, "ALT") + depth(21, token));
+        }
+        reads(0, 0, "INT x:", "IF", "  MOSTPOS INT = x", "    SKIP", "  MOSTNEG INT = x", "    SKIP");
+    }
+
+    /** "TYPE: INT, BYTE, BOOL .. KIND: TYPE, or a NAME. PART: TYPE, or [ E ] TYPE." */
+    private static void kindsAndTypes() {
+        reads(2, 1, "VAL a b IS 3:", "SKIP");
+        reads(2, 1, "VAL [] a b IS 3:", "SKIP");
+        reads(2, 1, "PROC p(VAL a b)", "  SKIP", ":", "SKIP");
+        reads(2, 1, "PROC p(a b)", "  SKIP", ":", "SKIP");
+        reads(2, 1, "PROC p([] a b)", "  SKIP", ":", "SKIP");
+        reads(2, 1, "[3] a b:", "SKIP");
+        reads(2, 1, "PROTOCOL p IS a:", "SKIP");
+        reads(2, 1, "PROTOCOL p IS [3] a:", "SKIP");
+        reads(2, 1, "PROTOCOL p IS [] INT:", "SKIP");
+        reads(2, 1, "PROTOCOL p IS CHAN OF INT:", "SKIP");
+        reads(2, 1, "CHAN OF CHAN OF INT c:", "SKIP");
+        reads(2, 1, "CHAN OF [3] INT c:", "SKIP");
+        reads(2, 1, "CHAN INT c:", "SKIP");
+        reads(2, 1, "CHAN OF TIMER c:", "SKIP");
+        reads(2, 1, "[2] TIMER t:", "SKIP");
+        reads(2, 1, "TIMER t IS u:", "SKIP");
+        reads(2, 1, "a FUNCTION f() IS 1:", "SKIP");
+        reads(0, 0, "PROTOCOL k IS BOOL:", "[2] CHAN OF k c:", "SKIP");
+    }
+
+    private static void depthsOfFunctions() {
+        reads(2, 3, "INT FUNCTION f()", "  INT x:", "    VALOF", "      SKIP", "    RESULT 1", ":", "SKIP");
+        reads(2, 3, "INT FUNCTION f()", "  INT x:", "VALOF", "    SKIP", "    RESULT 1", ":", "SKIP");
+        reads(2, 2, "INT FUNCTION f()", "    VALOF", "    SKIP", "    RESULT 1", ":", "SKIP");
+        reads(2, 3, "INT FUNCTION f()", "  VALOF", "  SKIP", "    RESULT 1", ":", "SKIP");
+        reads(2, 4, "INT FUNCTION f()", "  VALOF", "    SKIP", "      RESULT 1", ":", "SKIP");
+        reads(2, 5, "INT FUNCTION f()", "  VALOF", "    SKIP", "    RESULT 1", "  :", "SKIP");
+        reads(2, 5, "INT FUNCTION f()", "  VALOF", "    SKIP", "    RESULT 1", "    RESULT 2", ":", "SKIP");
+        // A fault of RESULT is in its own line.
+        reads(7, 4, "INT FUNCTION f()", "  VALOF", "    SKIP", "    RESULT TRUE", ":", "SKIP");
+        reads(9, 4, "INT FUNCTION f()", "  VALOF", "    SKIP", "    RESULT 1 / 0", ":", "SKIP");
     }
 }
