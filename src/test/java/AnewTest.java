@@ -42,6 +42,9 @@ public final class AnewTest {
         fullTexts();
         afterOpenBrackets();
         placesOfAnEarlierPar();
+        manyStrings();
+        manyCells();
+        manyCalls();
         Trial.finish("AnewTest");
     }
 
@@ -155,6 +158,57 @@ public final class AnewTest {
             Trial.due("read()", house.read(), 0);
             Trial.feed(house, TEXTS[10]);
             Trial.due("read()", house.read(), 16 * 6 + 12);
+        }
+    }
+
+    /** Texts full of strings, one behind the other. */
+    private static void manyStrings() {
+        MeetingHouse house = new MeetingHouse();
+        for (int k = 0; k < 2; k++) {
+            char sign = (char) ('a' + k);
+            StringBuilder text = new StringBuilder();
+            for (int i = 0; i < 56; i++) {
+                text.append("VAL []BYTE s IS \"").append(("" + sign).repeat(59)).append((char) ('A' + i % 26)).append("\":\n");
+            }
+            text.append("SEQ\n  screen ! s[0]\n  screen ! s[59]\n");
+            Trial.feed(house, text.toString());
+            Trial.due("read()", house.read(), 0);
+            house.begin(1);
+            Trial.run(house, 9);
+            Trial.dueText("OUTPUT", Trial.shown(house), sign + "D");
+        }
+    }
+
+    /** 20,000 cells and 400 names are those of one text. */
+    private static void manyCells() {
+        MeetingHouse house = new MeetingHouse();
+        String ten = "a, b, c, d, e, f, g, h, i, j";
+        String full = ("[200] INT " + ten + ":\n").repeat(10) + ("TIMER " + ten + ":\n").repeat(30) + "SKIP\n";
+        for (int k = 0; k < 3; k++) {
+            Trial.feed(house, full);
+            Trial.due("read()", house.read(), 0);
+            Trial.due("count(2)", house.count(2), 400);
+            house.begin(1);
+            Trial.due("count(12)", house.count(12), 20000);
+            Trial.run(house, 9);
+            Trial.due("ENDED", house.count(4), 2);
+        }
+    }
+
+    /** 60 calls are those of one run. */
+    private static void manyCalls() {
+        StringBuilder text = new StringBuilder("PROC p0()\n  STOP\n:\n");
+        for (int i = 1; i < 60; i++) {
+            text.append("PROC p").append(i).append("()\n  p").append(i - 1).append("()\n:\n");
+        }
+        text.append("PAR i = 0 FOR 2\n  p59()\n");
+        MeetingHouse house = Trial.house(text.toString());
+        Trial.due("read()", house.read(), 0);
+        for (int k = 0; k < 3; k++) {
+            house.begin(k);
+            Trial.run(house, 2000);
+            Trial.due("STOP", Trial.stopped(house, 1), 200);
+            Trial.due("STOP", Trial.stopped(house, 2), 200);
         }
     }
 }

@@ -11,6 +11,7 @@ public final class RoomTest {
         valuesAreNoPlaces();
         nothingIsFreedTwice();
         copies();
+        leapfrog();
         Trial.finish("RoomTest");
     }
 
@@ -164,6 +165,28 @@ public final class RoomTest {
         int[] due = {10, 20, 30, 10, 77, 30, 30, 77, 99};
         for (int i = 0; i < due.length; i++) {
             Trial.due("r[" + i + "]", house.cell(i), due[i]);
+        }
+    }
+
+    /** Many branches that take and free in turn, one above the other: what one holds moves together with its values. */
+    private static void leapfrog() {
+        for (int seed = 1; seed <= 6; seed++) {
+            MeetingHouse house = Trial.begun(seed, "[12] INT good:", "[12] CHAN OF INT c:", "INT all:", "PAR", "  PAR n = 0 FOR 12",
+                    "    SEQ i = 0 FOR 14", "      [90] INT a:", "      CHAN OF INT d, e:", "      INT x:", "      [70] INT b:", "      SEQ",
+                    "        a[0], a[89], b[0], b[69], x := n, i, n * i, n + i, 5", "        SKIP", "        PAR", "          e ! a[89] + b[0]",
+                    "          SEQ", "            [20 + 13] INT f:", "            SEQ", "              f[32] := n", "              e ? x",
+                    "              x := x - f[32]", "        c[n] ! 0", "        IF", "          (a[0] = n) AND (a[89] = i) AND (b[69] = (n + i))",
+                    "            IF", "              (x = ((i + (n * i)) - n)) AND (b[0] = (n * i)) AND (a[1] = 0)", "                good[n] := good[n] + 1",
+                    "              TRUE", "                SKIP", "          TRUE", "            SKIP", "  SEQ i = 0 FOR 168", "    INT y:", "    ALT j = 0 FOR 12",
+                    "      c[j] ? y", "        all := all + 1");
+            for (int i = 0; i < 6; i++) {
+                Trial.run(house, 2000);
+            }
+            Trial.due("ENDED", house.count(4), 2);
+            for (int n = 0; n < 12; n++) {
+                Trial.due("good[" + n + "]", house.cell(n), 14);
+            }
+            Trial.due("all", house.cell(12), 168);
         }
     }
 }

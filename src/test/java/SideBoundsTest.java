@@ -36,6 +36,7 @@ public final class SideBoundsTest {
         manyKnown();
         procsThatStandAhead();
         manyPlaces();
+        allElements();
         Trial.finish("SideBoundsTest");
     }
 
@@ -117,8 +118,10 @@ public final class SideBoundsTest {
         reads(0, 0, with(with(ahead, "    gives(y)"), behind));
         reads(0, 0, with(with(ahead, "    takes(x)"), behind));
         reads(11, 29, with(with(ahead, "    SEQ", "      sets()"), behind));
-        // A PROC's text has its own PROCs in it.
+        // A PROC's text has its own PROCs in it, all of them.
         reads(11, 28, with(with(ahead, "    has()"), behind));
+        reads(11, 12, "PROC p()", "  PROC a()", "    PAR", "  :", "  PROC b()", "    SKIP", "  :", "  SKIP", ":", "INT FUNCTION f()", "  VALOF",
+                "    p()", "    RESULT 1", ":", "SKIP");
     }
 
     /** "or screen ? , keyboard ! ; at the ACT". */
@@ -572,7 +575,7 @@ public final class SideBoundsTest {
             {"INT ((i = 1) OR (i = 2))", "01"}, {"INT ((i = 1) OR (i = 3) OR (i = 4))", "01"}, {"INT ((i = 1) OR (i < 3))", "1"},
             {"INT ((i = 1) AND (i = 2))", "0"}, {"INT ((i = 1) AND (i < 2) AND (i > 0))", "01"}, {"INT ((i < 3) AND (i > (-1)))", "1"},
             {"INT (NOT (i = 1))", "01"}, {"i << 1", "024"}, {"i /\\ 1", "01"}, {"i \\/ 4", "456"}, {"i >< 1", "013"}, {"(SIZE v) - (i + 1)", "678"},
-            {"INT (i AFTER 1)", "01"}, {"4 / i", "24"}, {"- (i PLUS (MOSTPOS INT))", ""}, {"i TIMES i", "014"},
+            {"INT (i AFTER 1)", "01"}, {"5 + (i - 3)", "234"}, {"(INT (i - 3)) + 5", "234"}, {"(INT (BYTE (i - 3))) + 5", ""}, {"(~ (i - 3)) + (i - 1)", "1"}, {"4 / i", "24"}, {"- (i PLUS (MOSTPOS INT))", ""}, {"i TIMES i", "014"},
             {"INT (BYTE (i * 255))", "0"}, {"INT (BOOL (BYTE i))", "01"}, {"(n * 2) + i", "678"}};
         for (String[] form : forms) {
             for (int k = 0; k <= 8; k++) {
@@ -642,5 +645,15 @@ public final class SideBoundsTest {
         int line = text.length + 3;
         reads(0, 0, with(text, "  PAR", "    y:=1", "    z:=1"));
         reads(13, line, with(text, "  PAR", "    z:=1", "    z:=1"));
+    }
+
+    /** Each element of the longest array is told apart from all others. */
+    private static void allElements() {
+        for (int k = 0; k < 200; k++) {
+            reads(13, 4, "[200] INT v:", "PAR", "  v[" + k + "] := 1", "  v[" + k + "] := 1");
+            reads(0, 0, "[200] INT v:", "PAR", "  v[" + k + "] := 1", "  v[" + (k + 1) % 200 + "] := 1");
+            reads(0, 0, "[200] INT v:", "PAR", "  v[" + k + "] := 1", "  v[" + (k + 32) % 200 + "] := 1");
+            reads(13, 4, "[200] INT v:", "PAR", "  v[" + k + "] := 1", "  v := v");
+        }
     }
 }
