@@ -6,20 +6,27 @@ import java.util.Random;
 public final class AnewTest {
     private static final String[] TEXTS = {
         Trial.lines("VAL [] BYTE s IS \"Hello*n\":", "SEQ i = 0 FOR SIZE s", "  screen ! s[i]"),
-        Trial.lines("[4] INT v:", "[5] CHAN OF INT c:", "PAR", "  c[0] ! 1", "  PAR i = 0 FOR 4", "    SEQ", "      c[i] ? v[i]",
+        Trial.lines("[4] INT v:", "[5] CHAN OF INT c:", "PAR", "  c[0] ! 1", "  PAR i = 0 FOR 4", "    SEQ",
+                "      c[i] ? v[i]",
                 "      c[i + 1] ! v[i] + 1", "  INT x:", "  SEQ", "    c[4] ? x", "    screen ! BYTE (x + 48)"),
-        Trial.lines("PROTOCOL p", "  CASE", "    a", "    b; INT", ":", "CHAN OF p c:", "INT x:", "PAR", "  SEQ", "    c ! b; 7",
-                "    c ! a", "  SEQ i = 0 FOR 2", "    c ? CASE", "      a", "        x := x + 1", "      b; x", "        SKIP"),
-        Trial.lines("INT x:", "PROC p(INT a, VAL INT b)", "  PROC q()", "    a := a + b", "  :", "  SEQ", "    q()", "    q()", ":", "SEQ",
+        Trial.lines("PROTOCOL p", "  CASE", "    a", "    b; INT", ":", "CHAN OF p c:", "INT x:", "PAR", "  SEQ",
+                "    c ! b; 7",
+                "    c ! a", "  SEQ i = 0 FOR 2", "    c ? CASE", "      a", "        x := x + 1", "      b; x",
+                        "        SKIP"),
+        Trial.lines("INT x:", "PROC p(INT a, VAL INT b)", "  PROC q()", "    a := a + b", "  :", "  SEQ", "    q()",
+                "    q()", ":", "SEQ",
                 "  p(x, 3)", "  keyboard ? x", "  STOP"),
-        Trial.lines("TIMER t:", "INT x, y:", "PAR", "  ALT", "    t ? AFTER 30", "      x := 1", "    keyboard ? y", "      x := 2",
+        Trial.lines("TIMER t:", "INT x, y:", "PAR", "  ALT", "    t ? AFTER 30", "      x := 1", "    keyboard ? y",
+                "      x := 2",
                 "  PROC r()", "    PROC s()", "      STOP", "    :", "    s()", "  :", "  r()"),
         Trial.lines("INT a:", "VAL INT b IS 7 / a:", "INT c, d, e, f, g, h:", "SKIP"),
-        Trial.lines("INT FUNCTION f(VAL INT n)", "  VALOF", "    SEQ i = 0 FOR n", "      SKIP", "    RESULT n", ":", "INT x:", "SEQ",
+        Trial.lines("INT FUNCTION f(VAL INT n)", "  VALOF", "    SEQ i = 0 FOR n", "      SKIP", "    RESULT n", ":",
+                "INT x:", "SEQ",
                 "  x := f(40)", "  VAL INT y IS f(6):", "  x := y"),
         Trial.lines("INT FUNCTION f(VAL INT n)", "  VALOF", "    SEQ i = 0 FOR n", "      SKIP", "    RESULT n", ":",
                 "VAL INT y IS f(49):", "INT x:", "x := y"),
-        Trial.lines("INT a, b, c, d, e, f, g, h, i, j, k, l, m, n, o, p:", "[9] INT v, w:", "PAR i = 0 FOR 9", "  INT q, r, s:", "  SEQ",
+        Trial.lines("INT a, b, c, d, e, f, g, h, i, j, k, l, m, n, o, p:", "[9] INT v, w:", "PAR i = 0 FOR 9",
+                "  INT q, r, s:", "  SEQ",
                 "    q, r, s := i, i * 2, i * 3", "    v[i], w[i] := q + r, s"),
         Trial.lines("PROC p(INT a, b)", "  SKIP", ":", "[9] INT v:", "SEQ i = 0 FOR 3", "  p(v[i], v[i + 3])"),
         Trial.lines("PROC p(INT a, b)", "  SKIP", ":", "[9] INT v:", "SEQ i = 0 FOR 3", "  p(v[i], v[i + 1])"),
@@ -113,7 +120,8 @@ public final class AnewTest {
             if (old.read() == 0) {
                 for (int seed = 1; seed < 5; seed++) {
                     MeetingHouse fresh = Trial.house(text);
-                    same("run with seed " + seed + " of\n" + text, answers(old, 0, seed), answers(fresh, fresh.read(), seed));
+                    same("run with seed " + seed + " of\n" + text, answers(old, 0, seed), answers(fresh, fresh.read(),
+                            seed));
                 }
             }
         }
@@ -168,7 +176,8 @@ public final class AnewTest {
             char sign = (char) ('a' + k);
             StringBuilder text = new StringBuilder();
             for (int i = 0; i < 56; i++) {
-                text.append("VAL []BYTE s IS \"").append(("" + sign).repeat(59)).append((char) ('A' + i % 26)).append("\":\n");
+                text.append("VAL []BYTE s IS \"").append(("" + sign).repeat(59)).append((char) ('A'
+                        + i % 26)).append("\":\n");
             }
             text.append("SEQ\n  screen ! s[0]\n  screen ! s[59]\n");
             Trial.feed(house, text.toString());

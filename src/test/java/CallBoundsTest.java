@@ -428,7 +428,8 @@ public final class CallBoundsTest {
     /** Promise 11: "0 for others", "behind the run's end as they were then". */
     private static void cellsOutside() {
         MeetingHouse house = Trial.begun(1, "[2] INT a:", "[2] CHAN OF INT c:", "BOOL t:", "TIMER n:",
-                "VAL INT v IS 9:", "[] INT b IS a:", "[1] BYTE d, e:", "SEQ", "  a, t, d, e := [1, 2], TRUE, \"d\", \"e\"",
+                "VAL INT v IS 9:", "[] INT b IS a:", "[1] BYTE d, e:", "SEQ",
+                        "  a, t, d, e := [1, 2], TRUE, \"d\", \"e\"",
                 "  INT x:", "  x := 77");
         int[] due = {1, 2, 1, 'd', 'e'};
         for (int i = 0; i < due.length; i++) {
@@ -454,7 +455,8 @@ public final class CallBoundsTest {
         }
         Trial.due("cells taken", house.count(12), 1);
         // What an earlier program, or run, left there is not told.
-        MeetingHouse twice = Trial.ran(1, "INT a, b, c, d, e, f, g, h:", "a, b, c, d, e, f, g, h := 5, 6, 7, 8, 9, 10, 11, 12");
+        MeetingHouse twice = Trial.ran(1, "INT a, b, c, d, e, f, g, h:",
+                "a, b, c, d, e, f, g, h := 5, 6, 7, 8, 9, 10, 11, 12");
         Trial.due("cell(1)", twice.cell(1), 6);
         Trial.feed(twice, "INT a:\nVAL INT v IS 1 / a:\nINT b:\nSKIP\n");
         twice.read();
@@ -465,7 +467,8 @@ public final class CallBoundsTest {
 
     /** Promise 12: "NONE for another what, or if it is not kept." */
     private static void meetingsOutside() {
-        MeetingHouse house = Trial.begun(1, "CHAN OF INT c:", "INT x:", "SEQ", "  PAR", "    c ! -1", "    c ? x", "  STOP");
+        MeetingHouse house = Trial.begun(1, "CHAN OF INT c:", "INT x:", "SEQ", "  PAR", "    c ! -1", "    c ? x",
+                "  STOP");
         Trial.due("no meeting", house.meeting(0, 0), -1);
         Trial.run(house, 9);
         int[] due = {1, 0, 1, 2, 1, -1, 3};

@@ -65,7 +65,7 @@ public final class MeetingsTest {
                 "CHAN OF p c:", "INT x:", "[2] INT v:",
             "PAR"};
         for (int seed = 0; seed < 6; seed++) {
-            MeetingHouse house = Trial.ran(seed, with(ahead, "  SEQ", "    c ! some; 5; [6, 7]", "    c ! none",
+            MeetingHouse house = Trial.ran(seed, Trial.with(ahead, "  SEQ", "    c ! some; 5; [6, 7]", "    c ! none",
                     "  SEQ i = 0 FOR 2", "    c ? CASE",
                     "      none", "        SKIP", "      some; x; v", "        SKIP"));
             Trial.due("ENDED", house.count(4), 2);
@@ -73,22 +73,22 @@ public final class MeetingsTest {
             Trial.due("v[1]", house.cell(2), 7);
             facts(house, 1, 7, 0, 1, 2, 4, 2);
             facts(house, 0, 7, 0, 1, 2, 1, 0);
-            MeetingHouse missing = Trial.ran(seed, with(ahead, "  SEQ", "    c ! one; 5", "    SKIP", "  c ? CASE",
+            MeetingHouse missing = Trial.ran(seed, Trial.with(ahead, "  SEQ", "    c ! one; 5", "    SKIP", "  c ? CASE",
                     "    none", "      SKIP"));
             Trial.due("FAULT 5", Trial.stopped(missing, 2), 1405);
             Trial.due("the writer goes on", missing.process(1, 0), -1);
             facts(missing, 0, 7, 0, 1, 2, 2, 1);
-            MeetingHouse index = Trial.ran(seed, with(ahead, "  SEQ", "    c ! one; 5", "    SKIP", "  INT y:",
+            MeetingHouse index = Trial.ran(seed, Trial.with(ahead, "  SEQ", "    c ! one; 5", "    SKIP", "  INT y:",
                     "  c ? CASE", "    one; v[y - 1]",
                     "      SKIP"));
             Trial.due("FAULT 3", Trial.stopped(index, 2), 1503);
             Trial.due("the writer goes on", index.process(1, 0), -1);
             Trial.due("meetings", index.count(8), 1);
-            MeetingHouse inAlt = Trial.ran(seed, with(ahead, "  c ! one; 5", "  ALT", "    c ? CASE", "      none",
+            MeetingHouse inAlt = Trial.ran(seed, Trial.with(ahead, "  c ! one; 5", "  ALT", "    c ? CASE", "      none",
                     "        STOP", "      one; x",
                     "        x := x + 1"));
             Trial.due("x", inAlt.cell(0), 6);
-            MeetingHouse noTag = Trial.ran(seed, with(ahead, "  c ! one; 5", "  ALT", "    c ? CASE", "      none",
+            MeetingHouse noTag = Trial.ran(seed, Trial.with(ahead, "  c ! one; 5", "  ALT", "    c ? CASE", "      none",
                     "        STOP"));
             Trial.due("FAULT 5 at the GUARD", Trial.stopped(noTag, 2), 1305);
         }
@@ -318,11 +318,5 @@ public final class MeetingsTest {
         Trial.due("ENDED", house.count(4), 2);
         Trial.due("v[3]", house.cell(3), 4);
         Trial.due("clashes()", house.clashes(), 0);
-    }
-
-    private static String[] with(String[] ahead, String... behind) {
-        String[] all = java.util.Arrays.copyOf(ahead, ahead.length + behind.length);
-        System.arraycopy(behind, 0, all, ahead.length, behind.length);
-        return all;
     }
 }

@@ -111,25 +111,19 @@ public final class NamesTest {
 
     private static void tags() {
         String[] ahead = {"PROTOCOL p", "  CASE", "    a", "    b; INT", ":", "CHAN OF p c:", "INT x:"};
-        reads(0, 0, with(ahead, "c ! a"));
-        reads(0, 0, with(ahead, "c ! b; 3"));
-        reads(6, 8, with(ahead, "c ! x"));
-        reads(5, 8, with(ahead, "c ! y"));
-        reads(7, 8, with(ahead, "c ! (x)"));
-        reads(6, 8, with(ahead, "c ! b[0]"));
-        reads(6, 8, with(ahead, "x := a"));
-        reads(6, 9, with(ahead, "CHAN OF INT d:", "d ! a"));
-        reads(6, 8, with(ahead, "c ! b; a"));
-        reads(6, 9, with(ahead, "c ? CASE", "  x", "    SKIP"));
-        reads(6, 9, with(ahead, "INT a:", "c ! a"));
+        reads(0, 0, Trial.with(ahead, "c ! a"));
+        reads(0, 0, Trial.with(ahead, "c ! b; 3"));
+        reads(6, 8, Trial.with(ahead, "c ! x"));
+        reads(5, 8, Trial.with(ahead, "c ! y"));
+        reads(7, 8, Trial.with(ahead, "c ! (x)"));
+        reads(6, 8, Trial.with(ahead, "c ! b[0]"));
+        reads(6, 8, Trial.with(ahead, "x := a"));
+        reads(6, 9, Trial.with(ahead, "CHAN OF INT d:", "d ! a"));
+        reads(6, 8, Trial.with(ahead, "c ! b; a"));
+        reads(6, 9, Trial.with(ahead, "c ? CASE", "  x", "    SKIP"));
+        reads(6, 9, Trial.with(ahead, "INT a:", "c ! a"));
         // A tag may have its PROTOCOL's name; the tag is meant then.
         reads(6, 5, "PROTOCOL q", "  CASE", "    q", ":", "CHAN OF q c:", "SKIP");
-    }
-
-    private static String[] with(String[] ahead, String... behind) {
-        String[] all = java.util.Arrays.copyOf(ahead, ahead.length + behind.length);
-        System.arraycopy(behind, 0, all, ahead.length, behind.length);
-        return all;
     }
 
     private static void order() {

@@ -12,6 +12,7 @@ public final class RoomTest {
         nothingIsFreedTwice();
         copies();
         leapfrog();
+        nothingBelow();
         Trial.finish("RoomTest");
     }
 
@@ -94,10 +95,13 @@ public final class RoomTest {
 
     /** Branches that come and go beside one that stays: its cells stay as they are. */
     private static void inAndOut() {
-        MeetingHouse house = Trial.begun(3, "[3] INT r:", "CHAN OF INT c:", "PAR", "  [150] INT keep:", "  INT got:", "  SEQ",
+        MeetingHouse house = Trial.begun(3, "[3] INT r:", "CHAN OF INT c:", "PAR", "  [150] INT keep:", "  INT got:",
+                "  SEQ",
                 "    SEQ i = 0 FOR 150", "      keep[i] := i + 7", "    c ? got", "    SEQ i = 0 FOR 150", "      IF",
-                "        keep[i] = (i + 7)", "          r[0] := r[0] + 1", "        TRUE", "          SKIP", "  SEQ", "    SEQ i = 0 FOR 40",
-                "      [200] INT a, b, d, e, f:", "      VAL [] INT g IS a:", "      SEQ", "        a[0], b[199], d[5], e[6], f[7] := i, i, i, i, i",
+                "        keep[i] = (i + 7)", "          r[0] := r[0] + 1", "        TRUE", "          SKIP", "  SEQ",
+                        "    SEQ i = 0 FOR 40",
+                "      [200] INT a, b, d, e, f:", "      VAL [] INT g IS a:", "      SEQ",
+                        "        a[0], b[199], d[5], e[6], f[7] := i, i, i, i, i",
                 "        r[1] := ((a[0] + b[199]) + (d[5] + e[6])) + (f[7] + g[0])", "    c ! 1");
         Trial.run(house, 2000);
         Trial.due("ENDED", house.count(4), 2);
@@ -108,10 +112,13 @@ public final class RoomTest {
     /** Room for more and more: 4,000 cells, 8,000, up to 20,000, with values in the first and the last. */
     private static void sizesThatGrow() {
         String ten = "a, b, c, d, e, f, g, h, k, l";
-        MeetingHouse house = Trial.begun(9, "[5] INT r:", "[5] CHAN OF INT go:", "PROC p(VAL INT n, INT r, CHAN OF INT in)",
+        MeetingHouse house = Trial.begun(9, "[5] INT r:", "[5] CHAN OF INT go:",
+                "PROC p(VAL INT n, INT r, CHAN OF INT in)",
                 "  [200] INT " + ten + ":", "  [199] INT m, o, q, s, t, u, v, w, x, y:", "  INT z:", "  SEQ",
-                "    a[0], l[199], m[0], y[198] := n, n + 1, n + 2, n + 3", "    in ? z", "    r := (a[0] + l[199]) + (m[0] + y[198])",
-                ":", "PAR", "  SEQ", "    TIMER t:", "    t ? AFTER 500", "    SEQ i = 0 FOR 5", "      go[(i * 2) \\ 5] ! 0",
+                "    a[0], l[199], m[0], y[198] := n, n + 1, n + 2, n + 3", "    in ? z",
+                        "    r := (a[0] + l[199]) + (m[0] + y[198])",
+                ":", "PAR", "  SEQ", "    TIMER t:", "    t ? AFTER 500", "    SEQ i = 0 FOR 5",
+                        "      go[(i * 2) \\ 5] ! 0",
                 "  PAR i = 0 FOR 5", "    p(i * 10, r[i], go[i])");
         // The two PARs, the time, and a call, := and ? of each branch: all wait then.
         Trial.run(house, 3 + 15);
@@ -128,9 +135,12 @@ public final class RoomTest {
     private static void valuesAreNoPlaces() {
         for (int big : new int[] {32767, 32768, 65536, 98304, 131072, Integer.MAX_VALUE, Integer.MIN_VALUE}) {
             String e = big == Integer.MIN_VALUE ? "MOSTNEG INT" : "" + big;
-            MeetingHouse house = Trial.begun(1, "INT a:", "[3] INT v:", "[2] INT w:", "PROC p(VAL INT n, [] INT x, INT y)", "  SKIP", ":",
-                    "SEQ", "  a, v, w := " + e + ", [1, 2, 3], [4, 5]", "  SEQ", "    VAL INT b IS a:", "    SKIP", "  SEQ", "    [] INT x IS v:",
-                    "    INT y IS w[1]:", "    SKIP", "  p(a, v, w[0])", "  SEQ", "    INT fresh:", "    fresh := 9", "  STOP");
+            MeetingHouse house = Trial.begun(1, "INT a:", "[3] INT v:", "[2] INT w:",
+                    "PROC p(VAL INT n, [] INT x, INT y)", "  SKIP", ":",
+                    "SEQ", "  a, v, w := " + e + ", [1, 2, 3], [4, 5]", "  SEQ", "    VAL INT b IS a:", "    SKIP",
+                            "  SEQ", "    [] INT x IS v:",
+                    "    INT y IS w[1]:", "    SKIP", "  p(a, v, w[0])", "  SEQ", "    INT fresh:", "    fresh := 9",
+                            "  STOP");
             Trial.run(house, 2000);
             Trial.due("cells with " + e, house.count(12), 6);
             int[] due = {big, 1, 2, 3, 4, 5};
@@ -141,10 +151,13 @@ public final class RoomTest {
     }
 
     private static void nothingIsFreedTwice() {
-        MeetingHouse house = Trial.begun(1, "[2] INT r:", "PROC p([] INT a, VAL [] INT b)", "  [2] INT c:", "  SEQ", "    c := b", "    a := c",
+        MeetingHouse house = Trial.begun(1, "[2] INT r:", "PROC p([] INT a, VAL [] INT b)", "  [2] INT c:", "  SEQ",
+                "    c := b", "    a := c",
                 ":", "INT FUNCTION f(VAL [] INT a)", "  VAL [] INT b IS a:", "  VALOF", "    [3] INT c:",
-                "    c[2] := b[1]", "    RESULT b[0] + b[1]", ":", "SEQ i = 0 FOR 50", "  SEQ", "    p(r, [i, 1])", "    r[1] := f(r) + f([i, i])",
-                "    [2] INT s:", "    p(s, r)", "    PAR", "      INT x:", "      x := 1", "      [2] BYTE y:", "      y := \"ab\"");
+                "    c[2] := b[1]", "    RESULT b[0] + b[1]", ":", "SEQ i = 0 FOR 50", "  SEQ", "    p(r, [i, 1])",
+                        "    r[1] := f(r) + f([i, i])",
+                "    [2] INT s:", "    p(s, r)", "    PAR", "      INT x:", "      x := 1", "      [2] BYTE y:",
+                        "      y := \"ab\"");
         for (int i = 0; i < 40; i++) {
             Trial.run(house, 25);
             int taken = house.count(12);
@@ -158,10 +171,14 @@ public final class RoomTest {
 
     /** "VALs and FORMALs with VAL that are arrays are made anew as they are worked out". */
     private static void copies() {
-        MeetingHouse house = Trial.ran(1, "[9] INT r:", "[3] INT v:", "PROC p([] INT to, VAL [] INT from)", "  SEQ", "    v[0] := 99",
-                "    SEQ i = 0 FOR SIZE from", "      to[i] := from[i]", ":", "[3] INT a, b, c:", "SEQ", "  v := [10, 20, 30]", "  SEQ",
-                "    VAL [] INT w IS v:", "    SEQ", "      v[1] := 77", "      r[0], r[1], r[2] := w[0], w[1], w[2]", "  p(a, v)",
-                "  r[3], r[4], r[5] := a[0], a[1], a[2]", "  p(b, [v[2], v[1], v[0]])", "  r[6], r[7], r[8] := b[0], b[1], b[2]");
+        MeetingHouse house = Trial.ran(1, "[9] INT r:", "[3] INT v:", "PROC p([] INT to, VAL [] INT from)", "  SEQ",
+                "    v[0] := 99",
+                "    SEQ i = 0 FOR SIZE from", "      to[i] := from[i]", ":", "[3] INT a, b, c:", "SEQ",
+                        "  v := [10, 20, 30]", "  SEQ",
+                "    VAL [] INT w IS v:", "    SEQ", "      v[1] := 77", "      r[0], r[1], r[2] := w[0], w[1], w[2]",
+                        "  p(a, v)",
+                "  r[3], r[4], r[5] := a[0], a[1], a[2]", "  p(b, [v[2], v[1], v[0]])",
+                        "  r[6], r[7], r[8] := b[0], b[1], b[2]");
         int[] due = {10, 20, 30, 10, 77, 30, 30, 77, 99};
         for (int i = 0; i < due.length; i++) {
             Trial.due("r[" + i + "]", house.cell(i), due[i]);
@@ -171,13 +188,20 @@ public final class RoomTest {
     /** Many branches that take and free in turn, one above the other: what one holds moves together with its values. */
     private static void leapfrog() {
         for (int seed = 1; seed <= 6; seed++) {
-            MeetingHouse house = Trial.begun(seed, "[12] INT good:", "[12] CHAN OF INT c:", "INT all:", "PAR", "  PAR n = 0 FOR 12",
-                    "    SEQ i = 0 FOR 14", "      [90] INT a:", "      CHAN OF INT d, e:", "      INT x:", "      [70] INT b:", "      SEQ",
-                    "        a[0], a[89], b[0], b[69], x := n, i, n * i, n + i, 5", "        SKIP", "        PAR", "          e ! a[89] + b[0]",
-                    "          SEQ", "            [20 + 13] INT f:", "            SEQ", "              f[32] := n", "              e ? x",
-                    "              x := x - f[32]", "        c[n] ! 0", "        IF", "          (a[0] = n) AND (a[89] = i) AND (b[69] = (n + i))",
-                    "            IF", "              (x = ((i + (n * i)) - n)) AND (b[0] = (n * i)) AND (a[1] = 0)", "                good[n] := good[n] + 1",
-                    "              TRUE", "                SKIP", "          TRUE", "            SKIP", "  SEQ i = 0 FOR 168", "    INT y:", "    ALT j = 0 FOR 12",
+            MeetingHouse house = Trial.begun(seed, "[12] INT good:", "[12] CHAN OF INT c:", "INT all:", "PAR",
+                    "  PAR n = 0 FOR 12",
+                    "    SEQ i = 0 FOR 14", "      [90] INT a:", "      CHAN OF INT d, e:", "      INT x:",
+                            "      [70] INT b:", "      SEQ",
+                    "        a[0], a[89], b[0], b[69], x := n, i, n * i, n + i, 5", "        SKIP", "        PAR",
+                            "          e ! a[89] + b[0]",
+                    "          SEQ", "            [20 + 13] INT f:", "            SEQ", "              f[32] := n",
+                            "              e ? x",
+                    "              x := x - f[32]", "        c[n] ! 0", "        IF",
+                            "          (a[0] = n) AND (a[89] = i) AND (b[69] = (n + i))",
+                    "            IF", "              (x = ((i + (n * i)) - n)) AND (b[0] = (n * i)) AND (a[1] = 0)",
+                            "                good[n] := good[n] + 1",
+                    "              TRUE", "                SKIP", "          TRUE", "            SKIP",
+                            "  SEQ i = 0 FOR 168", "    INT y:", "    ALT j = 0 FOR 12",
                     "      c[j] ? y", "        all := all + 1");
             for (int i = 0; i < 6; i++) {
                 Trial.run(house, 2000);
@@ -187,6 +211,23 @@ public final class RoomTest {
                 Trial.due("good[" + n + "]", house.cell(n), 14);
             }
             Trial.due("all", house.cell(12), 168);
+        }
+    }
+
+    /** The same without any cells of the program itself: the lowest ones are freed, too. */
+    private static void nothingBelow() {
+        for (int seed = 1; seed <= 6; seed++) {
+            MeetingHouse house = Trial.begun(seed, "PAR n = 0 FOR 20", "  SEQ i = 0 FOR 14", "    [90] INT a:",
+                    "    INT x:", "    [70] INT b:", "    SEQ",
+                    "      a[0], a[89], b[0], b[69], x := n, i, n * i, n + i, 5", "      SKIP", "      SKIP", "      IF",
+                    "        (a[0] = n) AND (a[89] = i) AND (b[0] = (n * i)) AND (b[69] = (n + i)) AND (x = 5) AND (a[1] = 0) AND (b[1] = 0)",
+                    "          SKIP");
+            Trial.run(house, 2000);
+            Trial.due("goes on", house.count(4) == 1 || house.count(4) == 2, true);
+            Trial.run(house, 2000);
+            Trial.due("none is STOPPED", house.count(13), 0);
+            Trial.due("ENDED", house.count(4), 2);
+            Trial.due("STEPS", house.count(5), 1 + 20 * (15 + 14 * 5));
         }
     }
 }

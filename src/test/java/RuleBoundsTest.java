@@ -42,12 +42,6 @@ public final class RuleBoundsTest {
         Trial.reads(fault, line, lines);
     }
 
-    private static String[] with(String[] ahead, String... behind) {
-        String[] all = Arrays.copyOf(ahead, ahead.length + behind.length);
-        System.arraycopy(behind, 0, all, ahead.length, behind.length);
-        return all;
-    }
-
     /** "A NAME is known from behind its DECLARATION (of PROC and FUNCTION: behind their last line; FORMALs: behind
      * their list, a REPLICATOR's: behind it, within alone)". */
     private static void knownFrom() {
@@ -123,7 +117,8 @@ public final class RuleBoundsTest {
         reads(8, 2, "INT x:", "x, x := 1 / 0");
         reads(9, 4, "INT x:", "PAR", "  x := 1", "  x := 1 / 0");
         reads(11, 5, "INT x:", "PAR", "  x := 1", "  SEQ", "    keyboard ! 1", "    x := 1");
-        reads(12, 8, "PROC p(INT a, b)", "  SKIP", ":", "INT x:", "PAR", "  x := 1", "  SEQ", "    p(x, x)", "    x := 1");
+        reads(12, 8, "PROC p(INT a, b)", "  SKIP", ":", "INT x:", "PAR", "  x := 1", "  SEQ", "    p(x, x)",
+                "    x := 1");
         reads(13, 5, "CHAN OF INT c:", "INT x:", "PAR", "  c ? x", "  c ? x");
         reads(14, 5, "CHAN OF INT c:", "INT x:", "PAR", "  c ! 1", "  c ! x");
     }
@@ -160,22 +155,23 @@ public final class RuleBoundsTest {
             "INT FUNCTION f() IS 1:", "PROTOCOL k IS INT:", "PROTOCOL l", "  CASE", "    g", ":", "INT y:"};
         String[] names = {"x", "c", "t", "v", "q", "f", "k", "l", "g"};
         String[][] where = {{"@ := 1", "x"}, {"@ ? AFTER 1", "t"}, {"@ ? y", "c t"}, {"@ ? y; y", "c"}, {"@ ! 1", "c"},
-            {"c ? @", "x"}, {"@()", "q"}, {"y := @()", "f"}, {"y := @", "x v"}, {"y := 1 + @", "x v"}, {"y := (@)", "x v"}};
+            {"c ? @", "x"}, {"@()", "q"}, {"y := @()", "f"}, {"y := @", "x v"}, {"y := 1 + @", "x v"}, {"y := (@)",
+                    "x v"}};
         for (String[] one : where) {
             for (String name : names) {
                 boolean stands = Arrays.asList(one[1].split(" ")).contains(name);
                 String act = one[0].replace("@", name);
-                String text = Trial.lines(with(all, act));
+                String text = Trial.lines(Trial.with(all, act));
                 int got = Trial.house(text).read();
                 // What can stand there may have a fault of a later round.
                 Trial.due(act, got == 15 * 16 + 6, !stands);
             }
         }
         for (String name : names) {
-            reads(name.equals("x") ? 0 : 6, 15, with(all, "INT z IS " + name + ":", "SKIP"));
-            reads(name.equals("c") ? 0 : 6, 15, with(all, "CHAN OF INT z IS " + name + ":", "SKIP"));
+            reads(name.equals("x") ? 0 : 6, 15, Trial.with(all, "INT z IS " + name + ":", "SKIP"));
+            reads(name.equals("c") ? 0 : 6, 15, Trial.with(all, "CHAN OF INT z IS " + name + ":", "SKIP"));
             boolean isProtocol = name.equals("k") || name.equals("l");
-            reads(isProtocol ? 0 : 6, 15, with(all, "CHAN OF " + name + " z:", "SKIP"));
+            reads(isProtocol ? 0 : 6, 15, Trial.with(all, "CHAN OF " + name + " z:", "SKIP"));
         }
         reads(6, 2, "SEQ i = 0 FOR 1", "  i := 1");
         reads(0, 0, "INT y:", "SEQ i = 0 FOR 1", "  y := i");
@@ -184,21 +180,21 @@ public final class RuleBoundsTest {
     /** "behind ! of a channel of a PROTOCOL with tags the first OUT, if it is a NAME alone, a tag". */
     private static void messagesOfTags() {
         String[] ahead = {"PROTOCOL p", "  CASE", "    a; INT", "    b", ":", "CHAN OF p c:", "INT x:", "[2] INT v:"};
-        reads(0, 0, with(ahead, "c ! b"));
-        reads(6, 9, with(ahead, "c ! x"));
-        reads(6, 9, with(ahead, "c ! c"));
-        reads(5, 9, with(ahead, "c ! n"));
-        reads(7, 9, with(ahead, "c ! v[0]"));
-        reads(7, 9, with(ahead, "c ! (x)"));
-        reads(7, 9, with(ahead, "c ! 1"));
+        reads(0, 0, Trial.with(ahead, "c ! b"));
+        reads(6, 9, Trial.with(ahead, "c ! x"));
+        reads(6, 9, Trial.with(ahead, "c ! c"));
+        reads(5, 9, Trial.with(ahead, "c ! n"));
+        reads(7, 9, Trial.with(ahead, "c ! v[0]"));
+        reads(7, 9, Trial.with(ahead, "c ! (x)"));
+        reads(7, 9, Trial.with(ahead, "c ! 1"));
         // "a tag of that PROTOCOL alone": no index, no operation.
-        reads(6, 9, with(ahead, "c ! b[0]"));
-        reads(6, 9, with(ahead, "c ! b + 1"));
-        reads(6, 9, with(ahead, "c ! a; b"));
-        reads(6, 9, with(ahead, "x := b"));
-        reads(6, 10, with(ahead, "CHAN OF INT d:", "d ! b"));
-        reads(6, 10, with(ahead, "c ? CASE", "  x", "    SKIP"));
-        reads(5, 10, with(ahead, "c ? CASE", "  n", "    SKIP"));
+        reads(6, 9, Trial.with(ahead, "c ! b[0]"));
+        reads(6, 9, Trial.with(ahead, "c ! b + 1"));
+        reads(6, 9, Trial.with(ahead, "c ! a; b"));
+        reads(6, 9, Trial.with(ahead, "x := b"));
+        reads(6, 10, Trial.with(ahead, "CHAN OF INT d:", "d ! b"));
+        reads(6, 10, Trial.with(ahead, "c ? CASE", "  x", "    SKIP"));
+        reads(5, 10, Trial.with(ahead, "c ? CASE", "  n", "    SKIP"));
     }
 
     /** "(.. A FORMAL of a FUNCTION has VAL, else 6 at it.)" */
@@ -215,26 +211,26 @@ public final class RuleBoundsTest {
      * FUNCTION always)". */
     private static void faultyFits() {
         String[] ahead = {"INT i:", "BOOL t:", "[3] INT v:", "INT FUNCTION f(VAL INT a) IS a:"};
-        reads(9, 5, with(ahead, "t := 1 / 0"));
-        reads(9, 5, with(ahead, "t := (1 / 0)"));
-        reads(9, 5, with(ahead, "v := 1 / 0"));
-        reads(7, 5, with(ahead, "t := 1 + (1 / 0)"));
-        reads(7, 5, with(ahead, "t := - (1 / 0)"));
-        reads(9, 5, with(ahead, "t := NOT (1 / 0)"));
-        reads(9, 5, with(ahead, "t := 1 = (1 / 0)"));
-        reads(9, 5, with(ahead, "t := t = (1 / 0)"));
-        reads(7, 5, with(ahead, "t := t < (1 / 0)"));
-        reads(9, 5, with(ahead, "t := (1 / 0) OR t"));
-        reads(9, 5, with(ahead, "t := v[3]"));
-        reads(7, 5, with(ahead, "t := v[1 / 0]"));
-        reads(7, 5, with(ahead, "t := INT (1 / 0)"));
-        reads(9, 5, with(ahead, "t := BOOL (1 / 0)"));
-        reads(7, 5, with(ahead, "t := f(1 / 0)"));
-        reads(7, 5, with(ahead, "t := f()"));
-        reads(8, 5, with(ahead, "i := f()"));
-        reads(9, 6, with(ahead, "IF", "  1 / 0", "    SKIP"));
-        reads(9, 5, with(ahead, "WHILE 1 / 0", "  SKIP"));
-        reads(9, 5, with(ahead, "CASE 1 / 0", "  ELSE", "    SKIP"));
+        reads(9, 5, Trial.with(ahead, "t := 1 / 0"));
+        reads(9, 5, Trial.with(ahead, "t := (1 / 0)"));
+        reads(9, 5, Trial.with(ahead, "v := 1 / 0"));
+        reads(7, 5, Trial.with(ahead, "t := 1 + (1 / 0)"));
+        reads(7, 5, Trial.with(ahead, "t := - (1 / 0)"));
+        reads(9, 5, Trial.with(ahead, "t := NOT (1 / 0)"));
+        reads(9, 5, Trial.with(ahead, "t := 1 = (1 / 0)"));
+        reads(9, 5, Trial.with(ahead, "t := t = (1 / 0)"));
+        reads(7, 5, Trial.with(ahead, "t := t < (1 / 0)"));
+        reads(9, 5, Trial.with(ahead, "t := (1 / 0) OR t"));
+        reads(9, 5, Trial.with(ahead, "t := v[3]"));
+        reads(7, 5, Trial.with(ahead, "t := v[1 / 0]"));
+        reads(7, 5, Trial.with(ahead, "t := INT (1 / 0)"));
+        reads(9, 5, Trial.with(ahead, "t := BOOL (1 / 0)"));
+        reads(7, 5, Trial.with(ahead, "t := f(1 / 0)"));
+        reads(7, 5, Trial.with(ahead, "t := f()"));
+        reads(8, 5, Trial.with(ahead, "i := f()"));
+        reads(9, 6, Trial.with(ahead, "IF", "  1 / 0", "    SKIP"));
+        reads(9, 5, Trial.with(ahead, "WHILE 1 / 0", "  SKIP"));
+        reads(9, 5, Trial.with(ahead, "CASE 1 / 0", "  ELSE", "    SKIP"));
         // A CONSTANT of what has a fault there is none: its other uses are not looked at for 9 in other lines.
         reads(9, 1, "VAL INT n IS 1 / 0:", "[n] INT w:", "SKIP");
     }
@@ -262,69 +258,70 @@ public final class RuleBoundsTest {
         String[] ahead = {"[3] INT a:", "[] INT b IS a:", "[] INT c IS b:", "VAL [] INT d IS c:", "VAL [] INT e IS (d):",
             "VAL [] INT f IS [1, 2, 3]:", "VAL [] BYTE g IS \"abc\":", "[4] INT z:"};
         for (String name : new String[] {"a", "b", "c", "d", "e", "f"}) {
-            reads(7, 9, with(ahead, "z := " + name));
-            reads(0, 0, with(ahead, "a := " + name));
-            reads(0, 0, with(ahead, "[SIZE " + name + "] INT n:", "n[2] := 1"));
-            reads(9, 10, with(ahead, "[SIZE " + name + "] INT n:", "n[3] := 1"));
-            reads(0, 0, with(ahead, "z[0] := " + name + "[2]"));
-            reads(9, 9, with(ahead, "z[0] := " + name + "[3]"));
+            reads(7, 9, Trial.with(ahead, "z := " + name));
+            reads(0, 0, Trial.with(ahead, "a := " + name));
+            reads(0, 0, Trial.with(ahead, "[SIZE " + name + "] INT n:", "n[2] := 1"));
+            reads(9, 10, Trial.with(ahead, "[SIZE " + name + "] INT n:", "n[3] := 1"));
+            reads(0, 0, Trial.with(ahead, "z[0] := " + name + "[2]"));
+            reads(9, 9, Trial.with(ahead, "z[0] := " + name + "[3]"));
         }
-        reads(0, 0, with(ahead, "BYTE y:", "y := g[2]"));
-        reads(9, 10, with(ahead, "BYTE y:", "y := g[3]"));
+        reads(0, 0, Trial.with(ahead, "BYTE y:", "y := g[2]"));
+        reads(9, 10, Trial.with(ahead, "BYTE y:", "y := g[3]"));
     }
 
     /** "FORMALs with an open SPEC have none"; "(of one without a number: looked at when run)". */
     private static void arraysWithoutNumber() {
         String[] ahead = {"[3] INT z:", "PROC p([] INT a, VAL [] INT b)", "  [] INT c IS a:", "  VAL [] INT d IS b:"};
         for (String name : new String[] {"a", "b", "c", "d"}) {
-            reads(0, 0, with(ahead, "  z := " + name, ":", "SKIP"));
-            reads(0, 0, with(ahead, "  z[0] := " + name + "[1000000]", ":", "SKIP"));
-            reads(9, 5, with(ahead, "  z[0] := " + name + "[-1]", ":", "SKIP"));
-            reads(9, 5, with(ahead, "  [SIZE " + name + "] INT n:", "  SKIP", ":", "SKIP"));
+            reads(0, 0, Trial.with(ahead, "  z := " + name, ":", "SKIP"));
+            reads(0, 0, Trial.with(ahead, "  z[0] := " + name + "[1000000]", ":", "SKIP"));
+            reads(9, 5, Trial.with(ahead, "  z[0] := " + name + "[-1]", ":", "SKIP"));
+            reads(9, 5, Trial.with(ahead, "  [SIZE " + name + "] INT n:", "  SKIP", ":", "SKIP"));
         }
-        reads(0, 0, with(ahead, "  a := b", ":", "SKIP"));
-        reads(0, 0, with(ahead, "  a := [1, 2, 3, 4]", ":", "SKIP"));
-        reads(7, 5, with(ahead, "  a := \"abc\"", ":", "SKIP"));
+        reads(0, 0, Trial.with(ahead, "  a := b", ":", "SKIP"));
+        reads(0, 0, Trial.with(ahead, "  a := [1, 2, 3, 4]", ":", "SKIP"));
+        reads(7, 5, Trial.with(ahead, "  a := \"abc\"", ":", "SKIP"));
     }
 
     /** "An index is an INT, of an array; channels, timers ahead of ? and ! are no arrays without an index." */
     private static void channelsAndTimers() {
         String[] ahead = {"[2] CHAN OF INT c:", "CHAN OF INT d:", "TIMER t:", "INT x:", "[2] INT v:", "BYTE b:"};
-        reads(0, 0, with(ahead, "c[0] ! 1"));
-        reads(7, 7, with(ahead, "c ! 1"));
-        reads(7, 7, with(ahead, "c ? x"));
-        reads(7, 7, with(ahead, "d[0] ! 1"));
-        reads(7, 7, with(ahead, "d[0] ? x"));
-        reads(7, 7, with(ahead, "c['a'] ! 1"));
-        reads(7, 7, with(ahead, "c[TRUE] ! 1"));
-        reads(7, 7, with(ahead, "c[v] ! 1"));
-        reads(7, 7, with(ahead, "t[0] ? x"));
-        reads(7, 7, with(ahead, "t[0] ? AFTER 1"));
-        reads(7, 7, with(ahead, "t ? b"));
-        reads(7, 7, with(ahead, "t ? v"));
-        reads(0, 0, with(ahead, "t ? v[1]"));
-        reads(7, 7, with(ahead, "t ? AFTER 'a'"));
-        reads(7, 7, with(ahead, "x[0] := 1"));
-        reads(7, 7, with(ahead, "v[b] := 1"));
-        reads(7, 7, with(ahead, "x := v[v]"));
+        reads(0, 0, Trial.with(ahead, "c[0] ! 1"));
+        reads(7, 7, Trial.with(ahead, "c ! 1"));
+        reads(7, 7, Trial.with(ahead, "c ? x"));
+        reads(7, 7, Trial.with(ahead, "d[0] ! 1"));
+        reads(7, 7, Trial.with(ahead, "d[0] ? x"));
+        reads(7, 7, Trial.with(ahead, "c['a'] ! 1"));
+        reads(7, 7, Trial.with(ahead, "c[TRUE] ! 1"));
+        reads(7, 7, Trial.with(ahead, "c[v] ! 1"));
+        reads(7, 7, Trial.with(ahead, "t[0] ? x"));
+        reads(7, 7, Trial.with(ahead, "t[0] ? AFTER 1"));
+        reads(7, 7, Trial.with(ahead, "t ? b"));
+        reads(7, 7, Trial.with(ahead, "t ? v"));
+        reads(0, 0, Trial.with(ahead, "t ? v[1]"));
+        reads(7, 7, Trial.with(ahead, "t ? AFTER 'a'"));
+        reads(7, 7, Trial.with(ahead, "x[0] := 1"));
+        reads(7, 7, Trial.with(ahead, "v[b] := 1"));
+        reads(7, 7, Trial.with(ahead, "x := v[v]"));
     }
 
     /** "a channel of the same KIND"; ": the same". */
     private static void sameKind() {
-        String[] ahead = {"PROTOCOL k IS INT:", "PROTOCOL l IS INT:", "CHAN OF k a:", "CHAN OF INT b:", "[2] CHAN OF k c:",
+        String[] ahead = {"PROTOCOL k IS INT:", "PROTOCOL l IS INT:", "CHAN OF k a:", "CHAN OF INT b:",
+                "[2] CHAN OF k c:",
             "PROC p(CHAN OF k x)", "  SKIP", ":", "PROC q([] CHAN OF k x)", "  SKIP", ":"};
-        reads(0, 0, with(ahead, "p(a)"));
-        reads(0, 0, with(ahead, "p(c[1])"));
-        reads(7, 12, with(ahead, "p(b)"));
-        reads(7, 12, with(ahead, "p(c)"));
-        reads(0, 0, with(ahead, "q(c)"));
-        reads(7, 12, with(ahead, "q(a)"));
-        reads(7, 13, with(ahead, "CHAN OF l m:", "p(m)"));
-        reads(7, 12, with(ahead, "CHAN OF l m IS a:", "SKIP"));
-        reads(7, 12, with(ahead, "CHAN OF INT m IS a:", "SKIP"));
-        reads(7, 12, with(ahead, "CHAN OF k m IS c:", "SKIP"));
-        reads(7, 12, with(ahead, "[] CHAN OF k m IS a:", "SKIP"));
-        reads(0, 0, with(ahead, "[] CHAN OF k m IS c:", "p(m[0])"));
+        reads(0, 0, Trial.with(ahead, "p(a)"));
+        reads(0, 0, Trial.with(ahead, "p(c[1])"));
+        reads(7, 12, Trial.with(ahead, "p(b)"));
+        reads(7, 12, Trial.with(ahead, "p(c)"));
+        reads(0, 0, Trial.with(ahead, "q(c)"));
+        reads(7, 12, Trial.with(ahead, "q(a)"));
+        reads(7, 13, Trial.with(ahead, "CHAN OF l m:", "p(m)"));
+        reads(7, 12, Trial.with(ahead, "CHAN OF l m IS a:", "SKIP"));
+        reads(7, 12, Trial.with(ahead, "CHAN OF INT m IS a:", "SKIP"));
+        reads(7, 12, Trial.with(ahead, "CHAN OF k m IS c:", "SKIP"));
+        reads(7, 12, Trial.with(ahead, "[] CHAN OF k m IS a:", "SKIP"));
+        reads(0, 0, Trial.with(ahead, "[] CHAN OF k m IS c:", "p(m[0])"));
     }
 
     /** "8 Not as many as there should be (parameters, parts of a message, both sides of := ; TYPES are looked at as far
@@ -332,29 +329,29 @@ public final class RuleBoundsTest {
     private static void notAsMany() {
         String[] ahead = {"PROTOCOL k IS INT; BOOL:", "CHAN OF k c:", "PROC p(VAL INT a, VAL BOOL b)", "  SKIP", ":",
             "INT FUNCTION f(VAL INT a, VAL BOOL b) IS a:", "INT x:", "BOOL t:", "PROC q()", "  SKIP", ":"};
-        reads(8, 12, with(ahead, "p()"));
-        reads(8, 12, with(ahead, "p(1)"));
-        reads(0, 0, with(ahead, "p(1, TRUE)"));
-        reads(8, 12, with(ahead, "p(1, TRUE, 2)"));
-        reads(7, 12, with(ahead, "p(TRUE)"));
-        reads(7, 12, with(ahead, "p(1, 2, 3)"));
-        reads(8, 12, with(ahead, "q(1)"));
-        reads(8, 12, with(ahead, "x := f()"));
-        reads(8, 12, with(ahead, "x := f(1)"));
-        reads(8, 12, with(ahead, "x := f(1, TRUE, 2)"));
-        reads(7, 12, with(ahead, "x := f(TRUE)"));
-        reads(8, 12, with(ahead, "c ! 1"));
-        reads(8, 12, with(ahead, "c ! 1; TRUE; 1"));
-        reads(7, 12, with(ahead, "c ! TRUE"));
-        reads(7, 12, with(ahead, "c ! 1; 1; 1"));
-        reads(8, 12, with(ahead, "c ? x"));
-        reads(8, 12, with(ahead, "c ? x; t; x"));
-        reads(7, 12, with(ahead, "c ? t"));
-        reads(8, 12, with(ahead, "x, t := 1"));
-        reads(8, 12, with(ahead, "x := 1, TRUE"));
-        reads(7, 12, with(ahead, "x, t := TRUE"));
-        reads(7, 12, with(ahead, "x := TRUE, TRUE"));
-        reads(8, 12, with(ahead, "screen ! 'a'; 'b'"));
+        reads(8, 12, Trial.with(ahead, "p()"));
+        reads(8, 12, Trial.with(ahead, "p(1)"));
+        reads(0, 0, Trial.with(ahead, "p(1, TRUE)"));
+        reads(8, 12, Trial.with(ahead, "p(1, TRUE, 2)"));
+        reads(7, 12, Trial.with(ahead, "p(TRUE)"));
+        reads(7, 12, Trial.with(ahead, "p(1, 2, 3)"));
+        reads(8, 12, Trial.with(ahead, "q(1)"));
+        reads(8, 12, Trial.with(ahead, "x := f()"));
+        reads(8, 12, Trial.with(ahead, "x := f(1)"));
+        reads(8, 12, Trial.with(ahead, "x := f(1, TRUE, 2)"));
+        reads(7, 12, Trial.with(ahead, "x := f(TRUE)"));
+        reads(8, 12, Trial.with(ahead, "c ! 1"));
+        reads(8, 12, Trial.with(ahead, "c ! 1; TRUE; 1"));
+        reads(7, 12, Trial.with(ahead, "c ! TRUE"));
+        reads(7, 12, Trial.with(ahead, "c ! 1; 1; 1"));
+        reads(8, 12, Trial.with(ahead, "c ? x"));
+        reads(8, 12, Trial.with(ahead, "c ? x; t; x"));
+        reads(7, 12, Trial.with(ahead, "c ? t"));
+        reads(8, 12, Trial.with(ahead, "x, t := 1"));
+        reads(8, 12, Trial.with(ahead, "x := 1, TRUE"));
+        reads(7, 12, Trial.with(ahead, "x, t := TRUE"));
+        reads(7, 12, Trial.with(ahead, "x := TRUE, TRUE"));
+        reads(8, 12, Trial.with(ahead, "screen ! 'a'; 'b'"));
     }
 
     /** "the E of [ E ] of a DECLARATION or PART (1 .. 200)". */
@@ -389,16 +386,16 @@ public final class RuleBoundsTest {
         String[] body = {"  SKIP", "    SKIP"};
         for (String head : new String[] {"PAR", "ALT", "PRI ALT"}) {
             String[] inner = head.equals("PAR") ? new String[] {body[0]} : body;
-            reads(9, 1, with(new String[] {head + " i = 0 FOR -1"}, inner));
-            reads(0, 0, with(new String[] {head + " i = 0 FOR 0"}, inner));
-            reads(0, 0, with(new String[] {head + " i = 0 FOR 64"}, inner));
-            reads(9, 1, with(new String[] {head + " i = 0 FOR 65"}, inner));
-            reads(9, 1, with(new String[] {head + " i = 0 FOR MOSTPOS INT"}, inner));
-            reads(0, 0, with(new String[] {head + " i = MOSTNEG INT FOR 2"}, inner));
-            reads(0, 0, with(new String[] {head + " i = MOSTPOS INT FOR 64"}, inner));
-            reads(9, 2, with(new String[] {"INT n:", head + " i = n FOR 1"}, inner));
-            reads(9, 2, with(new String[] {"INT n:", head + " i = 0 FOR n"}, inner));
-            reads(0, 0, with(new String[] {"VAL INT n IS 64:", head + " i = n FOR n"}, inner));
+            reads(9, 1, Trial.with(new String[] {head + " i = 0 FOR -1"}, inner));
+            reads(0, 0, Trial.with(new String[] {head + " i = 0 FOR 0"}, inner));
+            reads(0, 0, Trial.with(new String[] {head + " i = 0 FOR 64"}, inner));
+            reads(9, 1, Trial.with(new String[] {head + " i = 0 FOR 65"}, inner));
+            reads(9, 1, Trial.with(new String[] {head + " i = 0 FOR MOSTPOS INT"}, inner));
+            reads(0, 0, Trial.with(new String[] {head + " i = MOSTNEG INT FOR 2"}, inner));
+            reads(0, 0, Trial.with(new String[] {head + " i = MOSTPOS INT FOR 64"}, inner));
+            reads(9, 2, Trial.with(new String[] {"INT n:", head + " i = n FOR 1"}, inner));
+            reads(9, 2, Trial.with(new String[] {"INT n:", head + " i = 0 FOR n"}, inner));
+            reads(0, 0, Trial.with(new String[] {"VAL INT n IS 64:", head + " i = n FOR n"}, inner));
         }
         // A SEQ's is free: its count is looked at in the run.
         reads(0, 0, "INT n:", "SEQ i = n FOR n", "  SKIP");
@@ -411,13 +408,14 @@ public final class RuleBoundsTest {
     private static void notConstant() {
         String[] ahead = {"INT x:", "[3] INT a:", "VAL INT n IS 2:", "VAL INT m IS x:", "VAL [] INT v IS [1, 2]:",
             "INT FUNCTION f() IS 2:", "VAL BYTE b IS 'a':", "VAL BOOL t IS TRUE:"};
-        for (String e : new String[] {"2", "n", "n + 1", "SIZE a", "SIZE v", "SIZE \"ab\"", "SIZE [x, x]", "INT b", "INT t",
+        for (String e : new String[] {"2", "n", "n + 1", "SIZE a", "SIZE v", "SIZE \"ab\"", "SIZE [x, x]", "INT b",
+                "INT t",
             "INT (t AND TRUE)", "INT (NOT FALSE)", "(n << 2) \\/ 1", "- (-3)", "~ (-3)", "MINUS (-3)", "INT ('a' = b)",
             "INT (5 AFTER 3)", "SIZE (a)", "(MOSTPOS INT) PLUS ((MOSTNEG INT) + 4)", "7 \\ 4"}) {
-            reads(0, 0, with(ahead, "[" + e + "] INT z:", "SKIP"));
+            reads(0, 0, Trial.with(ahead, "[" + e + "] INT z:", "SKIP"));
         }
         for (String e : new String[] {"x", "m", "v[0]", "f()", "n + x", "INT (x = x)", "a[0]"}) {
-            reads(9, 9, with(ahead, "[" + e + "] INT z:", "SKIP"));
+            reads(9, 9, Trial.with(ahead, "[" + e + "] INT z:", "SKIP"));
         }
         reads(9, 2, "SEQ i = 1 FOR 3", "  [i] INT z:", "  SKIP");
         reads(9, 2, "PROC p(VAL INT n)", "  [n] INT z:", "  SKIP", ":", "SKIP");
@@ -432,7 +430,8 @@ public final class RuleBoundsTest {
             "46341 * 46341", "(MOSTNEG INT) * (-1)", "- (MOSTNEG INT)", "1 / 0", "1 \\ 0", "(MOSTNEG INT) / (-1)",
             "INT (BYTE 256)", "INT (BYTE (-1))", "INT (BOOL 2)", "INT (BOOL (-1))", "1 << 33", "1 << (-1)", "1 >> 33",
             "1 >> (-1)"};
-        String[] good = {"(MOSTPOS INT) + 0", "(MOSTNEG INT) + 0", "(MOSTNEG INT) - 0", "46340 * 46340", "- (MOSTPOS INT)",
+        String[] good = {"(MOSTPOS INT) + 0", "(MOSTNEG INT) + 0", "(MOSTNEG INT) - 0", "46340 * 46340",
+                "- (MOSTPOS INT)",
             "0 / 1", "(MOSTNEG INT) \\ (-1)", "(MOSTNEG INT) / 1", "INT (BYTE 255)", "INT (BYTE 0)", "INT (BOOL 1)",
             "INT (BOOL 0)", "1 << 32", "1 << 0", "1 >> 32", "1 >> 0", "(MOSTPOS INT) PLUS 1", "(MOSTNEG INT) MINUS 1",
             "46341 TIMES 46341", "MINUS (MOSTNEG INT)"};
@@ -459,23 +458,23 @@ public final class RuleBoundsTest {
         String[] ahead = {"[3] INT v:", "[2] CHAN OF INT c:", "INT x:", "VAL INT n IS 3:", "PROC p(INT a)", "  SKIP", ":",
             "PROC q(CHAN OF INT a)", "  SKIP", ":"};
         for (String form : new String[] {"v[@] := 1", "x := v[@]", "c[0] ? v[@]", "p(v[@])"}) {
-            reads(9, 11, with(ahead, form.replace("@", "-1")));
-            reads(0, 0, with(ahead, form.replace("@", "0")));
-            reads(0, 0, with(ahead, form.replace("@", "n - 1")));
-            reads(9, 11, with(ahead, form.replace("@", "n")));
-            reads(9, 11, with(ahead, form.replace("@", "MOSTPOS INT")));
-            reads(9, 11, with(ahead, form.replace("@", "MOSTNEG INT")));
-            reads(0, 0, with(ahead, form.replace("@", "x")));
+            reads(9, 11, Trial.with(ahead, form.replace("@", "-1")));
+            reads(0, 0, Trial.with(ahead, form.replace("@", "0")));
+            reads(0, 0, Trial.with(ahead, form.replace("@", "n - 1")));
+            reads(9, 11, Trial.with(ahead, form.replace("@", "n")));
+            reads(9, 11, Trial.with(ahead, form.replace("@", "MOSTPOS INT")));
+            reads(9, 11, Trial.with(ahead, form.replace("@", "MOSTNEG INT")));
+            reads(0, 0, Trial.with(ahead, form.replace("@", "x")));
         }
         for (String form : new String[] {"c[@] ! 1", "c[@] ? x", "q(c[@])"}) {
-            reads(9, 11, with(ahead, form.replace("@", "-1")));
-            reads(0, 0, with(ahead, form.replace("@", "1")));
-            reads(9, 11, with(ahead, form.replace("@", "2")));
+            reads(9, 11, Trial.with(ahead, form.replace("@", "-1")));
+            reads(0, 0, Trial.with(ahead, form.replace("@", "1")));
+            reads(9, 11, Trial.with(ahead, form.replace("@", "2")));
         }
-        reads(9, 11, with(ahead, "INT y IS v[3]:", "SKIP"));
-        reads(0, 0, with(ahead, "INT y IS v[2]:", "SKIP"));
-        reads(9, 11, with(ahead, "CHAN OF INT y IS c[2]:", "SKIP"));
-        reads(9, 12, with(ahead, "ALT", "  c[2] ? x", "    SKIP"));
+        reads(9, 11, Trial.with(ahead, "INT y IS v[3]:", "SKIP"));
+        reads(0, 0, Trial.with(ahead, "INT y IS v[2]:", "SKIP"));
+        reads(9, 11, Trial.with(ahead, "CHAN OF INT y IS c[2]:", "SKIP"));
+        reads(9, 12, Trial.with(ahead, "ALT", "  c[2] ? x", "    SKIP"));
     }
 
     /** "more than 20,000 cells of variables and channels in all DECLARATIONS (each counts once, as they stand; at the
@@ -486,20 +485,20 @@ public final class RuleBoundsTest {
         Arrays.fill(full, "[200] INT " + ten + ":");
         full[4] = "[200] BYTE " + ten + ":";
         full[5] = "[200] CHAN OF BOOL " + ten + ":";
-        reads(0, 0, with(full, "SKIP"));
-        reads(9, 11, with(full, "INT x:", "SKIP"));
-        reads(9, 11, with(full, "CHAN OF INT x:", "SKIP"));
-        reads(9, 11, with(full, "INT x:", "INT y:", "SKIP"));
+        reads(0, 0, Trial.with(full, "SKIP"));
+        reads(9, 11, Trial.with(full, "INT x:", "SKIP"));
+        reads(9, 11, Trial.with(full, "CHAN OF INT x:", "SKIP"));
+        reads(9, 11, Trial.with(full, "INT x:", "INT y:", "SKIP"));
         // None for VALs, abbreviations, TIMERs, FORMALs and PROTOCOLs.
-        reads(0, 0, with(full, "VAL [] INT x IS a:", "[] INT y IS a:", "TIMER t:", "PROTOCOL q IS [200] INT:",
+        reads(0, 0, Trial.with(full, "VAL [] INT x IS a:", "[] INT y IS a:", "TIMER t:", "PROTOCOL q IS [200] INT:",
                 "PROC r(VAL [] INT w)", "  SKIP", ":", "SEQ z = 0 FOR 3", "  SKIP"));
         // One that stands in a PROC, or in a branch, counts where it stands, once, called or not.
-        reads(9, 12, with(full, "PROC p()", "  INT x:", "  SKIP", ":", "SKIP"));
-        reads(9, 13, with(full, "IF", "  TRUE", "    INT x:", "    SKIP"));
+        reads(9, 12, Trial.with(full, "PROC p()", "  INT x:", "  SKIP", ":", "SKIP"));
+        reads(9, 13, Trial.with(full, "IF", "  TRUE", "    INT x:", "    SKIP"));
         full[9] = "[200] INT a, b, c, d, e, f, g, h, i:";
-        reads(0, 0, with(full, "SEQ", "  [199] INT x:", "  SKIP", "  INT x:", "  SKIP"));
-        reads(9, 14, with(full, "SEQ", "  [199] INT x:", "  SKIP", "  INT x, y:", "  SKIP"));
-        reads(9, 11, with(full, "[101] INT x, y:", "INT z:", "SKIP"));
+        reads(0, 0, Trial.with(full, "SEQ", "  [199] INT x:", "  SKIP", "  INT x:", "  SKIP"));
+        reads(9, 14, Trial.with(full, "SEQ", "  [199] INT x:", "  SKIP", "  INT x, y:", "  SKIP"));
+        reads(9, 11, Trial.with(full, "[101] INT x, y:", "INT z:", "SKIP"));
     }
 
     /** "or more than 400 NAMES in them all (as count(2) tells; likewise)". */
@@ -509,22 +508,22 @@ public final class RuleBoundsTest {
         Arrays.fill(full, "INT " + twenty + ":");
         full[3] = "TIMER " + twenty + ":";
         full[4] = "CHAN OF INT " + twenty + ":";
-        reads(0, 0, with(full, "SEQ z = 0 FOR 1", "  SKIP"));
-        reads(9, 21, with(full, "INT z:", "SKIP"));
-        reads(9, 21, with(full, "TIMER z:", "SKIP"));
-        reads(9, 21, with(full, "VAL INT z IS 1:", "SKIP"));
-        reads(9, 21, with(full, "INT z IS a:", "SKIP"));
-        reads(9, 21, with(full, "PROTOCOL z IS INT:", "SKIP"));
-        reads(9, 21, with(full, "PROTOCOL z", "  CASE", "    y", ":", "SKIP"));
-        reads(9, 21, with(full, "PROC z()", "  SKIP", ":", "SKIP"));
-        reads(9, 21, with(full, "INT FUNCTION z() IS 1:", "SKIP"));
+        reads(0, 0, Trial.with(full, "SEQ z = 0 FOR 1", "  SKIP"));
+        reads(9, 21, Trial.with(full, "INT z:", "SKIP"));
+        reads(9, 21, Trial.with(full, "TIMER z:", "SKIP"));
+        reads(9, 21, Trial.with(full, "VAL INT z IS 1:", "SKIP"));
+        reads(9, 21, Trial.with(full, "INT z IS a:", "SKIP"));
+        reads(9, 21, Trial.with(full, "PROTOCOL z IS INT:", "SKIP"));
+        reads(9, 21, Trial.with(full, "PROTOCOL z", "  CASE", "    y", ":", "SKIP"));
+        reads(9, 21, Trial.with(full, "PROC z()", "  SKIP", ":", "SKIP"));
+        reads(9, 21, Trial.with(full, "INT FUNCTION z() IS 1:", "SKIP"));
         full[19] = "INT a, b, c, d, e, f, g, h, i, j, k, l, m, n, o, p, q, r, s:";
         // FORMALs, tags and REPLICATORS' names are not told.
-        reads(0, 0, with(full, "PROC z(INT x, y)", "  SKIP", ":", "SKIP"));
-        reads(0, 0, with(full, "PROTOCOL z", "  CASE", "    x", "    y", ":", "SKIP"));
-        reads(9, 22, with(full, "PROC z(INT x, y)", "  INT w:", "  SKIP", ":", "SKIP"));
-        reads(9, 21, with(full, "INT w, x:", "INT y:", "SKIP"));
-        MeetingHouse house = Trial.house(Trial.lines(with(full, "PROC z(INT x, y)", "  SKIP", ":", "SKIP")));
+        reads(0, 0, Trial.with(full, "PROC z(INT x, y)", "  SKIP", ":", "SKIP"));
+        reads(0, 0, Trial.with(full, "PROTOCOL z", "  CASE", "    x", "    y", ":", "SKIP"));
+        reads(9, 22, Trial.with(full, "PROC z(INT x, y)", "  INT w:", "  SKIP", ":", "SKIP"));
+        reads(9, 21, Trial.with(full, "INT w, x:", "INT y:", "SKIP"));
+        MeetingHouse house = Trial.house(Trial.lines(Trial.with(full, "PROC z(INT x, y)", "  SKIP", ":", "SKIP")));
         Trial.due("read()", house.read(), 0);
         Trial.due("count(2)", house.count(2), 400);
     }
@@ -552,17 +551,19 @@ public final class RuleBoundsTest {
         reads(9, 2, "CASE 1", "  0, 1 / 0", "    SKIP");
         reads(9, 3, "INT x:", "CASE 1", "  x, x", "    SKIP");
         String[] ahead = {"PROTOCOL p", "  CASE", "    a", "    b", ":", "CHAN OF p c:"};
-        reads(0, 0, with(ahead, "c ? CASE", "  a", "    SKIP", "  b", "    SKIP"));
-        reads(10, 12, with(ahead, "c ? CASE", "  a", "    SKIP", "  b", "    SKIP", "  a", "    SKIP"));
-        reads(0, 0, with(ahead, "c ? CASE", "  a", "    c ? CASE", "      a", "        SKIP"));
-        reads(10, 11, with(ahead, "ALT", "  c ? CASE", "    a", "      SKIP", "    a", "      SKIP"));
-        reads(0, 0, with(ahead, "ALT", "  c ? CASE", "    a", "      SKIP", "  c ? CASE", "    a", "      SKIP"));
+        reads(0, 0, Trial.with(ahead, "c ? CASE", "  a", "    SKIP", "  b", "    SKIP"));
+        reads(10, 12, Trial.with(ahead, "c ? CASE", "  a", "    SKIP", "  b", "    SKIP", "  a", "    SKIP"));
+        reads(0, 0, Trial.with(ahead, "c ? CASE", "  a", "    c ? CASE", "      a", "        SKIP"));
+        reads(10, 11, Trial.with(ahead, "ALT", "  c ? CASE", "    a", "      SKIP", "    a", "      SKIP"));
+        reads(0, 0, Trial.with(ahead, "ALT", "  c ? CASE", "    a", "      SKIP", "  c ? CASE", "    a", "      SKIP"));
     }
 
     /** Names in every E of a DECLARATION are looked for. */
     private static void namesOfDeclarations() {
-        for (String line : new String[] {"[n] INT a:", "[n] CHAN OF INT a:", "VAL INT a IS n:", "VAL [] INT a IS [1, n]:", "INT a IS n:",
-            "CHAN OF INT a IS n:", "CHAN OF n a:", "[2] CHAN OF n a:", "PROTOCOL a IS [n] INT:", "PROTOCOL a IS INT; [n] INT:",
+        for (String line : new String[] {"[n] INT a:", "[n] CHAN OF INT a:", "VAL INT a IS n:",
+                "VAL [] INT a IS [1, n]:", "INT a IS n:",
+            "CHAN OF INT a IS n:", "CHAN OF n a:", "[2] CHAN OF n a:", "PROTOCOL a IS [n] INT:",
+                    "PROTOCOL a IS INT; [n] INT:",
             "INT FUNCTION a() IS n:", "INT FUNCTION a(VAL INT b) IS n:"}) {
             reads(5, 1, line, "SKIP");
         }
@@ -573,41 +574,43 @@ public final class RuleBoundsTest {
 
     /** "or NAME (like the one ahead ..": its KIND, too. */
     private static void kindsOfFormals() {
-        String[] ahead = {"PROTOCOL k IS INT:", "PROC p(CHAN OF k a, b, [] CHAN OF k c, d)", "  SKIP", ":", "CHAN OF k x, y:",
+        String[] ahead = {"PROTOCOL k IS INT:", "PROC p(CHAN OF k a, b, [] CHAN OF k c, d)", "  SKIP", ":",
+                "CHAN OF k x, y:",
             "[2] CHAN OF k v, w:", "CHAN OF INT z:", "[2] CHAN OF INT u:"};
-        reads(0, 0, with(ahead, "p(x, y, v, w)"));
-        reads(7, 9, with(ahead, "p(x, z, v, w)"));
-        reads(7, 9, with(ahead, "p(x, y, v, u)"));
-        reads(7, 9, with(ahead, "p(z, y, v, w)"));
-        reads(7, 9, with(ahead, "p(x, y, u, w)"));
+        reads(0, 0, Trial.with(ahead, "p(x, y, v, w)"));
+        reads(7, 9, Trial.with(ahead, "p(x, z, v, w)"));
+        reads(7, 9, Trial.with(ahead, "p(x, y, v, u)"));
+        reads(7, 9, Trial.with(ahead, "p(z, y, v, w)"));
+        reads(7, 9, Trial.with(ahead, "p(x, y, u, w)"));
         reads(0, 0, "PROTOCOL k", "  CASE", "    g", ":", "PROC p(CHAN OF k a, b)", "  b ! g", ":", "SKIP");
     }
 
     private static void tagsOfArrays() {
         String[] ahead = {"PROTOCOL k", "  CASE", "    g", "    h; INT", ":", "[2] CHAN OF k c:", "INT x:"};
-        reads(0, 0, with(ahead, "c[0] ! g"));
-        reads(7, 8, with(ahead, "c ! g"));
-        reads(7, 8, with(ahead, "c ? CASE", "  g", "    SKIP"));
-        reads(0, 0, with(ahead, "c[1] ? CASE", "  g", "    SKIP"));
-        reads(7, 8, with(ahead, "c[0] ? x"));
-        reads(6, 9, with(ahead, "c[0] ? CASE", "  h; c[0]", "    SKIP"));
-        reads(7, 9, with(ahead, "c[0] ? CASE", "  h; x[0]", "    SKIP"));
+        reads(0, 0, Trial.with(ahead, "c[0] ! g"));
+        reads(7, 8, Trial.with(ahead, "c ! g"));
+        reads(7, 8, Trial.with(ahead, "c ? CASE", "  g", "    SKIP"));
+        reads(0, 0, Trial.with(ahead, "c[1] ? CASE", "  g", "    SKIP"));
+        reads(7, 8, Trial.with(ahead, "c[0] ? x"));
+        reads(6, 9, Trial.with(ahead, "c[0] ? CASE", "  h; c[0]", "    SKIP"));
+        reads(7, 9, Trial.with(ahead, "c[0] ? CASE", "  h; x[0]", "    SKIP"));
     }
 
     /** What stands beside a fault is looked at for its own. */
     private static void partsBesideFaults() {
-        String[] ahead = {"PROTOCOL k", "  CASE", "    g", "    h; INT", ":", "[2] CHAN OF INT c:", "[2] CHAN OF k d:", "INT x:", "[2] INT v:",
+        String[] ahead = {"PROTOCOL k", "  CASE", "    g", "    h; INT", ":", "[2] CHAN OF INT c:", "[2] CHAN OF k d:",
+                "INT x:", "[2] INT v:",
             "PROTOCOL l", "  CASE", "    i; INT", ":"};
-        reads(9, 14, with(ahead, "c[2] ! TRUE"));
-        reads(7, 14, with(ahead, "c[2] ! 1 + TRUE"));
-        reads(9, 14, with(ahead, "c[2] ? x"));
-        reads(7, 14, with(ahead, "c[2] ? v[TRUE]"));
-        reads(7, 14, with(ahead, "c[0] ! 1; 1 + TRUE"));
-        reads(8, 14, with(ahead, "c[0] ! 1; 1 / 0"));
-        reads(9, 14, with(ahead, "d[2] ! g"));
-        reads(7, 14, with(ahead, "d[0] ! i; 1"));
-        reads(7, 15, with(ahead, "d[0] ? CASE", "  i; x", "    SKIP"));
-        reads(9, 14, with(ahead, "d[2] ? CASE", "  h; x", "    SKIP"));
+        reads(9, 14, Trial.with(ahead, "c[2] ! TRUE"));
+        reads(7, 14, Trial.with(ahead, "c[2] ! 1 + TRUE"));
+        reads(9, 14, Trial.with(ahead, "c[2] ? x"));
+        reads(7, 14, Trial.with(ahead, "c[2] ? v[TRUE]"));
+        reads(7, 14, Trial.with(ahead, "c[0] ! 1; 1 + TRUE"));
+        reads(8, 14, Trial.with(ahead, "c[0] ! 1; 1 / 0"));
+        reads(9, 14, Trial.with(ahead, "d[2] ! g"));
+        reads(7, 14, Trial.with(ahead, "d[0] ! i; 1"));
+        reads(7, 15, Trial.with(ahead, "d[0] ? CASE", "  i; x", "    SKIP"));
+        reads(9, 14, Trial.with(ahead, "d[2] ? CASE", "  h; x", "    SKIP"));
     }
 
     private static String number(int v) {
@@ -617,7 +620,8 @@ public final class RuleBoundsTest {
     /** A CONSTANT has the value that the run would have: both are told by SIZE and by cells. */
     private static void constantValues() {
         int[] values = {0, 1, 2, 3, -1, -7, 31, 32, 100, Integer.MAX_VALUE, Integer.MIN_VALUE};
-        String[] ops = {"+", "-", "*", "/", "\\", "PLUS", "MINUS", "TIMES", "/\\", "\\/", "><", "<<", ">>", "=", "<>", "<", "<=", ">", ">=", "AFTER"};
+        String[] ops = {"+", "-", "*", "/", "\\", "PLUS", "MINUS", "TIMES", "/\\", "\\/", "><", "<<", ">>", "=", "<>",
+                "<", "<=", ">", ">=", "AFTER"};
         for (String op : ops) {
             for (int a : values) {
                 for (int b : values) {
@@ -629,21 +633,25 @@ public final class RuleBoundsTest {
                         reads(9, 2, "INT r:", "r := " + whole);
                     } else {
                         Trial.due(e, Trial.ran(1, "INT r:", "r := " + whole).cell(0), want);
-                        MeetingHouse run = Trial.ran(1, "INT r, a, b:", "SEQ", "  a, b := " + number(a) + ", " + number(b),
+                        MeetingHouse run = Trial.ran(1, "INT r, a, b:", "SEQ", "  a, b := " + number(a) + ", "
+                                + number(b),
                                 "  r := " + whole.replace(e, "a " + op + " b"));
                         Trial.due(e + " in the run", run.cell(0), want);
                     }
                 }
             }
         }
-        String[][] truths = {{"TRUE AND TRUE", "1"}, {"TRUE AND FALSE", "0"}, {"FALSE AND TRUE", "0"}, {"TRUE AND TRUE AND FALSE", "0"},
+        String[][] truths = {{"TRUE AND TRUE", "1"}, {"TRUE AND FALSE", "0"}, {"FALSE AND TRUE", "0"},
+                {"TRUE AND TRUE AND FALSE", "0"},
             {"TRUE AND TRUE AND TRUE", "1"}, {"FALSE OR FALSE", "0"}, {"FALSE OR TRUE", "1"}, {"TRUE OR FALSE", "1"},
-            {"FALSE OR FALSE OR TRUE", "1"}, {"FALSE OR FALSE OR FALSE", "0"}, {"NOT TRUE", "0"}, {"NOT FALSE", "1"}, {"TRUE = FALSE", "0"},
+            {"FALSE OR FALSE OR TRUE", "1"}, {"FALSE OR FALSE OR FALSE", "0"}, {"NOT TRUE", "0"}, {"NOT FALSE", "1"},
+                    {"TRUE = FALSE", "0"},
             {"TRUE <> FALSE", "1"}, {"'a' = 'a'", "1"}, {"'a' <= 'a'", "1"}, {"'a' < 'b'", "1"}, {"'b' >= 'c'", "0"}};
         for (String[] truth : truths) {
             Trial.due(truth[0], Trial.ran(1, "INT r:", "r := INT (" + truth[0] + ")").cell(0), Long.parseLong(truth[1]));
             reads(truth[1].equals("1") ? 0 : 9, 1, "[INT (" + truth[0] + ")] INT a:", "SKIP");
-            MeetingHouse run = Trial.ran(1, "INT r:", "BOOL t, f:", "BYTE a, b, c:", "SEQ", "  t, a, b, c := TRUE, 'a', 'b', 'c'",
+            MeetingHouse run = Trial.ran(1, "INT r:", "BOOL t, f:", "BYTE a, b, c:", "SEQ",
+                    "  t, a, b, c := TRUE, 'a', 'b', 'c'",
                     "  r := INT (" + truth[0].replace("TRUE", "t").replace("FALSE", "f").replace("'", "") + ")");
             Trial.due(truth[0] + " in the run", run.cell(0), Long.parseLong(truth[1]));
         }

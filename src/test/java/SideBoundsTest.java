@@ -1,5 +1,3 @@
-import java.util.Arrays;
-
 /** The boundary cases of section 2, RULES, the third and fourth round: faults 11 to 15, PLACES, KNOWN and WEIGHT. */
 public final class SideBoundsTest {
     public static void main(String[] args) {
@@ -44,20 +42,14 @@ public final class SideBoundsTest {
         Trial.reads(fault, line, lines);
     }
 
-    private static String[] with(String[] ahead, String... behind) {
-        String[] all = Arrays.copyOf(ahead, ahead.length + behind.length);
-        System.arraycopy(behind, 0, all, ahead.length, behind.length);
-        return all;
-    }
-
     /** A FUNCTION whose PROCESS begins in line 8, with y of its own and x, v, c, t from outside. */
     private static void function(int fault, int line, String... process) {
         String[] text = {"CHAN OF INT c:", "TIMER t:", "INT x:", "[3] INT v:", "INT FUNCTION f(VAL INT a)", "  INT y:",
             "  VALOF"};
         for (String one : process) {
-            text = with(text, "    " + one);
+            text = Trial.with(text, "    " + one);
         }
-        reads(fault, line, with(text, "    RESULT y", ":", "SKIP"));
+        reads(fault, line, Trial.with(text, "    RESULT y", ":", "SKIP"));
     }
 
     /** "11 a FUNCTION that .. has ?, !, ALT, PAR". */
@@ -111,16 +103,17 @@ public final class SideBoundsTest {
             "PROC gives(INT a)", "  a := 1", ":", "PROC takes(INT a)", "  INT b:", "  b := a", ":", "INT FUNCTION f()",
             "  INT y:", "  VALOF"};
         String[] behind = {"    RESULT y", ":", "SKIP"};
-        reads(11, 28, with(with(ahead, "    tells()"), behind));
-        reads(11, 28, with(with(ahead, "    sets()"), behind));
-        reads(11, 28, with(with(ahead, "    calls()"), behind));
-        reads(11, 28, with(with(ahead, "    gives(x)"), behind));
-        reads(0, 0, with(with(ahead, "    gives(y)"), behind));
-        reads(0, 0, with(with(ahead, "    takes(x)"), behind));
-        reads(11, 29, with(with(ahead, "    SEQ", "      sets()"), behind));
+        reads(11, 28, Trial.with(Trial.with(ahead, "    tells()"), behind));
+        reads(11, 28, Trial.with(Trial.with(ahead, "    sets()"), behind));
+        reads(11, 28, Trial.with(Trial.with(ahead, "    calls()"), behind));
+        reads(11, 28, Trial.with(Trial.with(ahead, "    gives(x)"), behind));
+        reads(0, 0, Trial.with(Trial.with(ahead, "    gives(y)"), behind));
+        reads(0, 0, Trial.with(Trial.with(ahead, "    takes(x)"), behind));
+        reads(11, 29, Trial.with(Trial.with(ahead, "    SEQ", "      sets()"), behind));
         // A PROC's text has its own PROCs in it, all of them.
-        reads(11, 28, with(with(ahead, "    has()"), behind));
-        reads(11, 12, "PROC p()", "  PROC a()", "    PAR", "  :", "  PROC b()", "    SKIP", "  :", "  SKIP", ":", "INT FUNCTION f()", "  VALOF",
+        reads(11, 28, Trial.with(Trial.with(ahead, "    has()"), behind));
+        reads(11, 12, "PROC p()", "  PROC a()", "    PAR", "  :", "  PROC b()", "    SKIP", "  :", "  SKIP", ":",
+                "INT FUNCTION f()", "  VALOF",
                 "    p()", "    RESULT 1", ":", "SKIP");
     }
 
@@ -143,20 +136,20 @@ public final class SideBoundsTest {
         String[] ahead = {"PROC p(INT a, b)", "  SKIP", ":", "PROC q(INT a, VAL INT b)", "  a := b", ":",
             "PROC r([] INT a, VAL [] INT b)", "  a := b", ":", "PROC s([] INT a, INT b)", "  SKIP", ":",
             "PROC u(CHAN OF INT a, b)", "  SKIP", ":", "INT x, y:", "[3] INT v, w:", "[2] CHAN OF INT c:"};
-        reads(12, 19, with(ahead, "p(x, x)"));
-        reads(0, 0, with(ahead, "p(x, y)"));
-        reads(0, 0, with(ahead, "q(x, x)"));
-        reads(0, 0, with(ahead, "r(v, v)"));
-        reads(12, 19, with(ahead, "p(v[1], v[1])"));
-        reads(0, 0, with(ahead, "p(v[1], v[2])"));
-        reads(12, 19, with(ahead, "p(v[1], v[x])"));
-        reads(12, 19, with(ahead, "s(v, v[2])"));
-        reads(0, 0, with(ahead, "s(v, w[2])"));
-        reads(12, 19, with(ahead, "u(c[1], c[1])"));
-        reads(0, 0, with(ahead, "u(c[0], c[1])"));
-        reads(12, 20, with(ahead, "INT z IS x:", "p(z, x)"));
-        reads(12, 20, with(ahead, "INT z IS v[0]:", "p(z, v[0])"));
-        reads(0, 0, with(ahead, "INT z IS v[0]:", "p(z, v[1])"));
+        reads(12, 19, Trial.with(ahead, "p(x, x)"));
+        reads(0, 0, Trial.with(ahead, "p(x, y)"));
+        reads(0, 0, Trial.with(ahead, "q(x, x)"));
+        reads(0, 0, Trial.with(ahead, "r(v, v)"));
+        reads(12, 19, Trial.with(ahead, "p(v[1], v[1])"));
+        reads(0, 0, Trial.with(ahead, "p(v[1], v[2])"));
+        reads(12, 19, Trial.with(ahead, "p(v[1], v[x])"));
+        reads(12, 19, Trial.with(ahead, "s(v, v[2])"));
+        reads(0, 0, Trial.with(ahead, "s(v, w[2])"));
+        reads(12, 19, Trial.with(ahead, "u(c[1], c[1])"));
+        reads(0, 0, Trial.with(ahead, "u(c[0], c[1])"));
+        reads(12, 20, Trial.with(ahead, "INT z IS x:", "p(z, x)"));
+        reads(12, 20, Trial.with(ahead, "INT z IS v[0]:", "p(z, v[0])"));
+        reads(0, 0, Trial.with(ahead, "INT z IS v[0]:", "p(z, v[1])"));
         reads(12, 5, "PROC p(INT a, b, c)", "  SKIP", ":", "INT x, y:", "p(x, y, x)");
     }
 
@@ -166,18 +159,18 @@ public final class SideBoundsTest {
             "  b := a + x", ":", "PROC setsA(INT a)", "  a := x", ":", "PROC setsX(INT a)", "  x := a", ":",
             "PROC onlyX(INT a)", "  x := 1", ":", "PROC onlyA(INT a)", "  a := 1", ":", "PROC array(INT a)",
             "  v[0] := 1", ":", "PROC size(INT a)", "  a := SIZE v", ":"};
-        reads(0, 0, with(ahead, "none(x)"));
-        reads(0, 0, with(ahead, "uses(x)"));
-        reads(12, 28, with(ahead, "setsA(x)"));
-        reads(12, 28, with(ahead, "setsX(x)"));
-        reads(12, 28, with(ahead, "onlyX(x)"));
-        reads(0, 0, with(ahead, "onlyA(x)"));
-        reads(0, 0, with(ahead, "setsA(y)"));
-        reads(12, 28, with(ahead, "array(v[0])"));
-        reads(12, 28, with(ahead, "array(v[2])"));
-        reads(0, 0, with(ahead, "array(x)"));
-        reads(0, 0, with(ahead, "size(v[0])"));
-        reads(12, 29, with(ahead, "INT z IS x:", "setsA(z)"));
+        reads(0, 0, Trial.with(ahead, "none(x)"));
+        reads(0, 0, Trial.with(ahead, "uses(x)"));
+        reads(12, 28, Trial.with(ahead, "setsA(x)"));
+        reads(12, 28, Trial.with(ahead, "setsX(x)"));
+        reads(12, 28, Trial.with(ahead, "onlyX(x)"));
+        reads(0, 0, Trial.with(ahead, "onlyA(x)"));
+        reads(0, 0, Trial.with(ahead, "setsA(y)"));
+        reads(12, 28, Trial.with(ahead, "array(v[0])"));
+        reads(12, 28, Trial.with(ahead, "array(v[2])"));
+        reads(0, 0, Trial.with(ahead, "array(x)"));
+        reads(0, 0, Trial.with(ahead, "size(v[0])"));
+        reads(12, 29, Trial.with(ahead, "INT z IS x:", "setsA(z)"));
     }
 
     /** "of channels: at all)". */
@@ -185,12 +178,12 @@ public final class SideBoundsTest {
         String[] ahead = {"[2] CHAN OF INT c:", "CHAN OF INT d:", "PROC p(CHAN OF INT a)", "  d ! 1", ":",
             "PROC q(CHAN OF INT a)", "  SKIP", ":", "PROC r(CHAN OF INT a)", "  c[0] ! 1", ":",
             "PROC s(CHAN OF INT a)", "  INT x:", "  SEQ", "    a ! 1", "    d ? x", ":"};
-        reads(12, 18, with(ahead, "p(d)"));
-        reads(0, 0, with(ahead, "p(c[0])"));
-        reads(0, 0, with(ahead, "q(d)"));
-        reads(12, 18, with(ahead, "r(c[1])"));
-        reads(12, 18, with(ahead, "s(d)"));
-        reads(0, 0, with(ahead, "r(d)"));
+        reads(12, 18, Trial.with(ahead, "p(d)"));
+        reads(0, 0, Trial.with(ahead, "p(c[0])"));
+        reads(0, 0, Trial.with(ahead, "q(d)"));
+        reads(12, 18, Trial.with(ahead, "r(c[1])"));
+        reads(12, 18, Trial.with(ahead, "s(d)"));
+        reads(0, 0, Trial.with(ahead, "r(d)"));
     }
 
     /** Two branches in lines 8 and 9. */
@@ -269,41 +262,44 @@ public final class SideBoundsTest {
 
     /** "(within a PROC that is called there, or a FUNCTION: the line of the call)". */
     private static void linesOfCalls() {
-        String[] ahead = {"INT x, y:", "PROC sets()", "  x := 1", ":", "PROC both()", "  SEQ", "    SKIP", "    sets()", ":",
+        String[] ahead = {"INT x, y:", "PROC sets()", "  x := 1", ":", "PROC both()", "  SEQ", "    SKIP", "    sets()",
+                ":",
             "INT FUNCTION f() IS x:", "INT FUNCTION g() IS f() + 1:", "PAR"};
-        reads(13, 14, with(ahead, "  sets()", "  sets()"));
-        reads(13, 14, with(ahead, "  x := 1", "  both()"));
-        reads(13, 14, with(ahead, "  both()", "  y := x"));
-        reads(13, 14, with(ahead, "  x := 1", "  y := f()"));
-        reads(13, 14, with(ahead, "  y := g()", "  both()"));
-        reads(13, 15, with(ahead, "  x := 1", "  SEQ", "    y := g()"));
-        reads(0, 0, with(ahead, "  y := g()", "  VAL INT z IS f():", "  SKIP"));
+        reads(13, 14, Trial.with(ahead, "  sets()", "  sets()"));
+        reads(13, 14, Trial.with(ahead, "  x := 1", "  both()"));
+        reads(13, 14, Trial.with(ahead, "  both()", "  y := x"));
+        reads(13, 14, Trial.with(ahead, "  x := 1", "  y := f()"));
+        reads(13, 14, Trial.with(ahead, "  y := g()", "  both()"));
+        reads(13, 15, Trial.with(ahead, "  x := 1", "  SEQ", "    y := g()"));
+        reads(0, 0, Trial.with(ahead, "  y := g()", "  VAL INT z IS f():", "  SKIP"));
         // A PROC that stands in a branch counts where it is called, there alone.
-        reads(0, 0, with(ahead, "  x := 1", "  PROC p()", "    x := 2", "  :", "  SKIP"));
-        reads(13, 17, with(ahead, "  x := 1", "  PROC p()", "    x := 2", "  :", "  p()"));
+        reads(0, 0, Trial.with(ahead, "  x := 1", "  PROC p()", "    x := 2", "  :", "  SKIP"));
+        reads(13, 17, Trial.with(ahead, "  x := 1", "  PROC p()", "    x := 2", "  :", "  p()"));
         // Within a PROC its own PARs are looked at, called or not.
         reads(13, 5, "PROC p()", "  INT a:", "  PAR", "    a := 1", "    a := 2", ":", "SKIP");
     }
 
     /** "(a FORMAL that it does not use is not used)". */
     private static void formalsNotUsed() {
-        String[] ahead = {"INT x:", "[3] INT v:", "CHAN OF INT c:", "PROC none(INT a, [] INT b, CHAN OF INT d)", "  SKIP", ":",
-            "PROC size(INT a, [] INT b, CHAN OF INT d)", "  a := SIZE b", ":", "PROC takes(INT a)", "  INT b:", "  b := a",
+        String[] ahead = {"INT x:", "[3] INT v:", "CHAN OF INT c:", "PROC none(INT a, [] INT b, CHAN OF INT d)",
+                "  SKIP", ":",
+            "PROC size(INT a, [] INT b, CHAN OF INT d)", "  a := SIZE b", ":", "PROC takes(INT a)", "  INT b:",
+                    "  b := a",
             ":", "PROC gives(INT a)", "  a := 1", ":", "PROC tells(CHAN OF INT a)", "  a ! 1", ":",
             "PROC hears(CHAN OF INT a)", "  INT b:", "  a ? b", ":", "INT y:", "PAR"};
-        reads(0, 0, with(ahead, "  x := 1", "  none(x, v, c)"));
-        reads(0, 0, with(ahead, "  v[0] := 1", "  none(x, v, c)"));
-        reads(0, 0, with(ahead, "  c ! 1", "  none(x, v, c)"));
-        reads(0, 0, with(ahead, "  v[0] := 1", "  size(x, v, c)"));
-        reads(13, 27, with(ahead, "  x := 1", "  size(x, v, c)"));
-        reads(0, 0, with(ahead, "  takes(x)", "  takes(x)"));
-        reads(13, 27, with(ahead, "  takes(x)", "  gives(x)"));
-        reads(13, 27, with(ahead, "  gives(x)", "  takes(x)"));
-        reads(0, 0, with(ahead, "  tells(c)", "  hears(c)"));
-        reads(14, 27, with(ahead, "  tells(c)", "  tells(c)"));
-        reads(15, 27, with(ahead, "  hears(c)", "  hears(c)"));
-        reads(0, 0, with(ahead, "  gives(v[0])", "  gives(v[1])"));
-        reads(13, 27, with(ahead, "  gives(v[0])", "  gives(v[y])"));
+        reads(0, 0, Trial.with(ahead, "  x := 1", "  none(x, v, c)"));
+        reads(0, 0, Trial.with(ahead, "  v[0] := 1", "  none(x, v, c)"));
+        reads(0, 0, Trial.with(ahead, "  c ! 1", "  none(x, v, c)"));
+        reads(0, 0, Trial.with(ahead, "  v[0] := 1", "  size(x, v, c)"));
+        reads(13, 27, Trial.with(ahead, "  x := 1", "  size(x, v, c)"));
+        reads(0, 0, Trial.with(ahead, "  takes(x)", "  takes(x)"));
+        reads(13, 27, Trial.with(ahead, "  takes(x)", "  gives(x)"));
+        reads(13, 27, Trial.with(ahead, "  gives(x)", "  takes(x)"));
+        reads(0, 0, Trial.with(ahead, "  tells(c)", "  hears(c)"));
+        reads(14, 27, Trial.with(ahead, "  tells(c)", "  tells(c)"));
+        reads(15, 27, Trial.with(ahead, "  hears(c)", "  hears(c)"));
+        reads(0, 0, Trial.with(ahead, "  gives(v[0])", "  gives(v[1])"));
+        reads(13, 27, Trial.with(ahead, "  gives(v[0])", "  gives(v[y])"));
     }
 
     /** "A PROC, or FUNCTION, uses its FORMALs, and what is outside, as its text does, all arrays as a whole". */
@@ -311,12 +307,12 @@ public final class SideBoundsTest {
         String[] ahead = {"[4] INT v:", "[4] CHAN OF INT c:", "PROC one()", "  v[0] := 1", ":", "PROC two([] INT a)",
             "  a[0] := 1", ":", "PROC tell()", "  c[0] ! 1", ":", "PROC tellOne([] CHAN OF INT a)", "  a[0] ! 1", ":",
             "INT FUNCTION f() IS v[0]:", "INT x:", "PAR"};
-        reads(13, 19, with(ahead, "  one()", "  v[3] := 1"));
-        reads(13, 19, with(ahead, "  two(v)", "  v[3] := 1"));
-        reads(13, 19, with(ahead, "  v[3] := 1", "  x := f()"));
-        reads(14, 19, with(ahead, "  tell()", "  c[3] ! 1"));
-        reads(14, 19, with(ahead, "  tellOne(c)", "  c[3] ! 1"));
-        reads(0, 0, with(ahead, "  tell()", "  c[3] ? x"));
+        reads(13, 19, Trial.with(ahead, "  one()", "  v[3] := 1"));
+        reads(13, 19, Trial.with(ahead, "  two(v)", "  v[3] := 1"));
+        reads(13, 19, Trial.with(ahead, "  v[3] := 1", "  x := f()"));
+        reads(14, 19, Trial.with(ahead, "  tell()", "  c[3] ! 1"));
+        reads(14, 19, Trial.with(ahead, "  tellOne(c)", "  c[3] ! 1"));
+        reads(0, 0, Trial.with(ahead, "  tell()", "  c[3] ? x"));
         // In a PAR of its own elements are told apart.
         reads(0, 0, "PROC p([] INT a)", "  PAR", "    a[0] := 1", "    a[1] := 1", ":", "SKIP");
         reads(13, 4, "PROC p([] INT a)", "  PAR", "    a[0] := 1", "    a[0] := 1", ":", "SKIP");
@@ -354,18 +350,18 @@ public final class SideBoundsTest {
     /** "WEIGHT at most 1,000 (its count times those of all REPLICATORS around it ..". */
     private static void weights() {
         String[] one = {"  PAR", "    v[i /\\ 1] := 1", "    v[(i /\\ 1) + 2] := 1"};
-        reads(0, 0, with(new String[] {"[4] INT v:", "SEQ i = 0 FOR 1000"}, one));
-        reads(13, 5, with(new String[] {"[4] INT v:", "SEQ i = 0 FOR 1001"}, one));
-        reads(13, 5, with(new String[] {"[4] INT v:", "SEQ i = 0 FOR MOSTPOS INT"}, one));
+        reads(0, 0, Trial.with(new String[] {"[4] INT v:", "SEQ i = 0 FOR 1000"}, one));
+        reads(13, 5, Trial.with(new String[] {"[4] INT v:", "SEQ i = 0 FOR 1001"}, one));
+        reads(13, 5, Trial.with(new String[] {"[4] INT v:", "SEQ i = 0 FOR MOSTPOS INT"}, one));
         String[] two = {"    PAR", "      v[i] := 1", "      v[i + 100] := 1"};
         // 40 times 25, or 500 times 2, are 1,000.
-        reads(0, 0, with(new String[] {"[200] INT v:", "SEQ j = 0 FOR 40", "  SEQ i = 0 FOR 25"}, two));
-        reads(13, 6, with(new String[] {"[200] INT v:", "SEQ j = 0 FOR 40", "  SEQ i = 0 FOR 26"}, two));
-        reads(13, 6, with(new String[] {"[200] INT v:", "SEQ j = 0 FOR 41", "  SEQ i = 0 FOR 25"}, two));
-        reads(0, 0, with(new String[] {"[200] INT v:", "SEQ j = 0 FOR 500", "  SEQ i = 0 FOR 2"}, two));
-        reads(13, 6, with(new String[] {"[200] INT v:", "SEQ j = 0 FOR 501", "  SEQ i = 0 FOR 2"}, two));
+        reads(0, 0, Trial.with(new String[] {"[200] INT v:", "SEQ j = 0 FOR 40", "  SEQ i = 0 FOR 25"}, two));
+        reads(13, 6, Trial.with(new String[] {"[200] INT v:", "SEQ j = 0 FOR 40", "  SEQ i = 0 FOR 26"}, two));
+        reads(13, 6, Trial.with(new String[] {"[200] INT v:", "SEQ j = 0 FOR 41", "  SEQ i = 0 FOR 25"}, two));
+        reads(0, 0, Trial.with(new String[] {"[200] INT v:", "SEQ j = 0 FOR 500", "  SEQ i = 0 FOR 2"}, two));
+        reads(13, 6, Trial.with(new String[] {"[200] INT v:", "SEQ j = 0 FOR 501", "  SEQ i = 0 FOR 2"}, two));
         // Counts that would wrap when they are multiplied are too much, all the same.
-        reads(13, 6, with(new String[] {"[200] INT v:", "SEQ j = 0 FOR 65536", "  SEQ i = 0 FOR 65536"}, two));
+        reads(13, 6, Trial.with(new String[] {"[200] INT v:", "SEQ j = 0 FOR 65536", "  SEQ i = 0 FOR 65536"}, two));
     }
 
     /** ".. whose base and count are CONSTANT and count at least 1)": other REPLICATORS do not count. */
@@ -375,7 +371,7 @@ public final class SideBoundsTest {
             "SEQ j = 0 FOR -1", "SEQ j = 0 FOR 1000", "SEQ j = 0 FOR 1"};
         int[] faults = {13, 0, 0, 0, 0, 13, 0};
         for (int k = 0; k < heads.length; k++) {
-            reads(faults[k], 7, with(new String[] {"[200] INT v:", "INT n:", heads[k], "  SEQ i = 0 FOR 2"}, par));
+            reads(faults[k], 7, Trial.with(new String[] {"[200] INT v:", "INT n:", heads[k], "  SEQ i = 0 FOR 2"}, par));
         }
         // A name whose own WEIGHT is too much is not KNOWN; one around it may be.
         reads(0, 0, "[200] INT v:", "PAR i = 0 FOR 64", "  SEQ j = 0 FOR 1000", "    v[i] := 1");
@@ -392,8 +388,8 @@ public final class SideBoundsTest {
     /** "also around its PROC". */
     private static void weightsAroundProcs() {
         String[] proc = {"    PROC p()", "      PAR i = 0 FOR 2", "        v[i] := 1", "    :", "    SKIP"};
-        reads(0, 0, with(new String[] {"[200] INT v:", "SEQ", "  SEQ j = 0 FOR 500"}, proc));
-        reads(13, 6, with(new String[] {"[200] INT v:", "SEQ", "  SEQ j = 0 FOR 501"}, proc));
+        reads(0, 0, Trial.with(new String[] {"[200] INT v:", "SEQ", "  SEQ j = 0 FOR 500"}, proc));
+        reads(13, 6, Trial.with(new String[] {"[200] INT v:", "SEQ", "  SEQ j = 0 FOR 501"}, proc));
         // Where it is called does not count.
         reads(0, 0, "[200] INT v:", "PROC p()", "  PAR i = 0 FOR 2", "    v[i] := 1", ":", "SEQ j = 0 FOR 1000", "  p()");
     }
@@ -401,12 +397,12 @@ public final class SideBoundsTest {
     /** "names of REPLICATORS .. whose base and count are CONSTANT, count at least 1". */
     private static void countsOfKnown() {
         String[] par = {"  PAR", "    v[i /\\ 1] := 1", "    v[(i /\\ 1) + 2] := 1"};
-        reads(0, 0, with(new String[] {"[9] INT v:", "SEQ i = 0 FOR 1"}, par));
-        reads(13, 5, with(new String[] {"[9] INT v:", "SEQ i = 0 FOR 0"}, par));
-        reads(13, 5, with(new String[] {"[9] INT v:", "SEQ i = 0 FOR -1"}, par));
-        reads(13, 6, with(new String[] {"[9] INT v:", "INT n:", "SEQ i = 0 FOR n"}, par));
-        reads(13, 6, with(new String[] {"[9] INT v:", "INT n:", "SEQ i = n FOR 2"}, par));
-        reads(0, 0, with(new String[] {"[9] INT v:", "VAL INT n IS 2:", "SEQ i = n FOR n"}, par));
+        reads(0, 0, Trial.with(new String[] {"[9] INT v:", "SEQ i = 0 FOR 1"}, par));
+        reads(13, 5, Trial.with(new String[] {"[9] INT v:", "SEQ i = 0 FOR 0"}, par));
+        reads(13, 5, Trial.with(new String[] {"[9] INT v:", "SEQ i = 0 FOR -1"}, par));
+        reads(13, 6, Trial.with(new String[] {"[9] INT v:", "INT n:", "SEQ i = 0 FOR n"}, par));
+        reads(13, 6, Trial.with(new String[] {"[9] INT v:", "INT n:", "SEQ i = n FOR 2"}, par));
+        reads(0, 0, Trial.with(new String[] {"[9] INT v:", "VAL INT n IS 2:", "SEQ i = n FOR n"}, par));
         // A FORMAL with VAL, a variable, a FUNCTION, or an element is not KNOWN.
         reads(13, 4, "PROC p([] INT v, VAL INT n)", "  PAR", "    v[n] := 1", "    v[n + 1] := 1", ":", "SKIP");
         reads(13, 5, "[9] INT v:", "INT FUNCTION f() IS 1:", "PAR", "  v[f()] := 1", "  v[2] := 1");
@@ -471,116 +467,141 @@ public final class SideBoundsTest {
         reads(13, 5, "[8] INT v:", "SEQ i = 0 FOR 2", "  PAR", "    v[i] := 1", "    v[i + 1] := 1");
         reads(0, 0, "[8] INT v:", "SEQ i = 0 FOR 2", "  PAR", "    v[i] := 1", "    v[i + 2] := 1");
         // Both names of an index go through all values.
-        reads(13, 6, "[9] INT v:", "SEQ i = 0 FOR 3", "  SEQ j = 0 FOR 3", "    PAR", "      v[(i * 3) + j] := 1", "      v[8] := 1");
-        reads(0, 0, "[9] INT v:", "SEQ i = 0 FOR 3", "  SEQ j = 0 FOR 2", "    PAR", "      v[(i * 3) + j] := 1", "      v[8] := 1");
+        reads(13, 6, "[9] INT v:", "SEQ i = 0 FOR 3", "  SEQ j = 0 FOR 3", "    PAR", "      v[(i * 3) + j] := 1",
+                "      v[8] := 1");
+        reads(0, 0, "[9] INT v:", "SEQ i = 0 FOR 3", "  SEQ j = 0 FOR 2", "    PAR", "      v[(i * 3) + j] := 1",
+                "      v[8] := 1");
         // A VAL of such is KNOWN.
-        reads(0, 0, "[8] INT v:", "PAR i = 0 FOR 4", "  VAL INT a IS i * 2:", "  VAL INT b IS a + 1:", "  SEQ", "    v[a] := 1",
+        reads(0, 0, "[8] INT v:", "PAR i = 0 FOR 4", "  VAL INT a IS i * 2:", "  VAL INT b IS a + 1:", "  SEQ",
+                "    v[a] := 1",
                 "    v[b] := 1");
-        reads(13, 6, "[8] INT v:", "PAR i = 0 FOR 4", "  VAL INT a IS i * 2:", "  VAL INT b IS a + 2:", "  SEQ", "    v[a] := 1",
+        reads(13, 6, "[8] INT v:", "PAR i = 0 FOR 4", "  VAL INT a IS i * 2:", "  VAL INT b IS a + 2:", "  SEQ",
+                "    v[a] := 1",
                 "    v[b] := 1");
     }
 
     /** "All else is USING": wherever an E stands, what is in it is used. */
     private static void everyUse() {
-        String[] ahead = {"INT x, y, z:", "[4] INT v:", "[4] CHAN OF INT c:", "PROTOCOL m IS INT; [2] INT:", "CHAN OF m d:", "TIMER t:",
-            "BOOL b:", "INT FUNCTION f(VAL INT a) IS a:", "PROC p(VAL INT a, VAL [] INT e)", "  SKIP", ":", "PROC q(INT a)", "  SKIP", ":",
+        String[] ahead = {"INT x, y, z:", "[4] INT v:", "[4] CHAN OF INT c:", "PROTOCOL m IS INT; [2] INT:",
+                "CHAN OF m d:", "TIMER t:",
+            "BOOL b:", "INT FUNCTION f(VAL INT a) IS a:", "PROC p(VAL INT a, VAL [] INT e)", "  SKIP", ":",
+                    "PROC q(INT a)", "  SKIP", ":",
             "PAR", "  x := 1"};
-        for (String e : new String[] {"x", "(x)", "- x", "~ x", "MINUS x", "x + 1", "1 + x", "INT x", "f(x)", "f(1 + x)", "v[x]", "v[f(x)]",
-            "INT (x = 1)", "INT (1 < x)", "INT ((1 = 1) AND (x = 1))", "INT ((x = 1) OR (1 = 1))", "INT (NOT (x = 1))", "x AFTER 1"}) {
+        for (String e : new String[] {"x", "(x)", "- x", "~ x", "MINUS x", "x + 1", "1 + x", "INT x", "f(x)",
+                "f(1 + x)", "v[x]", "v[f(x)]",
+            "INT (x = 1)", "INT (1 < x)", "INT ((1 = 1) AND (x = 1))", "INT ((x = 1) OR (1 = 1))", "INT (NOT (x = 1))",
+                    "x AFTER 1"}) {
             boolean isTruth = e.contains("AFTER");
-            reads(13, 17, with(ahead, "  " + (isTruth ? "b" : "y") + " := " + e));
+            reads(13, 17, Trial.with(ahead, "  " + (isTruth ? "b" : "y") + " := " + e));
         }
-        String[] acts = {"v[x] := 1", "v := [1, 2, x, 4]", "y, z := 1, x", "c[x] ! 1", "c[x] ? y", "c[0] ! x", "c[0] ? v[x]", "d ! 1; [2, x]",
-            "d ! x; [1, 2]", "t ? AFTER x", "t ? v[x]", "p(x, [1])", "p(1, [x])", "p(1, [1, x])", "q(v[x])", "WHILE x = 1", "CASE x",
-            "SEQ i = x FOR 1", "SEQ i = 0 FOR x", "VAL INT a IS x:", "VAL [] INT a IS [1, x]:", "INT a IS v[x]:", "CHAN OF INT a IS c[x]:"};
+        String[] acts = {"v[x] := 1", "v := [1, 2, x, 4]", "y, z := 1, x", "c[x] ! 1", "c[x] ? y", "c[0] ! x",
+                "c[0] ? v[x]", "d ! 1; [2, x]",
+            "d ! x; [1, 2]", "t ? AFTER x", "t ? v[x]", "p(x, [1])", "p(1, [x])", "p(1, [1, x])", "q(v[x])",
+                    "WHILE x = 1", "CASE x",
+            "SEQ i = x FOR 1", "SEQ i = 0 FOR x", "VAL INT a IS x:", "VAL [] INT a IS [1, x]:", "INT a IS v[x]:",
+                    "CHAN OF INT a IS c[x]:"};
         for (String act : acts) {
             boolean isLoop = act.startsWith("WHILE") || act.startsWith("SEQ");
             String behind = isLoop ? "    SKIP" : act.endsWith(":") ? "  SKIP" : "";
-            reads(13, 17, with(ahead, "  " + act, behind));
+            reads(13, 17, Trial.with(ahead, "  " + act, behind));
         }
-        reads(13, 18, with(ahead, "  IF", "    x = 1", "      SKIP"));
-        reads(13, 20, with(ahead, "  IF", "    FALSE", "      SKIP", "    x = 1", "      SKIP"));
-        reads(13, 18, with(ahead, "  ALT", "    x = 1 & SKIP", "      SKIP"));
-        reads(13, 18, with(ahead, "  ALT", "    c[x] ? y", "      SKIP"));
-        reads(13, 18, with(ahead, "  ALT", "    c[0] ? v[x]", "      SKIP"));
-        reads(13, 18, with(ahead, "  ALT", "    c[0] ? x", "      SKIP"));
-        reads(13, 18, with(ahead, "  ALT", "    t ? AFTER x", "      SKIP"));
-        reads(13, 18, with(ahead, "  ALT", "    t ? x", "      SKIP"));
+        reads(13, 18, Trial.with(ahead, "  IF", "    x = 1", "      SKIP"));
+        reads(13, 20, Trial.with(ahead, "  IF", "    FALSE", "      SKIP", "    x = 1", "      SKIP"));
+        reads(13, 18, Trial.with(ahead, "  ALT", "    x = 1 & SKIP", "      SKIP"));
+        reads(13, 18, Trial.with(ahead, "  ALT", "    c[x] ? y", "      SKIP"));
+        reads(13, 18, Trial.with(ahead, "  ALT", "    c[0] ? v[x]", "      SKIP"));
+        reads(13, 18, Trial.with(ahead, "  ALT", "    c[0] ? x", "      SKIP"));
+        reads(13, 18, Trial.with(ahead, "  ALT", "    t ? AFTER x", "      SKIP"));
+        reads(13, 18, Trial.with(ahead, "  ALT", "    t ? x", "      SKIP"));
     }
 
     /** The same in every PROCESS that stands within another one. */
     private static void usesWithinBodies() {
-        String[] ahead = {"INT x, y:", "CHAN OF INT c:", "PROTOCOL m", "  CASE", "    g; INT", "    h", ":", "CHAN OF m d:", "PAR", "  x := 1"};
-        reads(13, 12, with(ahead, "  SEQ", "    y := x"));
-        reads(13, 12, with(ahead, "  SEQ i = 0 FOR 2", "    y := x"));
-        reads(13, 12, with(ahead, "  WHILE y = 0", "    y := x"));
-        reads(13, 13, with(ahead, "  IF", "    y = 0", "      y := x"));
-        reads(13, 13, with(ahead, "  CASE y", "    0", "      y := x"));
-        reads(13, 15, with(ahead, "  CASE y", "    0", "      SKIP", "    ELSE", "      y := x"));
-        reads(13, 13, with(ahead, "  ALT", "    SKIP", "      y := x"));
-        reads(13, 13, with(ahead, "  ALT i = 0 FOR 2", "    SKIP", "      y := x"));
-        reads(13, 12, with(ahead, "  PAR", "    y := x"));
-        reads(13, 12, with(ahead, "  PAR i = 0 FOR 1", "    y := x"));
-        reads(13, 13, with(ahead, "  d ? CASE", "    g; y", "      y := x"));
-        reads(13, 12, with(ahead, "  d ? CASE", "    g; x", "      SKIP"));
-        reads(13, 14, with(ahead, "  d ? CASE", "    h", "      SKIP", "    g; x", "      SKIP"));
-        reads(13, 14, with(ahead, "  ALT", "    d ? CASE", "      g; y", "        y := x"));
-        reads(13, 13, with(ahead, "  ALT", "    d ? CASE", "      g; x", "        SKIP"));
-        reads(15, 14, with(ahead, "  d ? CASE", "    h", "      SKIP", "  d ? CASE", "    h", "      SKIP"));
-        reads(14, 12, with(ahead, "  d ! h", "  d ! h"));
+        String[] ahead = {"INT x, y:", "CHAN OF INT c:", "PROTOCOL m", "  CASE", "    g; INT", "    h", ":",
+                "CHAN OF m d:", "PAR", "  x := 1"};
+        reads(13, 12, Trial.with(ahead, "  SEQ", "    y := x"));
+        reads(13, 12, Trial.with(ahead, "  SEQ i = 0 FOR 2", "    y := x"));
+        reads(13, 12, Trial.with(ahead, "  WHILE y = 0", "    y := x"));
+        reads(13, 13, Trial.with(ahead, "  IF", "    y = 0", "      y := x"));
+        reads(13, 13, Trial.with(ahead, "  CASE y", "    0", "      y := x"));
+        reads(13, 15, Trial.with(ahead, "  CASE y", "    0", "      SKIP", "    ELSE", "      y := x"));
+        reads(13, 13, Trial.with(ahead, "  ALT", "    SKIP", "      y := x"));
+        reads(13, 13, Trial.with(ahead, "  ALT i = 0 FOR 2", "    SKIP", "      y := x"));
+        reads(13, 12, Trial.with(ahead, "  PAR", "    y := x"));
+        reads(13, 12, Trial.with(ahead, "  PAR i = 0 FOR 1", "    y := x"));
+        reads(13, 13, Trial.with(ahead, "  d ? CASE", "    g; y", "      y := x"));
+        reads(13, 12, Trial.with(ahead, "  d ? CASE", "    g; x", "      SKIP"));
+        reads(13, 14, Trial.with(ahead, "  d ? CASE", "    h", "      SKIP", "    g; x", "      SKIP"));
+        reads(13, 14, Trial.with(ahead, "  ALT", "    d ? CASE", "      g; y", "        y := x"));
+        reads(13, 13, Trial.with(ahead, "  ALT", "    d ? CASE", "      g; x", "        SKIP"));
+        reads(15, 14, Trial.with(ahead, "  d ? CASE", "    h", "      SKIP", "  d ? CASE", "    h", "      SKIP"));
+        reads(14, 12, Trial.with(ahead, "  d ! h", "  d ! h"));
     }
 
     /** What a PROC does with a FORMAL, or with what is outside, also through PROCs that it calls. */
     private static void usesThroughProcs() {
-        String[] ahead = {"INT x, y:", "PROC p(INT a)", "  PROC q()", "    a := 1", "  :", "  q()", ":", "PROC r(INT a)", "  p(a)", ":",
-            "PROC s(INT a)", "  PROC q(INT b)", "    b := a", "  :", "  q(y)", ":", "PROC u(INT a)", "  PROC q()", "    a := 1", "  :", "  SKIP", ":",
+        String[] ahead = {"INT x, y:", "PROC p(INT a)", "  PROC q()", "    a := 1", "  :", "  q()", ":",
+                "PROC r(INT a)", "  p(a)", ":",
+            "PROC s(INT a)", "  PROC q(INT b)", "    b := a", "  :", "  q(y)", ":", "PROC u(INT a)", "  PROC q()",
+                    "    a := 1", "  :", "  SKIP", ":",
             "PAR"};
-        reads(13, 25, with(ahead, "  x := 1", "  p(x)"));
-        reads(13, 25, with(ahead, "  x := 1", "  r(x)"));
-        reads(13, 25, with(ahead, "  r(x)", "  x := 1"));
-        reads(13, 25, with(ahead, "  x := 1", "  s(x)"));
-        reads(13, 25, with(ahead, "  s(x)", "  y := 1"));
-        reads(0, 0, with(ahead, "  x := 1", "  u(x)"));
+        reads(13, 25, Trial.with(ahead, "  x := 1", "  p(x)"));
+        reads(13, 25, Trial.with(ahead, "  x := 1", "  r(x)"));
+        reads(13, 25, Trial.with(ahead, "  r(x)", "  x := 1"));
+        reads(13, 25, Trial.with(ahead, "  x := 1", "  s(x)"));
+        reads(13, 25, Trial.with(ahead, "  s(x)", "  y := 1"));
+        reads(0, 0, Trial.with(ahead, "  x := 1", "  u(x)"));
         // Two PROCs in one, of which the first has an ACT: a FUNCTION that calls it has it, too.
-        reads(11, 15, "CHAN OF INT c:", "PROC p()", "  PROC a()", "    c ! 1", "  :", "  PROC b()", "    SKIP", "  :", "  a()", ":",
+        reads(11, 15, "CHAN OF INT c:", "PROC p()", "  PROC a()", "    c ! 1", "  :", "  PROC b()", "    SKIP", "  :",
+                "  a()", ":",
                 "INT FUNCTION f()", "  VALOF", "    SEQ", "      SKIP", "      p()", "    RESULT 1", ":", "SKIP");
         // Several places of one PROC: each array as a whole, each variable as one.
-        String[] several = {"INT x, y:", "[9] INT v:", "[5] INT w:", "PROC p()", "  v[0], x, w[0], y := 1, 2, 3, 4", ":", "PAR", "  p()"};
+        String[] several = {"INT x, y:", "[9] INT v:", "[5] INT w:", "PROC p()", "  v[0], x, w[0], y := 1, 2, 3, 4",
+                ":", "PAR", "  p()"};
         for (String act : new String[] {"v[8] := 1", "x := 1", "w[4] := 1", "y := 1"}) {
-            reads(13, 9, with(several, "  " + act));
+            reads(13, 9, Trial.with(several, "  " + act));
         }
     }
 
     /** Any two of eight parameters, with VALs between them. */
     private static void severalParameters() {
-        String[] ahead = {"PROC p(VAL INT a, INT b, VAL INT c, INT d, e, VAL INT f, g, INT h)", "  SKIP", ":", "INT s, t, u, v, w:"};
-        reads(0, 0, with(ahead, "p(s, s, s, t, u, s, t, v)"));
-        reads(12, 5, with(ahead, "p(w, s, w, s, u, w, w, v)"));
-        reads(12, 5, with(ahead, "p(w, s, w, t, s, w, w, v)"));
-        reads(12, 5, with(ahead, "p(w, s, w, t, u, w, w, s)"));
-        reads(12, 5, with(ahead, "p(w, s, w, t, t, w, w, v)"));
-        reads(12, 5, with(ahead, "p(w, s, w, t, u, w, w, t)"));
-        reads(12, 5, with(ahead, "p(w, s, w, t, u, w, w, u)"));
+        String[] ahead = {"PROC p(VAL INT a, INT b, VAL INT c, INT d, e, VAL INT f, g, INT h)", "  SKIP", ":",
+                "INT s, t, u, v, w:"};
+        reads(0, 0, Trial.with(ahead, "p(s, s, s, t, u, s, t, v)"));
+        reads(12, 5, Trial.with(ahead, "p(w, s, w, s, u, w, w, v)"));
+        reads(12, 5, Trial.with(ahead, "p(w, s, w, t, s, w, w, v)"));
+        reads(12, 5, Trial.with(ahead, "p(w, s, w, t, u, w, w, s)"));
+        reads(12, 5, Trial.with(ahead, "p(w, s, w, t, t, w, w, v)"));
+        reads(12, 5, Trial.with(ahead, "p(w, s, w, t, u, w, w, t)"));
+        reads(12, 5, Trial.with(ahead, "p(w, s, w, t, u, w, w, u)"));
         String[] outside = {"INT s, t, u, v, w:", "PROC p(VAL INT a, INT b, VAL INT c, INT d)", "  w := 1", ":"};
-        reads(0, 0, with(outside, "p(w, s, w, t)"));
-        reads(12, 5, with(outside, "p(w, w, w, t)"));
-        reads(12, 5, with(outside, "p(w, s, w, w)"));
+        reads(0, 0, Trial.with(outside, "p(w, s, w, t)"));
+        reads(12, 5, Trial.with(outside, "p(w, w, w, t)"));
+        reads(12, 5, Trial.with(outside, "p(w, s, w, w)"));
     }
 
     /** "KNOWN: CONSTANT but that names of REPLICATORS may be in it": all operations. */
     private static void knownForms() {
         // i is 0, 1, 2; the index has the values that stand behind it, of 0 .. 8.
-        String[][] forms = {{"i", "012"}, {"(i)", "012"}, {"i + 3", "345"}, {"3 - i", "123"}, {"i * 2", "024"}, {"i / 2", "01"}, {"i \\ 2", "01"},
-            {"- (i - 2)", "012"}, {"MINUS (i - 2)", "012"}, {"~ (i - 4)", "123"}, {"INT (BYTE i)", "012"}, {"INT (i = 1)", "01"},
-            {"INT ((i = 1) OR (i = 2))", "01"}, {"INT ((i = 1) OR (i = 3) OR (i = 4))", "01"}, {"INT ((i = 1) OR (i < 3))", "1"},
-            {"INT ((i = 1) AND (i = 2))", "0"}, {"INT ((i = 1) AND (i < 2) AND (i > 0))", "01"}, {"INT ((i < 3) AND (i > (-1)))", "1"},
-            {"INT (NOT (i = 1))", "01"}, {"i << 1", "024"}, {"i /\\ 1", "01"}, {"i \\/ 4", "456"}, {"i >< 1", "013"}, {"(SIZE v) - (i + 1)", "678"},
-            {"INT (i AFTER 1)", "01"}, {"5 + (i - 3)", "234"}, {"(INT (i - 3)) + 5", "234"}, {"(INT (BYTE (i - 3))) + 5", ""}, {"(~ (i - 3)) + (i - 1)", "1"}, {"4 / i", "24"}, {"- (i PLUS (MOSTPOS INT))", ""}, {"i TIMES i", "014"},
+        String[][] forms = {{"i", "012"}, {"(i)", "012"}, {"i + 3", "345"}, {"3 - i", "123"}, {"i * 2", "024"},
+                {"i / 2", "01"}, {"i \\ 2", "01"},
+            {"- (i - 2)", "012"}, {"MINUS (i - 2)", "012"}, {"~ (i - 4)", "123"}, {"INT (BYTE i)", "012"},
+                    {"INT (i = 1)", "01"},
+            {"INT ((i = 1) OR (i = 2))", "01"}, {"INT ((i = 1) OR (i = 3) OR (i = 4))", "01"},
+                    {"INT ((i = 1) OR (i < 3))", "1"},
+            {"INT ((i = 1) AND (i = 2))", "0"}, {"INT ((i = 1) AND (i < 2) AND (i > 0))", "01"},
+                    {"INT ((i < 3) AND (i > (-1)))", "1"},
+            {"INT (NOT (i = 1))", "01"}, {"i << 1", "024"}, {"i /\\ 1", "01"}, {"i \\/ 4", "456"}, {"i >< 1", "013"},
+                    {"(SIZE v) - (i + 1)", "678"},
+            {"INT (i AFTER 1)", "01"}, {"5 + (i - 3)", "234"}, {"(INT (i - 3)) + 5", "234"},
+                    {"(INT (BYTE (i - 3))) + 5", ""}, {"(~ (i - 3)) + (i - 1)", "1"}, {"4 / i", "24"},
+                    {"- (i PLUS (MOSTPOS INT))", ""}, {"i TIMES i", "014"},
             {"INT (BYTE (i * 255))", "0"}, {"INT (BOOL (BYTE i))", "01"}, {"(n * 2) + i", "678"}};
         for (String[] form : forms) {
             for (int k = 0; k <= 8; k++) {
                 boolean isCommon = form[1].indexOf('0' + k) >= 0;
-                reads(isCommon ? 13 : 0, 6, "[9] INT v:", "VAL INT n IS 3:", "SEQ i = 0 FOR 3", "  PAR", "    v[" + form[0] + "] := 1",
+                reads(isCommon ? 13 : 0, 6, "[9] INT v:", "VAL INT n IS 3:", "SEQ i = 0 FOR 3", "  PAR", "    v["
+                        + form[0] + "] := 1",
                         "    v[" + k + "] := 1");
             }
         }
@@ -592,35 +613,42 @@ public final class SideBoundsTest {
         }
         // Two names: all pairs of their values.
         for (int k = 0; k <= 8; k++) {
-            reads(k % 3 == 2 ? 0 : 13, 6, "[9] INT v:", "SEQ i = 0 FOR 3", "  SEQ j = 0 FOR 2", "    PAR", "      v[(i * 3) + j] := 1",
+            reads(k % 3 == 2 ? 0 : 13, 6, "[9] INT v:", "SEQ i = 0 FOR 3", "  SEQ j = 0 FOR 2", "    PAR",
+                    "      v[(i * 3) + j] := 1",
                     "      v[" + k + "] := 1");
-            reads(k % 3 == 2 ? 0 : 13, 6, "[9] INT v:", "SEQ j = 0 FOR 2", "  SEQ i = 0 FOR 3", "    PAR", "      v[j + (i * 3)] := 1",
+            reads(k % 3 == 2 ? 0 : 13, 6, "[9] INT v:", "SEQ j = 0 FOR 2", "  SEQ i = 0 FOR 3", "    PAR",
+                    "      v[j + (i * 3)] := 1",
                     "      v[" + k + "] := 1");
         }
         // VALs of VALs, in any order in which they are met.
-        String[] vals = {"[16] INT v:", "PAR i = 0 FOR 4", "  VAL INT a IS i * 2:", "  VAL INT b IS a + 1:", "  VAL INT c IS b + a:"};
-        reads(0, 0, with(vals, "  v[b] := 1"));
-        reads(0, 0, with(vals, "  v[c] := 1"));
-        reads(0, 0, with(vals, "  v[c - b] := 1"));
-        reads(0, 0, with(vals, "  v[b + (a / 2)] := 1"));
-        reads(13, 6, with(vals, "  v[c - (b + a)] := 1"));
-        reads(13, 6, with(vals, "  v[b / 4] := 1"));
+        String[] vals = {"[16] INT v:", "PAR i = 0 FOR 4", "  VAL INT a IS i * 2:", "  VAL INT b IS a + 1:",
+                "  VAL INT c IS b + a:"};
+        reads(0, 0, Trial.with(vals, "  v[b] := 1"));
+        reads(0, 0, Trial.with(vals, "  v[c] := 1"));
+        reads(0, 0, Trial.with(vals, "  v[c - b] := 1"));
+        reads(0, 0, Trial.with(vals, "  v[b + (a / 2)] := 1"));
+        reads(13, 6, Trial.with(vals, "  v[c - (b + a)] := 1"));
+        reads(13, 6, Trial.with(vals, "  v[b / 4] := 1"));
     }
 
     /** Many names of REPLICATORS beside one another: each index has its own. */
     private static void manyKnown() {
-        String[] ahead = {"[200] INT v, w:", "SEQ", "  SEQ i = 0 FOR 100", "    PAR", "      v[i] := 1", "      v[i + 100] := 1",
-            "  SEQ j = 0 FOR 100", "    PAR", "      w[j] := 1", "      w[j + 100] := 1", "  SEQ k = 0 FOR 100", "    PAR", "      v[k] := 1"};
-        reads(0, 0, with(ahead, "      v[100] := 1"));
-        reads(13, 14, with(ahead, "      v[99] := 1"));
+        String[] ahead = {"[200] INT v, w:", "SEQ", "  SEQ i = 0 FOR 100", "    PAR", "      v[i] := 1",
+                "      v[i + 100] := 1",
+            "  SEQ j = 0 FOR 100", "    PAR", "      w[j] := 1", "      w[j + 100] := 1", "  SEQ k = 0 FOR 100",
+                    "    PAR", "      v[k] := 1"};
+        reads(0, 0, Trial.with(ahead, "      v[100] := 1"));
+        reads(13, 14, Trial.with(ahead, "      v[99] := 1"));
         // The thousandth value counts, too.
         reads(13, 5, "[4] INT v:", "SEQ i = 0 FOR 1000", "  PAR", "    v[i / 999] := 1", "    v[1] := 1");
         reads(0, 0, "[4] INT v:", "SEQ i = 0 FOR 1000", "  PAR", "    v[i / 1000] := 1", "    v[1] := 1");
         // An index that is none in both branches is none in common.
         reads(0, 0, "[3] INT v:", "PAR", "  SEQ i = 3 FOR 1", "    v[i] := 1", "  SEQ i = 3 FOR 1", "    v[i] := 1");
         // WEIGHTS of what stands ahead are over.
-        reads(0, 0, "[64] INT v:", "SEQ", "  ALT j = 0 FOR 64", "    SKIP", "      SKIP", "  PAR i = 0 FOR 64", "    v[i] := 1");
-        reads(0, 0, "[64] INT v:", "SEQ", "  PAR j = 0 FOR 64", "    SKIP", "  SEQ j = 0 FOR 64", "    SKIP", "  PAR i = 0 FOR 64", "    v[i] := 1");
+        reads(0, 0, "[64] INT v:", "SEQ", "  ALT j = 0 FOR 64", "    SKIP", "      SKIP", "  PAR i = 0 FOR 64",
+                "    v[i] := 1");
+        reads(0, 0, "[64] INT v:", "SEQ", "  PAR j = 0 FOR 64", "    SKIP", "  SEQ j = 0 FOR 64", "    SKIP",
+                "  PAR i = 0 FOR 64", "    v[i] := 1");
     }
 
     /** The text of a PROC that stands in a branch is passed over, also in a branch ahead. */
@@ -640,11 +668,11 @@ public final class SideBoundsTest {
         }
         String[] text = {"INT " + names + ":", "SEQ"};
         for (int k = 0; k < 26; k++) {
-            text = with(text, "  PAR", "    VAL []INT v IS [" + names + "]:", "    SKIP");
+            text = Trial.with(text, "  PAR", "    VAL []INT v IS [" + names + "]:", "    SKIP");
         }
         int line = text.length + 3;
-        reads(0, 0, with(text, "  PAR", "    y:=1", "    z:=1"));
-        reads(13, line, with(text, "  PAR", "    z:=1", "    z:=1"));
+        reads(0, 0, Trial.with(text, "  PAR", "    y:=1", "    z:=1"));
+        reads(13, line, Trial.with(text, "  PAR", "    z:=1", "    z:=1"));
     }
 
     /** Each element of the longest array is told apart from all others. */

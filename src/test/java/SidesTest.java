@@ -71,24 +71,24 @@ public final class SidesTest {
         String[] ahead = {"INT x, y:", "[4] INT v:", "PROC sets(INT a)", "  a := 1", ":", "PROC idle(INT a)",
                 "  SKIP", ":",
             "PROC global()", "  v[0] := x", ":", "INT FUNCTION f(VAL INT a) IS v[1] + a:", "PAR"};
-        reads(0, 0, with(ahead, "  sets(x)", "  sets(y)"));
-        reads(13, 15, with(ahead, "  sets(x)", "  sets(x)"));
-        reads(0, 0, with(ahead, "  idle(x)", "  sets(x)"));
-        reads(13, 15, with(ahead, "  sets(x)", "  global()"));
-        reads(13, 15, with(ahead, "  global()", "  sets(x)"));
+        reads(0, 0, Trial.with(ahead, "  sets(x)", "  sets(y)"));
+        reads(13, 15, Trial.with(ahead, "  sets(x)", "  sets(x)"));
+        reads(0, 0, Trial.with(ahead, "  idle(x)", "  sets(x)"));
+        reads(13, 15, Trial.with(ahead, "  sets(x)", "  global()"));
+        reads(13, 15, Trial.with(ahead, "  global()", "  sets(x)"));
         // All arrays as a whole.
-        reads(13, 15, with(ahead, "  global()", "  v[3] := 1"));
-        reads(13, 15, with(ahead, "  v[3] := 1", "  x := f(1)"));
-        reads(13, 15, with(ahead, "  x := f(1)", "  v[3] := 1"));
-        reads(0, 0, with(ahead, "  x := f(1)", "  y := f(2)"));
-        reads(0, 0, with(ahead, "  sets(v[0])", "  sets(v[1])"));
-        reads(13, 15, with(ahead, "  sets(v[0])", "  sets(v[0])"));
+        reads(13, 15, Trial.with(ahead, "  global()", "  v[3] := 1"));
+        reads(13, 15, Trial.with(ahead, "  v[3] := 1", "  x := f(1)"));
+        reads(13, 15, Trial.with(ahead, "  x := f(1)", "  v[3] := 1"));
+        reads(0, 0, Trial.with(ahead, "  x := f(1)", "  y := f(2)"));
+        reads(0, 0, Trial.with(ahead, "  sets(v[0])", "  sets(v[1])"));
+        reads(13, 15, Trial.with(ahead, "  sets(v[0])", "  sets(v[0])"));
         String[] channels = {"PROC put(CHAN OF INT a)", "  a ! 1", ":", "PROC all([] CHAN OF INT a)", "  a[0] ! 1", ":",
             "[3] CHAN OF INT c:", "INT x:", "PAR"};
-        reads(0, 0, with(channels, "  put(c[0])", "  c[0] ? x"));
-        reads(14, 11, with(channels, "  put(c[0])", "  put(c[0])"));
-        reads(0, 0, with(channels, "  put(c[0])", "  put(c[1])"));
-        reads(14, 11, with(channels, "  all(c)", "  put(c[2])"));
+        reads(0, 0, Trial.with(channels, "  put(c[0])", "  c[0] ? x"));
+        reads(14, 11, Trial.with(channels, "  put(c[0])", "  put(c[0])"));
+        reads(0, 0, Trial.with(channels, "  put(c[0])", "  put(c[1])"));
+        reads(14, 11, Trial.with(channels, "  all(c)", "  put(c[2])"));
         // A PAR within a PROC: its FORMALs are declared outside of it.
         reads(13, 4, "PROC p(INT a)", "  PAR", "    a := 1", "    a := 2", ":", "SKIP");
     }
@@ -107,24 +107,24 @@ public final class SidesTest {
 
     private static void replicated() {
         String[] ahead = {"[12] INT v:", "[12] CHAN OF INT c:", "INT x:"};
-        reads(0, 0, with(ahead, "PAR i = 0 FOR 12", "  v[i] := i"));
-        reads(13, 5, with(ahead, "PAR i = 0 FOR 2", "  v[0] := i"));
-        reads(0, 0, with(ahead, "PAR i = 0 FOR 1", "  v[0] := i"));
-        reads(0, 0, with(ahead, "PAR i = 0 FOR 0", "  v[0] := i"));
-        reads(13, 5, with(ahead, "PAR i = 0 FOR 3", "  x := i"));
-        reads(0, 0, with(ahead, "PAR i = 0 FOR 6", "  v[i] := v[i + 6]"));
-        reads(13, 5, with(ahead, "PAR i = 0 FOR 7", "  v[i] := v[i + 5]"));
-        reads(0, 0, with(ahead, "PAR i = 0 FOR 5", "  c[i + 1] ! 1"));
-        reads(14, 5, with(ahead, "PAR i = 0 FOR 5", "  c[i / 2] ! 1"));
-        reads(0, 0, with(ahead, "PAR i = 0 FOR 5", "  INT y:", "  SEQ", "    c[i] ? y", "    c[i + 1] ! y"));
-        reads(0, 0, with(ahead, "PAR i = 0 FOR 3", "  SEQ j = 0 FOR 4", "    v[(i * 4) + j] := 1"));
-        reads(13, 6, with(ahead, "PAR i = 0 FOR 3", "  SEQ j = 0 FOR 4", "    v[(i * 3) + j] := 1"));
-        reads(13, 6, with(ahead, "PAR i = 0 FOR 3", "  SEQ j = 0 FOR x", "    v[(i * 4) + j] := 1"));
-        reads(0, 0, with(ahead, "PAR i = 0 FOR 3", "  VAL INT k IS i + 2:", "  v[k] := 1"));
+        reads(0, 0, Trial.with(ahead, "PAR i = 0 FOR 12", "  v[i] := i"));
+        reads(13, 5, Trial.with(ahead, "PAR i = 0 FOR 2", "  v[0] := i"));
+        reads(0, 0, Trial.with(ahead, "PAR i = 0 FOR 1", "  v[0] := i"));
+        reads(0, 0, Trial.with(ahead, "PAR i = 0 FOR 0", "  v[0] := i"));
+        reads(13, 5, Trial.with(ahead, "PAR i = 0 FOR 3", "  x := i"));
+        reads(0, 0, Trial.with(ahead, "PAR i = 0 FOR 6", "  v[i] := v[i + 6]"));
+        reads(13, 5, Trial.with(ahead, "PAR i = 0 FOR 7", "  v[i] := v[i + 5]"));
+        reads(0, 0, Trial.with(ahead, "PAR i = 0 FOR 5", "  c[i + 1] ! 1"));
+        reads(14, 5, Trial.with(ahead, "PAR i = 0 FOR 5", "  c[i / 2] ! 1"));
+        reads(0, 0, Trial.with(ahead, "PAR i = 0 FOR 5", "  INT y:", "  SEQ", "    c[i] ? y", "    c[i + 1] ! y"));
+        reads(0, 0, Trial.with(ahead, "PAR i = 0 FOR 3", "  SEQ j = 0 FOR 4", "    v[(i * 4) + j] := 1"));
+        reads(13, 6, Trial.with(ahead, "PAR i = 0 FOR 3", "  SEQ j = 0 FOR 4", "    v[(i * 3) + j] := 1"));
+        reads(13, 6, Trial.with(ahead, "PAR i = 0 FOR 3", "  SEQ j = 0 FOR x", "    v[(i * 4) + j] := 1"));
+        reads(0, 0, Trial.with(ahead, "PAR i = 0 FOR 3", "  VAL INT k IS i + 2:", "  v[k] := 1"));
         // Wrapping: MOSTPOS INT, MOSTNEG INT, ..
-        reads(0, 0, with(ahead, "PAR i = MOSTPOS INT FOR 2", "  v[i >> 31] := 1"));
+        reads(0, 0, Trial.with(ahead, "PAR i = MOSTPOS INT FOR 2", "  v[i >> 31] := 1"));
         // A value that is no index is none.
-        reads(0, 0, with(ahead, "PAR i = 11 FOR 3", "  v[i] := 1"));
+        reads(0, 0, Trial.with(ahead, "PAR i = 11 FOR 3", "  v[i] := 1"));
         reads(0, 0, "PROC p([] INT a)", "  PAR i = 198 FOR 4", "    a[i] := 1", ":", "SKIP");
     }
 
@@ -139,11 +139,5 @@ public final class SidesTest {
         reads(13, 4, "[64] INT v:", "PAR i = 0 FOR 32", "  PAR j = 0 FOR 32", "    v[i] := 1");
         reads(13, 4, "[64] INT v:", "SEQ i = 0 FOR 32", "  PAR j = 0 FOR 32", "    v[j] := 1");
         reads(0, 0, "[64] INT v:", "SEQ i = 0 FOR 31", "  PAR j = 0 FOR 32", "    v[j] := 1");
-    }
-
-    private static String[] with(String[] ahead, String... behind) {
-        String[] all = java.util.Arrays.copyOf(ahead, ahead.length + behind.length);
-        System.arraycopy(behind, 0, all, ahead.length, behind.length);
-        return all;
     }
 }

@@ -564,13 +564,15 @@ public final class TextBoundsTest {
 
     /** A line of an IF, CASE or ALT begins with any token that an E begins with. */
     private static void firstTokens() {
-        for (String e : new String[] {"1", "#1", "'a'", "\"a\"", "TRUE", "FALSE", "MOSTPOS INT", "MOSTNEG INT", "INT 1", "BYTE 1", "BOOL 1", "(1)",
+        for (String e : new String[] {"1", "#1", "'a'", "\"a\"", "TRUE", "FALSE", "MOSTPOS INT", "MOSTNEG INT", "INT 1",
+                "BYTE 1", "BOOL 1", "(1)",
             "[1]", "x", "f(1)", "- 1", "~ 1", "NOT TRUE", "MINUS 1", "SIZE x"}) {
             read(3, 22, within(20) + depth(20, "IF") + depth(21, e));
             read(3, 22, within(20) + depth(20, "CASE 1") + depth(21, e));
             read(3, 22, within(20) + depth(20, "ALT") + depth(21, e + " & SKIP"));
         }
-        for (String token : new String[] {")", "]", "+", "*", ":=", "?", "!", "&", ":", ";", ",", "AFTER", "AND", "OR", "PLUS", "TIMES", "OF", "IS",
+        for (String token : new String[] {")", "]", "+", "*", ":=", "?", "!", "&", ":", ";", ",", "AFTER", "AND", "OR",
+                "PLUS", "TIMES", "OF", "IS",
             "FOR", "CASE", "IF", "PAR", "SEQ", "VAL", "CHAN", "PROC", "RESULT", "VALOF", "STOP"}) {
             read(2, 22, within(20) + depth(20, "IF") + depth(21, token));
             read(2, 22, within(20) + depth(20, "CASE 1") + depth(21, token));

@@ -27,6 +27,13 @@ final class Trial {
         return all.toString();
     }
 
+    /** Lines, and those behind them. */
+    static String[] with(String[] ahead, String... behind) {
+        String[] all = java.util.Arrays.copyOf(ahead, ahead.length + behind.length);
+        System.arraycopy(behind, 0, all, ahead.length, behind.length);
+        return all;
+    }
+
     /** Feeds a text, whatever its length is. */
     static void feed(MeetingHouse house, String text) {
         int n = text.length();

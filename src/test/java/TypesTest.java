@@ -164,28 +164,28 @@ public final class TypesTest {
 
     private static void parameters() {
         String[] ahead = {"PROC p(INT a, VAL [] BYTE b)", "  SKIP", ":", "INT x:", "[3] BYTE y:", "[3] INT z:"};
-        reads(0, 0, with(ahead, "p(x, y)"));
-        reads(0, 0, with(ahead, "p(z[1], \"abc\")"));
-        reads(8, 7, with(ahead, "p(x)"));
-        reads(8, 7, with(ahead, "p(x, y, x)"));
-        reads(7, 7, with(ahead, "p(TRUE)"));
-        reads(7, 7, with(ahead, "p(1, y)"));
-        reads(7, 7, with(ahead, "p((x), y)"));
-        reads(7, 7, with(ahead, "p(x, z)"));
-        reads(7, 7, with(ahead, "p(x, 'a')"));
-        reads(7, 7, with(ahead, "p(z, y)"));
-        reads(7, 8, with(ahead, "VAL INT v IS 3:", "p(v, y)"));
-        reads(7, 8, with(ahead, "SEQ i = 0 FOR 3", "  p(i, y)"));
-        reads(9, 7, with(ahead, "p(z[3], y)"));
+        reads(0, 0, Trial.with(ahead, "p(x, y)"));
+        reads(0, 0, Trial.with(ahead, "p(z[1], \"abc\")"));
+        reads(8, 7, Trial.with(ahead, "p(x)"));
+        reads(8, 7, Trial.with(ahead, "p(x, y, x)"));
+        reads(7, 7, Trial.with(ahead, "p(TRUE)"));
+        reads(7, 7, Trial.with(ahead, "p(1, y)"));
+        reads(7, 7, Trial.with(ahead, "p((x), y)"));
+        reads(7, 7, Trial.with(ahead, "p(x, z)"));
+        reads(7, 7, Trial.with(ahead, "p(x, 'a')"));
+        reads(7, 7, Trial.with(ahead, "p(z, y)"));
+        reads(7, 8, Trial.with(ahead, "VAL INT v IS 3:", "p(v, y)"));
+        reads(7, 8, Trial.with(ahead, "SEQ i = 0 FOR 3", "  p(i, y)"));
+        reads(9, 7, Trial.with(ahead, "p(z[3], y)"));
         String[] channels = {"PROTOCOL k IS INT:", "PROTOCOL l IS INT:", "PROC p(CHAN OF k a, [] CHAN OF INT b)",
                 "  SKIP", ":",
             "CHAN OF k e:", "CHAN OF l f:", "[3] CHAN OF INT g:", "[3] CHAN OF BYTE h:", "INT x:"};
-        reads(0, 0, with(channels, "p(e, g)"));
-        reads(7, 11, with(channels, "p(f, g)"));
-        reads(7, 11, with(channels, "p(e, h)"));
-        reads(7, 11, with(channels, "p(g[0], g)"));
-        reads(7, 11, with(channels, "p(e, g[0])"));
-        reads(7, 11, with(channels, "p(x, g)"));
+        reads(0, 0, Trial.with(channels, "p(e, g)"));
+        reads(7, 11, Trial.with(channels, "p(f, g)"));
+        reads(7, 11, Trial.with(channels, "p(e, h)"));
+        reads(7, 11, Trial.with(channels, "p(g[0], g)"));
+        reads(7, 11, Trial.with(channels, "p(e, g[0])"));
+        reads(7, 11, Trial.with(channels, "p(x, g)"));
         reads(7, 5, "PROC p(INT a)", "  SKIP", ":", "CHAN OF INT c:", "p(c)");
         reads(7, 5, "PROC p(VAL INT a)", "  SKIP", ":", "CHAN OF INT c:", "p(c)");
     }
@@ -212,38 +212,38 @@ public final class TypesTest {
         reads(7, 3, "CHAN OF INT c:", "BYTE x:", "c ? x");
         reads(8, 3, "CHAN OF INT c:", "INT x:", "c ? x; x");
         String[] ahead = {"PROTOCOL p IS INT; [3] BYTE:", "CHAN OF p c:", "INT x:", "[3] BYTE y:", "[4] BYTE z:"};
-        reads(0, 0, with(ahead, "c ! 1; \"abc\""));
-        reads(0, 0, with(ahead, "c ? x; y"));
-        reads(8, 6, with(ahead, "c ! 1"));
-        reads(8, 6, with(ahead, "c ! 1; y; 2"));
-        reads(7, 6, with(ahead, "c ! 1; 'a'"));
-        reads(7, 6, with(ahead, "c ! TRUE"));
-        reads(7, 6, with(ahead, "c ? x; z"));
-        reads(7, 6, with(ahead, "c ! 1; \"ab\""));
-        reads(7, 6, with(ahead, "c ? x; y[0]"));
-        reads(8, 7, with(ahead, "ALT", "  c ? x", "    SKIP"));
+        reads(0, 0, Trial.with(ahead, "c ! 1; \"abc\""));
+        reads(0, 0, Trial.with(ahead, "c ? x; y"));
+        reads(8, 6, Trial.with(ahead, "c ! 1"));
+        reads(8, 6, Trial.with(ahead, "c ! 1; y; 2"));
+        reads(7, 6, Trial.with(ahead, "c ! 1; 'a'"));
+        reads(7, 6, Trial.with(ahead, "c ! TRUE"));
+        reads(7, 6, Trial.with(ahead, "c ? x; z"));
+        reads(7, 6, Trial.with(ahead, "c ! 1; \"ab\""));
+        reads(7, 6, Trial.with(ahead, "c ? x; y[0]"));
+        reads(8, 7, Trial.with(ahead, "ALT", "  c ? x", "    SKIP"));
         reads(7, 6, "PROTOCOL q", "  CASE", "    a", ":", "CHAN OF INT c:", "c ? CASE", "  a", "    SKIP");
     }
 
     private static void tagged() {
-        reads(0, 0, with(TAGS, "c ! a"));
-        reads(0, 0, with(TAGS, "c ! d; 'a'; v"));
-        reads(8, 12, with(TAGS, "c ! a; 1"));
-        reads(8, 12, with(TAGS, "c ! b"));
-        reads(7, 12, with(TAGS, "c ! b; TRUE"));
-        reads(7, 12, with(TAGS, "c ! 1"));
-        reads(7, 12, with(TAGS, "c ! d; 'a'; w"));
-        reads(7, 12, with(TAGS, "c ? x"));
-        reads(0, 0, with(TAGS, "c ? CASE", "  b; x", "    SKIP", "  a", "    SKIP", "  d; y; v", "    SKIP"));
-        reads(8, 13, with(TAGS, "c ? CASE", "  b", "    SKIP"));
-        reads(7, 13, with(TAGS, "c ? CASE", "  b; y", "    SKIP"));
-        reads(7, 13, with(TAGS, "c ? CASE", "  d; y; w", "    SKIP"));
-        reads(10, 15, with(TAGS, "c ? CASE", "  a", "    SKIP", "  a", "    SKIP"));
-        reads(7, 16, with(TAGS, "PROTOCOL q", "  CASE", "    e", ":", "c ! e"));
-        reads(7, 17, with(TAGS, "PROTOCOL q", "  CASE", "    e", ":", "c ? CASE", "  e", "    SKIP"));
-        reads(7, 13, with(TAGS, "CHAN OF INT k:", "k ? CASE", "  a", "    SKIP"));
-        reads(7, 13, with(TAGS, "ALT", "  c ? x", "    SKIP"));
-        reads(10, 16, with(TAGS, "ALT", "  c ? CASE", "    a", "      SKIP", "    a", "      SKIP"));
+        reads(0, 0, Trial.with(TAGS, "c ! a"));
+        reads(0, 0, Trial.with(TAGS, "c ! d; 'a'; v"));
+        reads(8, 12, Trial.with(TAGS, "c ! a; 1"));
+        reads(8, 12, Trial.with(TAGS, "c ! b"));
+        reads(7, 12, Trial.with(TAGS, "c ! b; TRUE"));
+        reads(7, 12, Trial.with(TAGS, "c ! 1"));
+        reads(7, 12, Trial.with(TAGS, "c ! d; 'a'; w"));
+        reads(7, 12, Trial.with(TAGS, "c ? x"));
+        reads(0, 0, Trial.with(TAGS, "c ? CASE", "  b; x", "    SKIP", "  a", "    SKIP", "  d; y; v", "    SKIP"));
+        reads(8, 13, Trial.with(TAGS, "c ? CASE", "  b", "    SKIP"));
+        reads(7, 13, Trial.with(TAGS, "c ? CASE", "  b; y", "    SKIP"));
+        reads(7, 13, Trial.with(TAGS, "c ? CASE", "  d; y; w", "    SKIP"));
+        reads(10, 15, Trial.with(TAGS, "c ? CASE", "  a", "    SKIP", "  a", "    SKIP"));
+        reads(7, 16, Trial.with(TAGS, "PROTOCOL q", "  CASE", "    e", ":", "c ! e"));
+        reads(7, 17, Trial.with(TAGS, "PROTOCOL q", "  CASE", "    e", ":", "c ? CASE", "  e", "    SKIP"));
+        reads(7, 13, Trial.with(TAGS, "CHAN OF INT k:", "k ? CASE", "  a", "    SKIP"));
+        reads(7, 13, Trial.with(TAGS, "ALT", "  c ? x", "    SKIP"));
+        reads(10, 16, Trial.with(TAGS, "ALT", "  c ? CASE", "    a", "      SKIP", "    a", "      SKIP"));
     }
 
     private static void constants() {
@@ -303,7 +303,7 @@ public final class TypesTest {
         reads(9, 11, many);
         many[10] = "PROC p()";
         many[11] = "  INT x:";
-        reads(9, 12, with(many, "  SKIP", ":", "SKIP"));
+        reads(9, 12, Trial.with(many, "  SKIP", ":", "SKIP"));
         // 400 names, as count(2) tells them.
         String twenty = "a, b, c, d, e, f, g, h, i, j, k, l, m, n, o, p, q, r, s, t";
         String[] named = new String[22];
@@ -312,12 +312,12 @@ public final class TypesTest {
         }
         named[20] = "";
         named[21] = "SEQ y = 0 FOR 1";
-        reads(0, 0, with(named, "  SKIP"));
-        MeetingHouse house = Trial.house(Trial.lines(with(named, "  SKIP")));
+        reads(0, 0, Trial.with(named, "  SKIP"));
+        MeetingHouse house = Trial.house(Trial.lines(Trial.with(named, "  SKIP")));
         house.read();
         Trial.due("count(2)", house.count(2), 400);
         named[20] = "VAL INT x IS 1:";
-        reads(9, 21, with(named, "  SKIP"));
+        reads(9, 21, Trial.with(named, "  SKIP"));
         // 1,000 cells of a message.
         reads(0, 0, "PROTOCOL p IS [200] INT; [200] INT; [200] INT; [200] INT; [200] INT:", "SKIP");
         reads(9, 1, "PROTOCOL p IS [200] INT; [200] INT; [200] INT; [200] INT; [200] INT; INT:", "SKIP");
@@ -334,11 +334,5 @@ public final class TypesTest {
         reads(9, 3, "INT x:", "CASE 1", "  x", "    SKIP");
         reads(9, 2, "CASE 1", "  1 / 0", "    SKIP");
         reads(10, 5, "VAL INT n IS 3:", "CASE 1", "  3", "    SKIP", "  n", "    SKIP");
-    }
-
-    private static String[] with(String[] ahead, String... behind) {
-        String[] all = java.util.Arrays.copyOf(ahead, ahead.length + behind.length);
-        System.arraycopy(behind, 0, all, ahead.length, behind.length);
-        return all;
     }
 }

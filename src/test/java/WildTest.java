@@ -12,12 +12,16 @@ public final class WildTest {
                 "  WHILE TRUE", "    INT y:", "    PRI ALT", "      d[3] ? y", "        SKIP", "      d[1] ? y",
                 "        STOP", "      keyboard ? y", "        SKIP"),
         Trial.lines("INT FUNCTION fac(VAL INT n)", "  INT r:", "  VALOF", "    SEQ", "      r := 1",
-                "      SEQ i = 1 FOR n", "        r := r * i", "    RESULT r", ":", "INT x:", "SEQ i = 0 FOR 20", "  CASE i",
+                "      SEQ i = 1 FOR n", "        r := r * i", "    RESULT r", ":", "INT x:", "SEQ i = 0 FOR 20",
+                        "  CASE i",
                 "    3, 4", "      x := fac(i)", "    ELSE", "      IF", "        (i \\ 2) = 0", "          x := x + i",
-                "        TRUE", "          INT y IS x:", "          VAL [] INT w IS [x, y, 7]:", "          y := w[i \\ 3]"),
+                "        TRUE", "          INT y IS x:", "          VAL [] INT w IS [x, y, 7]:",
+                        "          y := w[i \\ 3]"),
     };
-    private static final String[] PIECES = {"SEQ", "PAR", "ALT", "IF", "INT", "[", "]", "(", ")", ":=", "?", "!", ":", ",",
-        ";", "x", "c", "v[0]", "0", "1", "200", "SKIP", "STOP", "VAL", "IS", "PROC", "i = 0 FOR 3", "\n", "  ", "'a'", "\"b\""};
+    private static final String[] PIECES = {"SEQ", "PAR", "ALT", "IF", "INT", "[", "]", "(", ")", ":=", "?", "!", ":",
+            ",",
+        ";", "x", "c", "v[0]", "0", "1", "200", "SKIP", "STOP", "VAL", "IS", "PROC", "i = 0 FOR 3", "\n", "  ", "'a'",
+                "\"b\""};
 
     public static void main(String[] args) {
         Random random = new Random(20261116);
