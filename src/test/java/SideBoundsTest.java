@@ -110,6 +110,9 @@ public final class SideBoundsTest {
         reads(0, 0, Trial.with(Trial.with(ahead, "    gives(y)"), behind));
         reads(0, 0, Trial.with(Trial.with(ahead, "    takes(x)"), behind));
         reads(11, 29, Trial.with(Trial.with(ahead, "    SEQ", "      sets()"), behind));
+        // Through several calls, too.
+        reads(11, 10, "CHAN OF INT c:", "PROC p()", "  c ! 1", ":", "PROC q()", "  p()", ":", "INT FUNCTION f()", "  VALOF",
+                "    q()", "    RESULT 1", ":", "SKIP");
         // A PROC's text has its own PROCs in it, all of them.
         reads(11, 28, Trial.with(Trial.with(ahead, "    has()"), behind));
         reads(11, 12, "PROC p()", "  PROC a()", "    PAR", "  :", "  PROC b()", "    SKIP", "  :", "  SKIP", ":",
