@@ -3173,12 +3173,10 @@ public final class MeetingHouse {
         }
 
         private void elementsAsWhole(int place, int[] sets, int from) {
-            int most = limit(place);
+            int left = limit(place);
             for (int k = from; k < from + SET && k < sets.length; k++) {
-                sets[k] = 0;
-            }
-            for (int i = 0; i < most; i++) {
-                include(sets, from, i);
+                sets[k] = left >= 32 ? -1 : left > 0 ? (1 << left) - 1 : 0;
+                left -= 32;
             }
         }
 

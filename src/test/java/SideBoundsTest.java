@@ -35,6 +35,7 @@ public final class SideBoundsTest {
         procsThatStandAhead();
         manyPlaces();
         allElements();
+        allElementsAsAWhole();
         Trial.finish("SideBoundsTest");
     }
 
@@ -686,5 +687,17 @@ public final class SideBoundsTest {
             reads(0, 0, "[200] INT v:", "PAR", "  v[" + k + "] := 1", "  v[" + (k + 32) % 200 + "] := 1");
             reads(13, 4, "[200] INT v:", "PAR", "  v[" + k + "] := 1", "  v := v");
         }
+    }
+
+    /** "as a whole, all elements": of an array of any number, and of one that has none. */
+    private static void allElementsAsAWhole() {
+        for (int n = 1; n <= 200; n++) {
+            String array = "[" + n + "] INT v:";
+            reads(13, 4, array, "PAR", "  v := v", "  v[" + (n - 1) + "] := 1");
+            reads(13, 4, array, "PAR", "  v[0] := 1", "  v := v");
+            reads(13, 6, "INT x:", array, "SEQ", "  PAR", "    v[x] := 1", "    v[" + (n - 1) + "] := 1");
+            reads(13, 4, "PROC p([] INT v)", "  PAR", "    v := v", "    v[" + (n - 1) + "] := 1", ":", "SKIP");
+        }
+        reads(0, 0, "PROC p([] INT v)", "  PAR", "    v := v", "    v[200] := 1", ":", "SKIP");
     }
 }
